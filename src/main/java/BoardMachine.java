@@ -8,7 +8,7 @@ public final class BoardMachine {
     private static final int TAPE_LIMIT = 65536;
     private static final int ROUNDS_LIMIT = 10000;
     private static final int SUM_LIMIT = 65536;
-    private static final int TREE_AT = 4186112;
+    private static final long TREE_AT = Memory.BASE + 4186112;
     private static final int IMAGE_HEADER = 64;
     private static final int SEGMENT_HEADER = 56;
     private static final int[] IMAGE_BEGINS = {127, 69, 76, 70, 2, 1, 1};
@@ -84,9 +84,8 @@ public final class BoardMachine {
     }
 
     private void copyTape(int from, int count, long address) {
-        int at = (int) (address - Memory.BASE);
         for (int i = 0; i < count; i++) {
-            memory.put(at + i, 1, tape[from + i]);
+            memory.put(address + i, 1, tape[from + i]);
         }
     }
 
@@ -111,8 +110,7 @@ public final class BoardMachine {
         int count = (int) imageNumber(p + 32, 8);
         long address = imageNumber(p + 24, 8);
         copyTape((int) imageNumber(p + 8, 8), count, address);
-        int at = (int) (address - Memory.BASE);
-        memory.clear(at + count, at + (int) imageNumber(p + 40, 8));
+        memory.clear(address + count, address + imageNumber(p + 40, 8));
     }
 
     /** The number by which the image on the tape is refused, or 0. */
@@ -198,7 +196,7 @@ public final class BoardMachine {
     public int start() {
         windows.ended = false;
         for (int i = 0; i < cores.length; i++) {
-            cores[i].reset(entry, Memory.BASE + TREE_AT);
+            cores[i].reset(entry, TREE_AT);
         }
         for (int i = 0; i < tree.size; i++) {
             memory.put(TREE_AT + i, 1, tree.row[i]);
@@ -216,7 +214,8 @@ public final class BoardMachine {
             for (int i = 0; i < cores.length && !windows.ended; i++) {
                 cores[i].step();
                 cores[i].audit();
-                windows.settle();
+                disk.work();
+                windows.feelSignals();
             }
             if (!windows.ended) {
                 finishRound();
@@ -232,7 +231,7 @@ public final class BoardMachine {
         }
         windows.countRound();
         serial.arrive();
-        windows.settle();
+        windows.feelSignals();
     }
 
     public int code() {
@@ -284,7 +283,7 @@ public final class BoardMachine {
         if (!memory.holds(address, 8)) {
             throw new IndexOutOfBoundsException();
         }
-        return memory.number((int) (address - Memory.BASE), 8);
+        return memory.number(address, 8);
     }
 
     public long sum(long from, long to) throws IllegalArgumentException, IndexOutOfBoundsException {
@@ -297,7 +296,7 @@ public final class BoardMachine {
         }
         long total = 0;
         for (int i = 0; i < count; i++) {
-            total = total * 31 + memory.number((int) (from - Memory.BASE) + i, 1);
+            total = total * 31 + memory.number(from + i, 1);
         }
         return total;
     }
@@ -337,7 +336,7 @@ public final class BoardMachine {
         return total;
     }
 
-    /** MEMORY, by offsets from its first byte, and the reservations of part 6 that every store into it may undo. */
+    /** MEMORY, by physical addresses, and the reservations of part 6 that every store into it may undo. */
     private static final class Memory {
         static final long BASE = 2147483648L;
         static final int SIZE = 4194304;
@@ -345,7 +344,7 @@ public final class BoardMachine {
 
         // Eight bytes to a cell: a byte array would fill most of the room that all objects share.
         private final long[] cells = new long[SIZE / 8];
-        private final int[] heldAt = new int[4];
+        private final long[] heldAt = new long[4];
         private final int[] heldSize = new int[4];
         // Kept beside heldSize so that a conditional store that should have failed is seen as a breach.
         private final boolean[] disturbed = new boolean[4];
@@ -356,10 +355,18 @@ public final class BoardMachine {
             return n >= 0 && n <= SIZE && at >= 0 && at <= SIZE - n;
         }
 
-        /** The number of n bytes at an offset, without sign. */
-        long number(int at, int n) {
-            int cell = at >>> 3 & LAST_CELL;
-            int shift = 8 * (at & 7);
+        private static int cellOf(long address) {
+            return (int) (address - BASE >>> 3) & LAST_CELL;
+        }
+
+        private static long ones(int n) {
+            return n >= 8 ? -1L : (1L << 8 * n) - 1;
+        }
+
+        /** The number of n bytes at an address, without sign. */
+        long number(long address, int n) {
+            int cell = cellOf(address);
+            int shift = 8 * (int) (address & 7);
             long v = cells[cell] >>> shift;
             if (shift + 8 * n > 64) {
                 v |= cells[cell + 1 & LAST_CELL] << 64 - shift;
@@ -367,9 +374,9 @@ public final class BoardMachine {
             return v & ones(n);
         }
 
-        void put(int at, int n, long v) {
-            int cell = at >>> 3 & LAST_CELL;
-            int shift = 8 * (at & 7);
+        void put(long address, int n, long v) {
+            int cell = cellOf(address);
+            int shift = 8 * (int) (address & 7);
             long mask = ones(n);
             cells[cell] = cells[cell] & ~(mask << shift) | (v & mask) << shift;
             disturb(cell);
@@ -381,12 +388,8 @@ public final class BoardMachine {
             }
         }
 
-        private static long ones(int n) {
-            return n >= 8 ? -1L : (1L << 8 * n) - 1;
-        }
-
-        void clear(int from, int to) {
-            int at = from;
+        void clear(long from, long to) {
+            long at = from;
             while (at < to) {
                 int n = (at & 7) == 0 && to - at >= 8 ? 8 : 1;
                 put(at, n, 0);
@@ -395,8 +398,8 @@ public final class BoardMachine {
         }
 
         private void disturb(int cell) {
-            for (int p = 0; p < 4; p++) {
-                if (heldAt[p] >>> 3 == cell) {
+            for (int p = 0; p < heldAt.length; p++) {
+                if (heldAt[p] >>> 3 == cell + (BASE >>> 3)) {
                     heldSize[p] = 0;
                     disturbed[p] = true;
                 }
@@ -404,28 +407,25 @@ public final class BoardMachine {
         }
 
         void release() {
-            for (int p = 0; p < 4; p++) {
-                heldAt[p] = NONE;
-                heldSize[p] = 0;
-                disturbed[p] = false;
+            for (int p = 0; p < heldAt.length; p++) {
+                reserve(p, 0, 0);
             }
         }
 
-        void reserve(int p, int at, int size) {
-            heldAt[p] = at;
+        void reserve(int p, long address, int size) {
+            heldAt[p] = address;
             heldSize[p] = size;
             disturbed[p] = false;
         }
 
-        boolean storeIfReserved(int p, int at, int size, long v) {
-            boolean held = heldSize[p] == size && heldAt[p] == at;
+        boolean storeIfReserved(int p, long address, int size, long v) {
+            boolean held = heldSize[p] == size && heldAt[p] == address;
             if (held && disturbed[p]) {
                 breaches++;
             }
             heldSize[p] = 0;
-            heldAt[p] = NONE;
             if (held) {
-                put(at, size, v);
+                put(address, size, v);
             }
             return held;
         }
@@ -546,7 +546,7 @@ public final class BoardMachine {
                 raise(fault, at);
                 return NONE;
             }
-            return (int) memory.number((int) (finder.physical - Memory.BASE), 2);
+            return (int) memory.number(finder.physical, 2);
         }
 
         private int finish(long v) {
@@ -809,12 +809,11 @@ public final class BoardMachine {
 
         private long loaded() {
             if (isWhole()) {
-                return memory.holds(places[0], size) ? memory.number((int) (places[0] - Memory.BASE), size)
-                        : windows.read(places[0], size);
+                return memory.holds(places[0], size) ? memory.number(places[0], size) : windows.read(places[0], size);
             }
             long v = 0;
             for (int i = size - 1; i >= 0; i--) {
-                v = v << 8 | memory.number((int) (places[i] - Memory.BASE), 1);
+                v = v << 8 | memory.number(places[i], 1);
             }
             return v;
         }
@@ -822,11 +821,11 @@ public final class BoardMachine {
         private void store(long v) {
             if (!isWhole()) {
                 for (int i = 0; i < size; i++) {
-                    memory.put((int) (places[i] - Memory.BASE), 1, v >>> 8 * i);
+                    memory.put(places[i], 1, v >>> 8 * i);
                     watchStored(places[i], 1);
                 }
             } else if (memory.holds(places[0], size)) {
-                memory.put((int) (places[0] - Memory.BASE), size, v);
+                memory.put(places[0], size, v);
                 watchStored(places[0], size);
             } else {
                 windows.write(places[0], size, v);
@@ -872,15 +871,15 @@ public final class BoardMachine {
                 raise(reserving ? 5 : 7, address);
                 return;
             }
-            long answer = atomicAnswer((int) (places[0] - Memory.BASE));
+            long answer = atomicAnswer(places[0]);
             finish(size == 4 ? (int) answer : answer);
         }
 
-        private long atomicAnswer(int at) {
+        private long atomicAnswer(long at) {
             if (sort == 3) {
                 boolean stored = memory.storeIfReserved(number, at, size, operand);
                 if (stored) {
-                    watchStored(places[0], size);
+                    watchStored(at, size);
                 }
                 return stored ? 0 : 1;
             }
@@ -894,7 +893,7 @@ public final class BoardMachine {
             } else {
                 memory.put(at, size, atomicResult(sort, there, operand));
             }
-            watchStored(places[0], size);
+            watchStored(at, size);
             return there;
         }
 
@@ -927,23 +926,19 @@ public final class BoardMachine {
                     skip();
                 }
             } else {
-                calculate();
-            }
-        }
-
-        private void calculate() {
-            int came = floats.perform(instruction, operand);
-            if (came == Floats.ILLEGAL) {
-                raise(2, raw);
-                return;
-            }
-            if (floats.hasWritten) {
-                controls.soilFloats();
-            }
-            if (came == Floats.INTEGER) {
-                finish(floats.answer);
-            } else {
-                skip();
+                int came = floats.perform(instruction, operand);
+                if (came == Floats.ILLEGAL) {
+                    raise(2, raw);
+                    return;
+                }
+                if (floats.hasWritten) {
+                    controls.soilFloats();
+                }
+                if (came == Floats.INTEGER) {
+                    finish(floats.answer);
+                } else {
+                    skip();
+                }
             }
         }
 
@@ -1128,33 +1123,35 @@ public final class BoardMachine {
 
     /** Part 3: floating point, worked out on bits alone. */
     private static final class Floats {
-        static final int ILLEGAL = 0, REGISTER = 1, INTEGER = 2;
+        // What comes out of an instruction; ZERO to NO_NUMBER are in its format, with resultSign.
+        static final int ILLEGAL = 0, INTEGER = 1;
+        private static final int BITS = 2, ZERO = 3, FINITE = 4, INFINITE = 5, NO_NUMBER = 6, SIGNALING = 7;
         private static final int INEXACT = 1, UNDERFLOW = 2, OVERFLOW = 4, DIVIDED = 8, INVALID = 16;
-        private static final int ZERO = 0, FINITE = 1, INFINITE = 2, QUIET = 3, SIGNALING = 4;
-        private static final long TOP_BIT = Long.MIN_VALUE;
         private static final long BOX = 0xFFFFFFFFL << 32;
+        private static final int QUOTIENT_BITS = 58;
 
         final long[] registers = new long[32];
         int flags;
         int mode;
         long answer;
         boolean hasWritten;
-        // The operands as read. A finite one is digits * 2^(scale - 63), with the highest bit of digits 1.
+        // The operands as read: ZERO to SIGNALING. A finite one is digits * 2^(scale - 63), with the highest bit
+        // of digits 1 and its lowest 11 bits 0.
         private final int[] kinds = new int[3];
         private final int[] signs = new int[3];
         private final int[] scales = new int[3];
         private final long[] digits = new long[3];
         private final long[] magnitudes = new long[3];
         private boolean isSingle;
+        private int fractionBits;
+        private int bias;
+        private long infinity;
         private int rounding;
         private int raised;
-        // A result that has still to be rounded: resultDigits * 2^(resultScale - 63), the lowest bit also
-        // standing for all bits below it.
-        private boolean isUnrounded;
         private int resultSign;
+        // A finite result, before it is rounded, is (high, low) * 2^(resultScale - 127); the lowest bit of low
+        // also stands for all bits below it.
         private int resultScale;
-        private long resultDigits;
-        // A number of 128 bits that is being worked on.
         private long high;
         private long low;
 
@@ -1168,24 +1165,19 @@ public final class BoardMachine {
             registers[d] = single ? bits | BOX : bits;
         }
 
-        private int fractionBits() {
-            return isSingle ? 23 : 52;
-        }
-
-        private int bias() {
-            return isSingle ? 127 : 1023;
+        private void setFormat(boolean single) {
+            isSingle = single;
+            fractionBits = single ? 23 : 52;
+            bias = single ? 127 : 1023;
+            infinity = (2L * bias + 1) << fractionBits;
         }
 
         private long signed(int sign, long magnitude) {
             return (long) sign << (isSingle ? 31 : 63) | magnitude;
         }
 
-        private long infinite(int sign) {
-            return signed(sign, (2L * bias() + 1) << fractionBits());
-        }
-
         private long quietOne() {
-            return infinite(0) | 1L << fractionBits() - 1;
+            return infinity | 1L << fractionBits - 1;
         }
 
         private void read(int slot, int register) {
@@ -1193,23 +1185,22 @@ public final class BoardMachine {
             if (isSingle) {
                 bits = (bits & BOX) == BOX ? bits & ~BOX : quietOne();
             }
-            int f = fractionBits();
-            int sign = (int) (bits >>> (isSingle ? 31 : 63));
             long magnitude = bits & ~signed(1, 0);
-            long fraction = magnitude & (1L << f) - 1;
-            int e = (int) (magnitude >>> f);
-            signs[slot] = sign;
+            long fraction = magnitude & (1L << fractionBits) - 1;
+            int e = (int) (magnitude >>> fractionBits);
+            signs[slot] = magnitude == bits ? 0 : 1;
             magnitudes[slot] = magnitude;
-            if (e == 2 * bias() + 1) {
-                kinds[slot] = fraction == 0 ? INFINITE : (fraction >>> f - 1) == 1 ? QUIET : SIGNALING;
+            if (e == 2 * bias + 1) {
+                boolean isQuiet = fraction >>> fractionBits - 1 == 1;
+                kinds[slot] = fraction == 0 ? INFINITE : isQuiet ? NO_NUMBER : SIGNALING;
             } else if (magnitude == 0) {
                 kinds[slot] = ZERO;
             } else {
-                long whole = e == 0 ? fraction : fraction | 1L << f;
+                long whole = e == 0 ? fraction : fraction | 1L << fractionBits;
                 int zeros = Long.numberOfLeadingZeros(whole);
                 kinds[slot] = FINITE;
                 digits[slot] = whole << zeros;
-                scales[slot] = (e == 0 ? 1 : e) - bias() - f + 63 - zeros;
+                scales[slot] = (e == 0 ? 1 : e) - bias - fractionBits + 63 - zeros;
             }
         }
 
@@ -1217,58 +1208,61 @@ public final class BoardMachine {
             kinds[slot] = FINITE;
             signs[slot] = 0;
             scales[slot] = 0;
-            digits[slot] = TOP_BIT;
+            digits[slot] = Long.MIN_VALUE;
         }
 
-        /** Does an instruction; v is the integer that it may take. Answers what came out, in answer. */
+        /** Does an instruction; v is the integer that it may take. An integer that comes out is in answer. */
         int perform(int w, long v) {
-            raised = 0;
-            isUnrounded = false;
-            hasWritten = false;
             int t = w >>> 25 & 3;
             int r = w >>> 12 & 7;
             int k = w >>> 27;
-            isSingle = t == 0;
+            raised = 0;
+            setFormat(t == 0);
             rounding = r == 7 ? mode : r;
-            if (t > 1) {
-                return ILLEGAL;
+            boolean isArithmetic = (w & 127) != 83 || k < 4;
+            int came = t > 1 ? ILLEGAL : isArithmetic ? calculate(w, k) : performOther(w, k, v);
+            switch (came) {
+                case ILLEGAL: case INTEGER: case BITS: break;
+                case ZERO: answer = signed(resultSign, 0); break;
+                case FINITE: answer = rounded(); break;
+                case INFINITE: answer = signed(resultSign, infinity); break;
+                default: answer = quietOne(); break;
             }
-            int came = (w & 127) == 83 ? performPlain(w, k, v) : rounding > 4 ? ILLEGAL : performFused(w, k);
-            if (came == ILLEGAL) {
-                return ILLEGAL;
-            }
-            if (isUnrounded) {
-                answer = rounded(resultSign, resultScale, resultDigits);
-            }
-            if (came == REGISTER) {
+            if (came > INTEGER) {
                 keep(w >>> 7 & 31, answer, isSingle);
             }
             flags |= raised;
-            hasWritten = came == REGISTER || raised != 0;
+            hasWritten = came > INTEGER || raised != 0;
             return came;
         }
 
-        private int performFused(int w, int k) {
+        private int calculate(int w, int k) {
             int code = w & 127;
+            if (rounding > 4) {
+                return ILLEGAL;
+            }
             read(0, w >>> 15 & 31);
+            if (code == 83 && k < 2) {
+                readOne(1);
+                read(2, w >>> 20 & 31);
+                signs[2] ^= k;
+                return fuse();
+            }
             read(1, w >>> 20 & 31);
+            if (code == 83) {
+                return k == 2 ? multiply() : divide();
+            }
             read(2, k);
-            if (code == 75 || code == 79) {
-                signs[0] ^= 1;
-            }
-            if (code == 71 || code == 79) {
-                signs[2] ^= 1;
-            }
-            fuse();
-            return REGISTER;
+            signs[0] ^= code == 75 || code == 79 ? 1 : 0;
+            signs[2] ^= code == 71 || code == 79 ? 1 : 0;
+            return fuse();
         }
 
-        private int performPlain(int w, int k, long v) {
+        private int performOther(int w, int k, long v) {
             int r = w >>> 12 & 7;
             int a = w >>> 15 & 31;
             int b = w >>> 20 & 31;
             switch (k) {
-                case 0: case 1: case 2: case 3: return rounding > 4 ? ILLEGAL : performBinary(k, a, b);
                 case 4: return r > 2 ? ILLEGAL : injectSign(r, a, b);
                 case 5: return r > 1 ? ILLEGAL : chooseOne(r, a, b);
                 case 8: return rounding > 4 || b != (isSingle ? 1 : 0) ? ILLEGAL : convertFormat(a);
@@ -1277,141 +1271,108 @@ public final class BoardMachine {
                 case 24: return rounding > 4 || b > 3 ? ILLEGAL : toInteger(b, a);
                 case 26: return rounding > 4 || b > 3 ? ILLEGAL : fromInteger(b, v);
                 case 28: return b != 0 || r > 1 ? ILLEGAL : examine(r, a);
-                case 30: return b != 0 || r != 0 ? ILLEGAL : give(isSingle ? v & 0xFFFFFFFFL : v);
+                case 30: return b != 0 || r != 0 ? ILLEGAL : give(isSingle ? v & 0xFFFFFFFFL : v, BITS);
                 default: return ILLEGAL;
             }
         }
 
-        private int give(long bits) {
+        private int give(long bits, int kind) {
             answer = bits;
-            return REGISTER;
-        }
-
-        private int giveInvalid() {
-            raised |= INVALID;
-            return give(quietOne());
-        }
-
-        private int giveInteger(long v) {
-            answer = v;
-            return INTEGER;
-        }
-
-        private int leave(int sign, int scale, long m) {
-            isUnrounded = true;
-            resultSign = sign;
-            resultScale = scale;
-            resultDigits = m;
-            return REGISTER;
-        }
-
-        private int performBinary(int k, int a, int b) {
-            read(0, a);
-            if (k < 2) {
-                readOne(1);
-                read(2, b);
-                signs[2] ^= k;
-                return fuse();
-            }
-            read(1, b);
-            if (isNoNumber(0) || isNoNumber(1)) {
-                return giveQuiet(2);
-            }
-            return k == 2 ? multiplyBoth() : divideBoth();
+            return kind;
         }
 
         private boolean isNoNumber(int slot) {
-            return kinds[slot] >= QUIET;
+            return kinds[slot] >= NO_NUMBER;
         }
 
-        /** The quiet one, which comes of operands of which one is no number. */
-        private int giveQuiet(int operands) {
+        private int raiseInvalid() {
+            raised |= INVALID;
+            return NO_NUMBER;
+        }
+
+        /** What comes of so many operands of which one is no number. */
+        private int spoil(int operands) {
             for (int i = 0; i < operands; i++) {
-                if (kinds[i] == SIGNALING) {
-                    raised |= INVALID;
-                }
+                raised |= kinds[i] == SIGNALING ? INVALID : 0;
             }
-            return give(quietOne());
+            return NO_NUMBER;
         }
 
-        private boolean areZeroAndInfinite() {
-            return kinds[0] == ZERO && kinds[1] == INFINITE || kinds[0] == INFINITE && kinds[1] == ZERO;
-        }
-
-        private int multiplyBoth() {
-            int sign = signs[0] ^ signs[1];
-            if (areZeroAndInfinite()) {
-                return giveInvalid();
+        /** What comes of operand 0 times operand 1, finite ones being left in high and low with the highest bit 1. */
+        private int multiply() {
+            resultSign = signs[0] ^ signs[1];
+            if (kinds[0] == ZERO && kinds[1] == INFINITE || kinds[0] == INFINITE && kinds[1] == ZERO) {
+                return raiseInvalid();
             }
-            if (kinds[0] == INFINITE || kinds[1] == INFINITE) {
-                return give(infinite(sign));
+            if (isNoNumber(0) || isNoNumber(1)) {
+                return spoil(2);
             }
-            if (kinds[0] == ZERO || kinds[1] == ZERO) {
-                return give(signed(sign, 0));
+            if (kinds[0] != FINITE || kinds[1] != FINITE) {
+                return kinds[0] == INFINITE || kinds[1] == INFINITE ? INFINITE : ZERO;
             }
-            int scale = multiplyDigits();
-            return leave(sign, scale, high | (low != 0 ? 1 : 0));
-        }
-
-        /** Leaves the whole product in high and low, its highest bit 1; answers its scale. */
-        private int multiplyDigits() {
+            resultScale = scales[0] + scales[1] + 1;
             high = Core.upperProduct(digits[0], digits[1]);
             low = digits[0] * digits[1];
-            int scale = scales[0] + scales[1] + 1;
             if (high >= 0) {
                 high = high << 1 | low >>> 63;
                 low <<= 1;
-                scale--;
+                resultScale--;
             }
-            return scale;
+            return FINITE;
         }
 
-        private int divideBoth() {
-            int sign = signs[0] ^ signs[1];
+        private int divide() {
+            resultSign = signs[0] ^ signs[1];
+            if (isNoNumber(0) || isNoNumber(1)) {
+                return spoil(2);
+            }
             if (kinds[0] == kinds[1] && kinds[0] != FINITE) {
-                return giveInvalid();
+                return raiseInvalid();
             }
             if (kinds[0] == INFINITE || kinds[1] == ZERO) {
                 raised |= kinds[0] == INFINITE ? 0 : DIVIDED;
-                return give(infinite(sign));
+                return INFINITE;
             }
             if (kinds[0] == ZERO || kinds[1] == INFINITE) {
-                return give(signed(sign, 0));
+                return ZERO;
             }
             long rest = digits[0] >>> 11;
             long by = digits[1] >>> 11;
-            long q = 0;
-            for (int i = 0; i < 58; i++) {
-                q <<= 1;
+            long quotient = 0;
+            for (int i = 0; i < QUOTIENT_BITS; i++) {
+                quotient <<= 1;
                 if (rest >= by) {
                     rest -= by;
-                    q |= 1;
+                    quotient |= 1;
                 }
                 rest <<= 1;
             }
-            int zeros = Long.numberOfLeadingZeros(q);
-            return leave(sign, scales[0] - scales[1] + 6 - zeros, q << zeros | (rest != 0 ? 1 : 0));
+            high = quotient << 64 - QUOTIENT_BITS;
+            low = rest != 0 ? 1 : 0;
+            resultScale = scales[0] - scales[1];
+            return FINITE;
         }
 
         private int takeRoot(int a) {
             read(0, a);
+            resultSign = signs[0];
             if (isNoNumber(0)) {
-                return giveQuiet(1);
+                return spoil(1);
             }
             if (kinds[0] == ZERO) {
-                return give(signed(signs[0], 0));
+                return ZERO;
             }
             if (signs[0] == 1) {
-                return giveInvalid();
+                return raiseInvalid();
             }
             if (kinds[0] == INFINITE) {
-                return give(infinite(0));
+                return INFINITE;
             }
             // With an even scale, two bits of the number make one bit of the root.
             long bits = (scales[0] & 1) == 0 ? digits[0] >>> 1 : digits[0];
             long rest = 0;
             long root = 0;
-            for (int i = 0; i < 58; i++) {
+            for (int i = 0; i < QUOTIENT_BITS; i++) {
                 rest = rest << 2 | bits >>> 62;
                 bits <<= 2;
                 long trial = root << 2 | 1;
@@ -1421,78 +1382,69 @@ public final class BoardMachine {
                     root |= 1;
                 }
             }
-            return leave(0, scales[0] >> 1, root << 6 | (rest != 0 ? 1 : 0));
+            high = root << 64 - QUOTIENT_BITS;
+            low = rest != 0 ? 1 : 0;
+            resultScale = scales[0] >> 1;
+            return FINITE;
         }
 
-        /** Operand 0 times operand 1, and operand 2. */
+        /** What comes of operand 0 times operand 1, and operand 2. */
         private int fuse() {
-            int sign = signs[0] ^ signs[1];
-            if (areZeroAndInfinite()) {
-                return giveInvalid();
+            int product = multiply();
+            if (product == NO_NUMBER || isNoNumber(2)) {
+                return spoil(3);
             }
-            if (isNoNumber(0) || isNoNumber(1) || isNoNumber(2)) {
-                return giveQuiet(3);
+            if (product == INFINITE || kinds[2] == INFINITE) {
+                if (product == kinds[2] && resultSign != signs[2]) {
+                    return raiseInvalid();
+                }
+                resultSign = product == INFINITE ? resultSign : signs[2];
+                return INFINITE;
             }
-            if (kinds[0] == INFINITE || kinds[1] == INFINITE) {
-                return kinds[2] == INFINITE && signs[2] != sign ? giveInvalid() : give(infinite(sign));
+            if (kinds[2] == ZERO) {
+                return product == ZERO ? addZeros() : FINITE;
             }
-            if (kinds[2] == INFINITE) {
-                return give(infinite(signs[2]));
+            if (product == ZERO) {
+                resultSign = signs[2];
+                resultScale = scales[2];
+                high = digits[2];
+                low = 0;
+                return FINITE;
             }
-            if (kinds[0] == ZERO || kinds[1] == ZERO) {
-                return kinds[2] == ZERO ? giveZero(sign == signs[2], sign) : leave(signs[2], scales[2], digits[2]);
-            }
-            int scale = multiplyDigits();
-            return kinds[2] == ZERO ? leave(sign, scale, high | (low != 0 ? 1 : 0)) : addThird(sign, scale);
+            return addThird();
         }
 
-        private int giveZero(boolean alike, int sign) {
-            return give(signed(alike ? sign : rounding == 2 ? 1 : 0, 0));
+        private int addZeros() {
+            resultSign = resultSign == signs[2] ? resultSign : rounding == 2 ? 1 : 0;
+            return ZERO;
         }
 
-        /** Adds operand 2 to the product in high and low, both being moved by one bit to make room for a carry. */
-        private int addThird(int sign, int scale) {
-            int gap = scale - scales[2];
-            long productHigh = high >>> 1;
-            long productLow = high << 63 | low >>> 1;
-            high = digits[2] >>> 1;
-            low = digits[2] << 63;
-            shiftRight(gap);
+        /** Adds operand 2 to the product in high and low; both are moved by one bit to make room for a carry. */
+        private int addThird() {
+            int gap = resultScale - scales[2];
+            long productHigh = high;
+            long productLow = low;
+            high = digits[2];
+            low = 0;
+            shiftRight(gap > 0 ? gap + 1 : 1);
             long thirdHigh = high;
             long thirdLow = low;
             high = productHigh;
             low = productLow;
-            shiftRight(-gap);
-            int resultingSign = sign;
-            if (sign == signs[2]) {
+            shiftRight(gap < 0 ? 1 - gap : 1);
+            resultScale = (gap > 0 ? resultScale : scales[2]) + 1;
+            if (resultSign == signs[2]) {
                 low += thirdLow;
                 high += thirdHigh + (Core.below(low, thirdLow) ? 1 : 0);
             } else if (high < thirdHigh || high == thirdHigh && Core.below(low, thirdLow)) {
-                resultingSign = signs[2];
+                resultSign = signs[2];
                 high = thirdHigh - high - (Core.below(thirdLow, low) ? 1 : 0);
                 low = thirdLow - low;
             } else {
                 high = high - thirdHigh - (Core.below(low, thirdLow) ? 1 : 0);
                 low = low - thirdLow;
             }
-            if (high == 0 && low == 0) {
-                return giveZero(false, 0);
-            }
-            return leaveWide(resultingSign, gap > 0 ? scale + 1 : scales[2] + 1);
-        }
-
-        /** Leaves high and low as the result, scale being that of their highest bit. */
-        private int leaveWide(int sign, int scale) {
-            int zeros = Long.numberOfLeadingZeros(high);
-            if (zeros == 64) {
-                zeros += Long.numberOfLeadingZeros(low);
-                high = low << zeros - 64;
-                low = 0;
-            } else if (zeros > 0) {
-                high = high << zeros | low >>> 64 - zeros;
-                low <<= zeros;
-            }
-            return leave(sign, scale - zeros, high | (low != 0 ? 1 : 0));
+            return high == 0 && low == 0 ? addZeros() : FINITE;
         }
 
         /** Moves high and low down; the lowest bit also stands for what goes lost. */
@@ -1517,33 +1469,50 @@ public final class BoardMachine {
             low |= lost != 0 ? 1 : 0;
         }
 
-        private long rounded(int sign, int scale, long m) {
-            int cut = 63 - fractionBits();
-            int missing = 1 - bias() - scale;
+        /** Moves high and low up until the highest bit is 1. */
+        private void normalise() {
+            if (high == 0) {
+                high = low;
+                low = 0;
+                resultScale -= 64;
+            }
+            int zeros = Long.numberOfLeadingZeros(high);
+            if (zeros > 0) {
+                high = high << zeros | low >>> 64 - zeros;
+                low <<= zeros;
+                resultScale -= zeros;
+            }
+        }
+
+        private long rounded() {
+            normalise();
+            long m = high | (low != 0 ? 1 : 0);
+            int cut = 63 - fractionBits;
+            int missing = 1 - bias - resultScale;
             boolean isTiny = missing > 0;
             long kept = m;
             if (isTiny) {
                 kept = missing > 62 ? 1 : m >>> missing | (m << 64 - missing != 0 ? 1 : 0);
                 // Just below the least normal number, rounding as if there were no such bound may still reach it.
-                isTiny = missing > 1 || m >>> cut != -1L >>> cut || !roundsUp(sign, m, cut);
+                isTiny = missing > 1 || m >>> cut != -1L >>> cut || !roundsUp(resultSign, m, cut);
             }
             if ((kept & (1L << cut) - 1) != 0) {
                 raised |= isTiny ? INEXACT | UNDERFLOW : INEXACT;
             }
-            long whole = (kept >>> cut) + (roundsUp(sign, kept, cut) ? 1 : 0);
+            long whole = (kept >>> cut) + (roundsUp(resultSign, kept, cut) ? 1 : 0);
             if (missing > 0) {
-                return signed(sign, whole);
+                return signed(resultSign, whole);
             }
             // The highest bit of whole adds the one that is taken off here, a carry one more.
-            long magnitude = ((long) (scale + bias() - 1) << fractionBits()) + whole;
-            boolean isBeyond = scale > bias() || magnitude >>> fractionBits() >= 2 * bias() + 1;
-            return isBeyond ? overflown(sign) : signed(sign, magnitude);
+            long magnitude = ((long) (resultScale + bias - 1) << fractionBits) + whole;
+            boolean isBeyond = resultScale > bias || magnitude >= infinity;
+            return signed(resultSign, isBeyond ? overflown() : magnitude);
         }
 
-        private long overflown(int sign) {
+        private long overflown() {
             raised |= OVERFLOW | INEXACT;
-            boolean away = rounding == 0 || rounding == 4 || rounding == (sign == 0 ? 3 : 2);
-            return away ? infinite(sign) : infinite(sign) - 1;
+            boolean isAway = rounding == 0 || rounding == 4 || rounding == (resultSign == 0 ? 3 : 2);
+            return isAway ? infinity : infinity - 1;
         }
 
         /** Whether m without its lowest bits, as many as cut tells, grows by 1 when it is rounded. */
@@ -1560,67 +1529,62 @@ public final class BoardMachine {
         }
 
         private int convertFormat(int a) {
-            isSingle = !isSingle;
+            boolean toSingle = isSingle;
+            setFormat(!toSingle);
             read(0, a);
-            isSingle = !isSingle;
-            switch (kinds[0]) {
-                case ZERO: return give(signed(signs[0], 0));
-                case FINITE: return leave(signs[0], scales[0], digits[0]);
-                case INFINITE: return give(infinite(signs[0]));
-                default: return giveQuiet(1);
-            }
+            setFormat(toSingle);
+            resultSign = signs[0];
+            resultScale = scales[0];
+            high = digits[0];
+            low = 0;
+            return isNoNumber(0) ? spoil(1) : kinds[0];
         }
 
         private int injectSign(int r, int a, int b) {
             read(0, a);
             read(1, b);
             int sign = r == 0 ? signs[1] : r == 1 ? 1 - signs[1] : signs[0] ^ signs[1];
-            return give(signed(sign, magnitudes[0]));
+            return give(signed(sign, magnitudes[0]), BITS);
         }
 
         private int chooseOne(int r, int a, int b) {
             read(0, a);
             read(1, b);
-            if (kinds[0] == SIGNALING || kinds[1] == SIGNALING) {
-                raised |= INVALID;
-            }
+            spoil(2);
             if (isNoNumber(0) && isNoNumber(1)) {
-                return give(quietOne());
+                return NO_NUMBER;
             }
-            boolean first;
-            if (isNoNumber(0) || isNoNumber(1)) {
-                first = isNoNumber(1);
-            } else {
-                first = r == 0 ? place(0, 1) <= place(1, 1) : place(0, 1) >= place(1, 1);
+            boolean isFirst = isNoNumber(1);
+            if (!isNoNumber(0) && !isNoNumber(1)) {
+                isFirst = r == 0 ? place(0, 1) <= place(1, 1) : place(0, 1) >= place(1, 1);
             }
-            int slot = first ? 0 : 1;
-            return give(signed(signs[slot], magnitudes[slot]));
+            int slot = isFirst ? 0 : 1;
+            return give(signed(signs[slot], magnitudes[slot]), BITS);
         }
 
-        /** A long that is ordered like the operands; below is how far the zero with the sign 1 is below the other. */
-        private long place(int slot, int below) {
-            return signs[slot] == 1 ? -magnitudes[slot] - below : magnitudes[slot];
+        /** A long that is ordered like the operands; gap is how far the zero with the sign 1 is below the other. */
+        private long place(int slot, int gap) {
+            return signs[slot] == 1 ? -magnitudes[slot] - gap : magnitudes[slot];
         }
 
         private int compareBoth(int r, int a, int b) {
             read(0, a);
             read(1, b);
             if (isNoNumber(0) || isNoNumber(1)) {
-                if (r != 2 || kinds[0] == SIGNALING || kinds[1] == SIGNALING) {
-                    raised |= INVALID;
-                }
-                return giveInteger(0);
+                spoil(2);
+                raised |= r == 2 ? 0 : INVALID;
+                return give(0, INTEGER);
             }
             long x = place(0, 0);
             long y = place(1, 0);
             boolean holds = r == 0 ? x <= y : r == 1 ? x < y : x == y;
-            return giveInteger(holds ? 1 : 0);
+            return give(holds ? 1 : 0, INTEGER);
         }
 
         private int toInteger(int b, int a) {
             read(0, a);
             if (kinds[0] == ZERO) {
-                return giveInteger(0);
+                return give(0, INTEGER);
             }
             int sign = isNoNumber(0) ? 0 : signs[0];
             if (kinds[0] != FINITE || scales[0] > 63) {
@@ -1629,7 +1593,7 @@ public final class BoardMachine {
             high = digits[0];
             low = 0;
             shiftRight(63 - scales[0]);
-            // The last bit before the point, half of it, and whatever is below that.
+            // The last bit before the point, the first behind it, and whatever is below that.
             long ending = (high & 1) << 2 | (low < 0 ? 2 : 0) | (low << 1 != 0 ? 1 : 0);
             long size = high + (roundsUp(sign, ending, 2) ? 1 : 0);
             if (!fits(b, sign, size)) {
@@ -1637,7 +1601,7 @@ public final class BoardMachine {
             }
             raised |= low != 0 ? INEXACT : 0;
             long v = sign == 1 ? -size : size;
-            return giveInteger(b < 2 ? (int) v : v);
+            return give(b < 2 ? (int) v : v, INTEGER);
         }
 
         /** Whether there is an integer of sort b with this sign and size, which is without sign. */
@@ -1653,30 +1617,28 @@ public final class BoardMachine {
         private int giveLimit(int b, int sign) {
             raised = INVALID;
             switch (b) {
-                case 0: return giveInteger(sign == 1 ? Integer.MIN_VALUE : Integer.MAX_VALUE);
-                case 2: return giveInteger(sign == 1 ? Long.MIN_VALUE : Long.MAX_VALUE);
-                default: return giveInteger(sign == 1 ? 0 : -1);
+                case 0: return give(sign == 1 ? Integer.MIN_VALUE : Integer.MAX_VALUE, INTEGER);
+                case 2: return give(sign == 1 ? Long.MIN_VALUE : Long.MAX_VALUE, INTEGER);
+                default: return give(sign == 1 ? 0 : -1, INTEGER);
             }
         }
 
         private int fromInteger(int b, long v) {
             long counted = b == 0 ? (int) v : b == 1 ? v & 0xFFFFFFFFL : v;
-            if (counted == 0) {
-                return give(0);
-            }
-            int sign = b != 3 && counted < 0 ? 1 : 0;
-            long size = sign == 1 ? -counted : counted;
-            int zeros = Long.numberOfLeadingZeros(size);
-            return leave(sign, 63 - zeros, size << zeros);
+            resultSign = b != 3 && counted < 0 ? 1 : 0;
+            resultScale = 63;
+            high = resultSign == 1 ? -counted : counted;
+            low = 0;
+            return counted == 0 ? ZERO : FINITE;
         }
 
         private int examine(int r, int a) {
             if (r == 0) {
-                return giveInteger(isSingle ? (int) registers[a] : registers[a]);
+                return give(isSingle ? (int) registers[a] : registers[a], INTEGER);
             }
             read(0, a);
             boolean isNegative = signs[0] == 1;
-            boolean isNormal = magnitudes[0] >>> fractionBits() != 0;
+            boolean isNormal = magnitudes[0] >>> fractionBits != 0;
             int n;
             switch (kinds[0]) {
                 case ZERO: n = isNegative ? 3 : 4; break;
@@ -1685,7 +1647,7 @@ public final class BoardMachine {
                 case SIGNALING: n = 8; break;
                 default: n = 9; break;
             }
-            return giveInteger(1L << n);
+            return give(1L << n, INTEGER);
         }
     }
 
@@ -1764,11 +1726,11 @@ public final class BoardMachine {
         }
 
         boolean mayReachUser() {
-            return has(SUM);
+            return (held[STATUS] & SUM) != 0;
         }
 
         boolean mayLoadCode() {
-            return has(MXR);
+            return (held[STATUS] & MXR) != 0;
         }
 
         private long pending() {
@@ -2107,7 +2069,7 @@ public final class BoardMachine {
                 if (!memory.holds(at, 8) || !letsThrough(at, 8, LOADING, 1)) {
                     return ACCESS_FAULTS[access];
                 }
-                long entry = memory.number((int) (at - Memory.BASE), 8);
+                long entry = memory.number(at, 8);
                 page = entry >>> 10 & PAGE_MASK;
                 if ((entry & VALID) == 0 || (entry & (READABLE | WRITABLE)) == WRITABLE || entry >>> 54 != 0) {
                     return PAGE_FAULTS[access];
@@ -2149,7 +2111,7 @@ public final class BoardMachine {
             if (!letsThrough(lastAt, 8, STORING, 1)) {
                 return ACCESS_FAULTS[access];
             }
-            memory.put((int) (lastAt - Memory.BASE), 8, lastEntry | marks);
+            memory.put(lastAt, 8, lastEntry | marks);
             return 0;
         }
     }
@@ -2188,11 +2150,7 @@ public final class BoardMachine {
             }
         }
 
-        /** Ends what a step began: the disk works here, and not amid a store, to keep calls from going too deep. */
-        void settle() {
-            if (disk.isCalled) {
-                disk.work();
-            }
+        void feelSignals() {
             controller.feel((disk.causes != 0 ? 1 << 1 : 0) | (serial.reason() != 1 ? 1 << 10 : 0));
         }
 
@@ -2409,7 +2367,7 @@ public final class BoardMachine {
         private final int[] in = new int[QUEUE_ROOM];
         private int inFirst;
         private int inCount;
-        private boolean hasQueue;
+        private int room = 1;
         private boolean isOverrun;
         private boolean isEmptied;
         // Registers 0 and 1 here are those that stand behind bit 7 of register 3.
@@ -2427,13 +2385,9 @@ public final class BoardMachine {
             return taken;
         }
 
-        private int room() {
-            return hasQueue ? QUEUE_ROOM : 1;
-        }
-
         /** The first byte of INPUT comes, if it may. */
         void arrive() {
-            if (inputCount == 0 || inCount >= room()) {
+            if (inputCount == 0 || inCount >= room) {
                 return;
             }
             int v = input[inputFirst] & 255;
@@ -2445,7 +2399,7 @@ public final class BoardMachine {
         }
 
         private boolean receive(int v) {
-            if (inCount >= room()) {
+            if (inCount >= room) {
                 isOverrun = true;
                 return false;
             }
@@ -2503,7 +2457,7 @@ public final class BoardMachine {
             if (reason == 2) {
                 isEmptied = false;
             }
-            return reason | (hasQueue ? 192 : 0);
+            return reason | (room == QUEUE_ROOM ? 192 : 0);
         }
 
         private int tellLine() {
@@ -2549,11 +2503,11 @@ public final class BoardMachine {
         }
 
         private void setQueue(int v) {
-            boolean wanted = (v & 1) != 0;
-            if (wanted != hasQueue || (v & 2) != 0) {
+            int wanted = (v & 1) != 0 ? QUEUE_ROOM : 1;
+            if (wanted != room || (v & 2) != 0) {
                 inCount = 0;
             }
-            hasQueue = wanted;
+            room = wanted;
         }
     }
 
@@ -2671,7 +2625,11 @@ public final class BoardMachine {
             answered = 0;
         }
 
+        /** Works if it was called: behind the step that called it, as amid its store calls would go too deep. */
         void work() {
+            if (!isCalled) {
+                return;
+            }
             isCalled = false;
             if ((state & RUNNING) == 0 || (state & BROKEN) != 0 || !isReady) {
                 return;
@@ -2679,9 +2637,9 @@ public final class BoardMachine {
             int requests = 0;
             boolean isQuiet = false;
             boolean goesOn = true;
-            while (goesOn && requests <= REQUESTS_AT_ONCE) {
+            for (int turn = 0; goesOn && turn <= REQUESTS_AT_ONCE; turn++) {
                 boolean isThere = memory.holds(offersAt, 4);
-                long heading = isThere ? number(offersAt, 4) : 0;
+                long heading = isThere ? memory.number(offersAt, 4) : 0;
                 int ahead = (int) (heading >>> 16) - taken & 65535;
                 isQuiet = (heading & 1) == 1;
                 goesOn = isThere && ahead != 0 && requests < REQUESTS_AT_ONCE;
@@ -2695,14 +2653,6 @@ public final class BoardMachine {
             causes |= requests > 0 && !isQuiet ? 1 : 0;
         }
 
-        private long number(long address, int n) {
-            return memory.number((int) (address - Memory.BASE), n);
-        }
-
-        private void put(long address, int n, long v) {
-            memory.put((int) (address - Memory.BASE), n, v);
-        }
-
         /** Does the next request and answers it; answers false, having changed nothing, when the device breaks. */
         private boolean answerNext() {
             long offer = offersAt + 4 + 2 * (taken % queueSize);
@@ -2711,16 +2661,16 @@ public final class BoardMachine {
             if (!memory.holds(offer, 2) || !memory.holds(answer, 8) || !memory.holds(count, 2)) {
                 return false;
             }
-            int first = (int) number(offer, 2);
+            int first = (int) memory.number(offer, 2);
             if (!collect(first)) {
                 return false;
             }
             int written = serve();
-            put(answer, 4, first);
-            put(answer + 4, 4, written);
+            memory.put(answer, 4, first);
+            memory.put(answer + 4, 4, written);
             taken = taken + 1 & 65535;
             answered = answered + 1 & 65535;
-            put(count, 2, answered);
+            memory.put(count, 2, answered);
             return true;
         }
 
@@ -2730,25 +2680,27 @@ public final class BoardMachine {
             closedCount = 0;
             int k = first;
             boolean goesOn = true;
-            while (goesOn) {
+            while (goesOn && blockCount < queueSize) {
                 long at = blocksAt + 16L * k;
-                if (blockCount >= queueSize || k >= queueSize || !memory.holds(at, 16)) {
+                if (k >= queueSize || !memory.holds(at, 16)) {
                     return false;
                 }
-                int marks = (int) number(at + 12, 2);
+                long length = memory.number(at + 8, 4);
+                int marks = (int) memory.number(at + 12, 2);
                 boolean isClosed = (marks & OPEN) == 0;
-                addresses[blockCount] = number(at, 8);
-                lengths[blockCount] = number(at + 8, 4);
-                boolean isThere = lengths[blockCount] == 0 || memory.holds(addresses[blockCount], lengths[blockCount]);
-                if ((marks & REFUSED) != 0 || isClosed && closedCount < blockCount || !isThere) {
+                addresses[blockCount] = memory.number(at, 8);
+                lengths[blockCount] = length;
+                boolean isThere = length == 0 || memory.holds(addresses[blockCount], length);
+                if (!isThere || (marks & REFUSED) != 0 || isClosed && closedCount < blockCount) {
                     return false;
                 }
                 closedCount += isClosed ? 1 : 0;
                 blockCount++;
-                k = (int) number(at + 14, 2);
+                k = (int) memory.number(at + 14, 2);
                 goesOn = (marks & MORE) != 0;
             }
-            return closedCount > 0 && lengths[0] >= 16 && closedCount < blockCount && lengths[blockCount - 1] > 0;
+            return !goesOn && closedCount > 0 && lengths[0] >= 16 && closedCount < blockCount
+                    && lengths[blockCount - 1] > 0;
         }
 
         private long total(int from, int to) {
@@ -2761,8 +2713,8 @@ public final class BoardMachine {
 
         /** Does the request; answers how many bytes were written into open blocks. */
         private int serve() {
-            long kind = number(addresses[0], 4);
-            long sector = number(addresses[0] + 8, 8);
+            long kind = memory.number(addresses[0], 4);
+            long sector = memory.number(addresses[0] + 8, 8);
             long writable = total(closedCount, blockCount) - 1;
             long readable = total(1, closedCount);
             int result = RESULT_DONE;
@@ -2779,7 +2731,7 @@ public final class BoardMachine {
             } else if (kind != 4) {
                 result = kind <= 1 ? RESULT_WRONG : RESULT_UNKNOWN;
             }
-            put(addresses[blockCount - 1] + lengths[blockCount - 1] - 1, 1, result);
+            memory.put(addresses[blockCount - 1] + lengths[blockCount - 1] - 1, 1, result);
             return poured + 1;
         }
 
@@ -2797,7 +2749,7 @@ public final class BoardMachine {
             for (int i = closedCount; i < blockCount; i++) {
                 for (int j = 0; j < lengths[i] && done < count; j++) {
                     int letter = done < NAME.length ? NAME[done] : 0;
-                    put(addresses[i] + j, 1, from == NONE ? letter : sectors[from + done]);
+                    memory.put(addresses[i] + j, 1, from == NONE ? letter : sectors[from + done]);
                     done++;
                 }
             }
@@ -2808,7 +2760,7 @@ public final class BoardMachine {
             int done = 0;
             for (int i = 1; i < closedCount; i++) {
                 for (int j = 0; j < lengths[i]; j++) {
-                    sectors[from + done] = (byte) number(addresses[i] + j, 1);
+                    sectors[from + done] = (byte) memory.number(addresses[i] + j, 1);
                     done++;
                 }
             }
@@ -2827,7 +2779,15 @@ public final class BoardMachine {
 
         Tree(int processors) {
             size = HEADER;
-            addFirstNode(processors);
+            begin("");
+            addGeneral();
+            for (int h = 0; h < processors; h++) {
+                addProcessor(h);
+            }
+            finish();
+            addMemory();
+            addDevices(processors);
+            finish();
             addNumber(LAST);
             int structure = size - HEADER;
             for (int i = 0; i < NAMES.length(); i++) {
@@ -2904,11 +2864,6 @@ public final class BoardMachine {
             addNumber(length);
         }
 
-        private void cells(int address, int length) {
-            numberProperty("#address-cells", address);
-            numberProperty("#size-cells", length);
-        }
-
         /** Where a name begins among the names. */
         private static int placeOf(String name) {
             int place = 0;
@@ -2935,26 +2890,25 @@ public final class BoardMachine {
             return true;
         }
 
-        private void addFirstNode(int processors) {
-            begin("");
-            cells(2, 2);
+        /** Leaves the node of the processors open. */
+        private void addGeneral() {
+            numberProperty("#address-cells", 2);
+            numberProperty("#size-cells", 2);
             textProperty("compatible", "whole,board");
             textProperty("model", "board");
             begin("chosen");
             textProperty("stdout-path", "/soc/serial@10000000");
             finish();
             begin("cpus");
-            cells(1, 0);
+            numberProperty("#address-cells", 1);
+            numberProperty("#size-cells", 0);
             numberProperty("timebase-frequency", 10000000);
-            for (int h = 0; h < processors; h++) {
-                addProcessor(h);
-            }
-            finish();
+        }
+
+        private void addMemory() {
             begin("memory@80000000");
             textProperty("device_type", "memory");
             regionProperty(Memory.BASE, Memory.SIZE);
-            finish();
-            addDevices(processors);
             finish();
         }
 
@@ -2977,7 +2931,8 @@ public final class BoardMachine {
 
         private void addDevices(int processors) {
             begin("soc");
-            cells(2, 2);
+            numberProperty("#address-cells", 2);
+            numberProperty("#size-cells", 2);
             textProperty("compatible", "simple-bus");
             property("ranges", 0);
             begin("end@100000");
@@ -3001,12 +2956,14 @@ public final class BoardMachine {
             begin("serial@10000000");
             textProperty("compatible", "whole,serial");
             regionProperty(Windows.SERIAL_AT, 256);
-            sourceProperties(10, processors + 1);
+            numberProperty("interrupts", 10);
+            numberProperty("interrupt-parent", processors + 1);
             finish();
             begin("block@10001000");
             textProperty("compatible", "whole,block");
             regionProperty(Windows.DISK_AT, 4096);
-            sourceProperties(1, processors + 1);
+            numberProperty("interrupts", 1);
+            numberProperty("interrupt-parent", processors + 1);
             finish();
             finish();
         }
@@ -3019,11 +2976,6 @@ public final class BoardMachine {
                 addNumber(h + 1);
                 addNumber(other);
             }
-        }
-
-        private void sourceProperties(int source, int parent) {
-            numberProperty("interrupts", source);
-            numberProperty("interrupt-parent", parent);
         }
     }
 }
