@@ -1,0 +1,644 @@
+import java.math.BigInteger;
+import java.util.Random;
+
+/** Part 3 against exact arithmetic over whole numbers of any size. */
+public final class FloatTest {
+    private static final BigInteger ONE = BigInteger.ONE, ZERO = BigInteger.ZERO;
+    private static final int NX = 1, UF = 2, OF = 4, DZ = 8, NV = 16;
+    private static final Rig rig = new Rig(1);
+    private static final Random random = new Random(20261115);
+
+    // The format at hand, and what the reference leaves.
+    private static boolean single;
+    private static int rm;
+    private static int flags;
+
+    private static int fractionBits() {
+        return single ? 23 : 52;
+    }
+
+    private static int bias() {
+        return single ? 127 : 1023;
+    }
+
+    private static long signBit() {
+        return single ? 1L << 31 : 1L << 63;
+    }
+
+    private static long infinity() {
+        return (2L * bias() + 1) << fractionBits();
+    }
+
+    private static long quiet() {
+        return infinity() | 1L << fractionBits() - 1;
+    }
+
+    private static long magnitude(long v) {
+        return v & signBit() - 1;
+    }
+
+    private static boolean isNan(long v) {
+        return magnitude(v) > infinity();
+    }
+
+    private static boolean isSignaling(long v) {
+        return isNan(v) && (v >>> fractionBits() - 1 & 1) == 0;
+    }
+
+    private static boolean isInf(long v) {
+        return magnitude(v) == infinity();
+    }
+
+    private static boolean isNegative(long v) {
+        return (v & signBit()) != 0;
+    }
+
+    /** The number times 2^1200, exactly. */
+    private static BigInteger exact(long v) {
+        long m = magnitude(v);
+        long e = m >>> fractionBits();
+        long f = m & (1L << fractionBits()) - 1;
+        BigInteger whole = BigInteger.valueOf(e == 0 ? f : f | 1L << fractionBits());
+        whole = whole.shiftLeft((int) ((e == 0 ? 1 : e) - bias() - fractionBits()) + 1200);
+        return isNegative(v) ? whole.negate() : whole;
+    }
+
+    /** n / d, not 0, rounded to the format. */
+    private static long round(BigInteger n, BigInteger d) {
+        boolean negative = n.signum() < 0;
+        BigInteger size = n.abs();
+        int log = size.bitLength() - d.bitLength();
+        if (compareToPower(size, d, log) < 0) {
+            log--;
+        }
+        int least = 1 - bias();
+        BigInteger free = onGrid(size, d, log - fractionBits(), negative);
+        boolean tiny = compareToPower(size, d, least) < 0
+                && free.compareTo(power(least - (log - fractionBits()))) < 0;
+        int quantum = Math.max(log, least) - fractionBits();
+        BigInteger k = onGrid(size, d, quantum, negative);
+        boolean inexact = !scaled(size, d, quantum)[0].equals(k.multiply(scaled(size, d, quantum)[1]));
+        long sign = negative ? signBit() : 0;
+        if (k.bitLength() + quantum > bias() + 1) {
+            flags |= OF | NX;
+            boolean away = rm == 0 || rm == 4 || rm == 3 && !negative || rm == 2 && negative;
+            return sign | (away ? infinity() : infinity() - 1);
+        }
+        if (inexact) {
+            flags |= tiny ? NX | UF : NX;
+        }
+        if (k.bitLength() == fractionBits() + 2) {
+            k = k.shiftRight(1);
+            quantum++;
+        }
+        if (k.bitLength() <= fractionBits()) {
+            return sign | k.longValue();
+        }
+        return sign | (long) (quantum + fractionBits() + bias()) << fractionBits()
+                | k.longValue() & (1L << fractionBits()) - 1;
+    }
+
+    private static BigInteger power(int n) {
+        return n < 0 ? ZERO : ONE.shiftLeft(n);
+    }
+
+    private static int compareToPower(BigInteger n, BigInteger d, int log) {
+        return log >= 0 ? n.compareTo(d.shiftLeft(log)) : n.shiftLeft(-log).compareTo(d);
+    }
+
+    private static BigInteger[] scaled(BigInteger n, BigInteger d, int quantum) {
+        return quantum >= 0 ? new BigInteger[] {n, d.shiftLeft(quantum)} : new BigInteger[] {n.shiftLeft(-quantum), d};
+    }
+
+    private static BigInteger onGrid(BigInteger n, BigInteger d, int quantum, boolean negative) {
+        BigInteger[] s = scaled(n, d, quantum);
+        BigInteger[] qr = s[0].divideAndRemainder(s[1]);
+        int half = qr[1].shiftLeft(1).compareTo(s[1]);
+        boolean some = qr[1].signum() != 0;
+        boolean up;
+        switch (rm) {
+            case 0: up = half > 0 || half == 0 && qr[0].testBit(0); break;
+            case 1: up = false; break;
+            case 2: up = negative && some; break;
+            case 3: up = !negative && some; break;
+            default: up = half >= 0; break;
+        }
+        return up ? qr[0].add(ONE) : qr[0];
+    }
+
+    private static long nanOf(long... operands) {
+        for (long v : operands) {
+            if (isSignaling(v)) {
+                flags |= NV;
+            }
+        }
+        return quiet();
+    }
+
+    private static long invalid() {
+        flags |= NV;
+        return quiet();
+    }
+
+    private static long fused(long x, long y, long z) {
+        boolean xZero = magnitude(x) == 0, yZero = magnitude(y) == 0, zZero = magnitude(z) == 0;
+        boolean negative = isNegative(x) ^ isNegative(y);
+        if (xZero && isInf(y) || yZero && isInf(x)) {
+            return invalid();
+        }
+        if (isNan(x) || isNan(y) || isNan(z)) {
+            return nanOf(x, y, z);
+        }
+        if (isInf(x) || isInf(y)) {
+            return isInf(z) && isNegative(z) != negative ? invalid() : infinity() | (negative ? signBit() : 0);
+        }
+        if (isInf(z)) {
+            return z;
+        }
+        BigInteger sum = exact(x).multiply(exact(y)).add(exact(z).shiftLeft(1200));
+        if (sum.signum() != 0) {
+            return round(sum, ONE.shiftLeft(2400));
+        }
+        if ((xZero || yZero) && zZero && negative == isNegative(z)) {
+            return z;
+        }
+        return rm == 2 ? signBit() : 0;
+    }
+
+    private static long one() {
+        return (long) bias() << fractionBits();
+    }
+
+    private static long times(long x, long y) {
+        boolean xZero = magnitude(x) == 0, yZero = magnitude(y) == 0;
+        long sign = (x ^ y) & signBit();
+        if (xZero && isInf(y) || yZero && isInf(x)) {
+            return invalid();
+        }
+        if (isNan(x) || isNan(y)) {
+            return nanOf(x, y);
+        }
+        if (isInf(x) || isInf(y)) {
+            return sign | infinity();
+        }
+        return xZero || yZero ? sign : round(exact(x).multiply(exact(y)), ONE.shiftLeft(2400));
+    }
+
+    private static long divided(long x, long y) {
+        boolean xZero = magnitude(x) == 0, yZero = magnitude(y) == 0;
+        long sign = (x ^ y) & signBit();
+        if (isNan(x) || isNan(y)) {
+            return nanOf(x, y);
+        }
+        if (xZero && yZero || isInf(x) && isInf(y)) {
+            return invalid();
+        }
+        if (isInf(x)) {
+            return sign | infinity();
+        }
+        if (yZero) {
+            flags |= DZ;
+            return sign | infinity();
+        }
+        if (xZero || isInf(y)) {
+            return sign;
+        }
+        BigInteger n = exact(x), d = exact(y);
+        return round(d.signum() < 0 ? n.negate() : n, d.abs());
+    }
+
+    private static long root(long x) {
+        if (isNan(x)) {
+            return nanOf(x);
+        }
+        if (magnitude(x) == 0) {
+            return x;
+        }
+        if (isNegative(x)) {
+            return invalid();
+        }
+        if (isInf(x)) {
+            return x;
+        }
+        // 400 bits more than are there, and half of the last one where the root goes on.
+        BigInteger shifted = exact(x).shiftLeft(800);
+        BigInteger floor = shifted.sqrt();
+        BigInteger twice = floor.shiftLeft(1);
+        if (!floor.multiply(floor).equals(shifted)) {
+            twice = twice.add(ONE);
+        }
+        return round(twice, ONE.shiftLeft(1001));
+    }
+
+    private static long converted(long v, boolean fromSingle) {
+        boolean to = single;
+        single = fromSingle;
+        boolean nan = isNan(v), signaling = isSignaling(v), inf = isInf(v), negative = isNegative(v);
+        boolean zero = magnitude(v) == 0;
+        BigInteger n = exact(v);
+        single = to;
+        if (nan) {
+            flags |= signaling ? NV : 0;
+            return quiet();
+        }
+        long sign = negative ? signBit() : 0;
+        return inf ? sign | infinity() : zero ? sign : round(n, ONE.shiftLeft(1200));
+    }
+
+    private static long toInteger(long v, int b) {
+        BigInteger least = b == 0 ? ONE.shiftLeft(31).negate() : b == 2 ? ONE.shiftLeft(63).negate() : ZERO;
+        BigInteger most = ONE.shiftLeft(new int[] {31, 32, 63, 64}[b]).subtract(ONE);
+        BigInteger result;
+        if (isNan(v) || isInf(v)) {
+            flags |= NV;
+            result = isInf(v) && isNegative(v) ? least : most;
+        } else {
+            BigInteger n = exact(v);
+            BigInteger size = onGrid(n.abs(), ONE.shiftLeft(1200), 0, isNegative(v));
+            result = isNegative(v) ? size.negate() : size;
+            if (result.compareTo(least) < 0 || result.compareTo(most) > 0) {
+                flags |= NV;
+                result = result.compareTo(least) < 0 ? least : most;
+            } else if (!result.shiftLeft(1200).equals(n)) {
+                flags |= NX;
+            }
+        }
+        return b < 2 ? (int) result.longValue() : result.longValue();
+    }
+
+    private static long fromInteger(long v, int b) {
+        BigInteger n = BigInteger.valueOf(b == 0 ? (int) v : b == 1 ? v & 0xFFFFFFFFL : v);
+        if (b == 3 && v < 0) {
+            n = n.add(ONE.shiftLeft(64));
+        }
+        return n.signum() == 0 ? 0 : round(n, ONE);
+    }
+
+    private static int order(long x, long y) {
+        return exact(x).compareTo(exact(y));
+    }
+
+    private static boolean isLess(long x, long y) {
+        if (isInf(x) || isInf(y)) {
+            long a = isNegative(x) ? -magnitude(x) : magnitude(x);
+            long b = isNegative(y) ? -magnitude(y) : magnitude(y);
+            return a < b;
+        }
+        return order(x, y) < 0;
+    }
+
+    private static long compared(long x, long y, int r) {
+        if (isNan(x) || isNan(y)) {
+            flags |= r != 2 || isSignaling(x) || isSignaling(y) ? NV : 0;
+            return 0;
+        }
+        boolean holds = r == 0 ? !isLess(y, x) : r == 1 ? isLess(x, y) : !isLess(x, y) && !isLess(y, x);
+        return holds ? 1 : 0;
+    }
+
+    private static long chosen(long x, long y, int r) {
+        nanOf(x, y);
+        if (isNan(x) || isNan(y)) {
+            return isNan(x) && isNan(y) ? quiet() : isNan(x) ? y : x;
+        }
+        if (magnitude(x) == 0 && magnitude(y) == 0) {
+            return r == 0 ? x | y : x & y;
+        }
+        boolean less = isLess(x, y);
+        return less == (r == 0) ? x : y;
+    }
+
+    private static long classed(long v) {
+        boolean negative = isNegative(v);
+        if (isNan(v)) {
+            return isSignaling(v) ? 1 << 8 : 1 << 9;
+        }
+        if (isInf(v)) {
+            return negative ? 1 : 1 << 7;
+        }
+        if (magnitude(v) == 0) {
+            return negative ? 1 << 3 : 1 << 4;
+        }
+        boolean normal = magnitude(v) >>> fractionBits() != 0;
+        return normal ? negative ? 1 << 1 : 1 << 6 : negative ? 1 << 2 : 1 << 5;
+    }
+
+    // Running one instruction: f1, f2, f3 are operands, x7 the integer; f4 and x8 get what comes out.
+
+    private static long gotFloat, gotInteger, gotFlags;
+    private static boolean gotIllegal;
+
+    private static void runOne(int w, int mode, long a, long b, long c, long v) {
+        rig.words(Rig.BASE,
+                Rig.lui(5, 2), Rig.csrrs(0, 768, 5), Rig.csrrwi(0, 2, mode), Rig.auipc(6, 0),
+                Rig.i(7, 1, 3, 6, 44), Rig.i(7, 2, 3, 6, 52), Rig.i(7, 3, 3, 6, 60), Rig.ld(7, 6, 68),
+                Rig.csrrwi(0, 768, 0), Rig.csrrs(0, 768, 5), w, Rig.NOP, Rig.NOP, Rig.NOP,
+                (int) a, (int) (a >>> 32), (int) b, (int) (b >>> 32), (int) c, (int) (c >>> 32), (int) v,
+                (int) (v >>> 32));
+        rig.machine.start();
+        rig.machine.run(11);
+        gotFloat = rig.f(4);
+        gotInteger = rig.x(8);
+        gotFlags = rig.csr(1);
+        gotIllegal = rig.csr(834) == 2;
+    }
+
+    private static long boxed(long v) {
+        return single ? v & 0xFFFFFFFFL | -1L << 32 : v;
+    }
+
+    private static long[] edges() {
+        long f = fractionBits();
+        return new long[] {0, 1, 2, 3, (1L << f) - 1, 1L << f, (1L << f) + 1, one() - 1, one(), one() + 1,
+            one() + (1L << f - 1), one() + (1L << f), infinity() - 1, infinity() - 2, infinity(), infinity() + 1,
+            quiet(), quiet() + 1, infinity() - (1L << f), (long) (bias() + 31) << f, (long) (bias() + 32) << f,
+            (long) (bias() + 63) << f, (long) (bias() + 64) << f, ((long) (bias() + 31) << f) - 1,
+            ((long) (bias() + 32) << f) - 1, (long) (bias() - 1) << f, ((long) (bias() - 1) << f) + 1,
+            (long) (bias() - 2) << f, (long) (bias() / 2) << f, (long) (bias() / 2 + 1) << f};
+    }
+
+    private static long operand(int i) {
+        long[] e = edges();
+        if (i < 2 * e.length) {
+            return e[i / 2] | (i % 2 == 1 ? signBit() : 0);
+        }
+        long v = random.nextLong() & (single ? 0xFFFFFFFFL : -1L);
+        int sort = random.nextInt(6);
+        long mask = (1L << fractionBits()) - 1;
+        if (sort == 0) {
+            v &= signBit() | mask;
+        } else if (sort == 1) {
+            v = v & (signBit() | mask) | (long) (bias() - 3 + random.nextInt(7)) << fractionBits();
+        } else if (sort == 2) {
+            v = v & signBit() | e[random.nextInt(e.length)];
+        } else if (sort == 3) {
+            v &= ~mask | -1L << random.nextInt(fractionBits());
+        }
+        return v;
+    }
+
+    private static long anyOperand() {
+        return operand(random.nextInt(4) == 0 ? random.nextInt(60) : 1000);
+    }
+
+    /** A third operand near to the product of two, so that most of both goes. */
+    private static long nearProduct(long x, long y) {
+        int keep = flags;
+        long z = times(x, y);
+        flags = keep;
+        return (z ^ signBit()) + random.nextInt(3) - 1 & (single ? 0xFFFFFFFFL : -1L);
+    }
+
+    private static String told(String op, long x, long y, long z, int mode) {
+        return (single ? "single " : "double ") + op + " " + Long.toHexString(x) + " " + Long.toHexString(y) + " "
+                + Long.toHexString(z) + " mode " + mode;
+    }
+
+    private static void checkFloat(String op, long want, long x, long y, long z) {
+        Rig.due(told(op, x, y, z, rm), gotFloat, boxed(want));
+        Rig.due(told(op, x, y, z, rm) + " flags", gotFlags, flags);
+        boolean soiled = rig.csr(768) < 0;
+        Rig.due(told(op, x, y, z, rm) + " state", soiled);
+    }
+
+    private static void checkInteger(String op, long want, long x, long y) {
+        Rig.due(told(op, x, y, 0, rm), gotInteger, want);
+        Rig.due(told(op, x, y, 0, rm) + " flags", gotFlags, flags);
+        Rig.due(told(op, x, y, 0, rm) + " state", (rig.csr(768) >>> 13 & 3) == (flags != 0 ? 3 : 1));
+    }
+
+    private static int word(int code, int k, int r, int b, int d) {
+        return Rig.r(code, d, r, 1, b, k << 2 | (single ? 0 : 1));
+    }
+
+    private static void arithmetic(long x, long y, long z) {
+        int r = random.nextBoolean() ? rm : 7;
+        for (int k = 0; k < 4; k++) {
+            flags = 0;
+            long minus = y ^ signBit();
+            long want = k == 0 ? fused(x, one(), y) : k == 1 ? fused(x, one(), isNan(y) ? y : minus)
+                    : k == 2 ? times(x, y) : divided(x, y);
+            runOne(word(83, k, r, 2, 4), rm, boxed(x), boxed(y), boxed(z), 0);
+            checkFloat("arithmetic " + k, want, x, y, 0);
+        }
+        for (int code = 67; code <= 79; code += 4) {
+            flags = 0;
+            long first = isNan(x) ? x : code >= 75 ? x ^ signBit() : x;
+            long third = isNan(z) ? z : code == 71 || code == 79 ? z ^ signBit() : z;
+            long want = fused(first, y, third);
+            runOne(word(code, 3, r, 2, 4), rm, boxed(x), boxed(y), boxed(z), 0);
+            checkFloat("fused " + code, want, x, y, z);
+        }
+        flags = 0;
+        long want = root(x);
+        runOne(word(83, 11, r, 0, 4), rm, boxed(x), 0, 0, 0);
+        checkFloat("root", want, x, 0, 0);
+    }
+
+    private static void others(long x, long y) {
+        for (int r = 0; r < 3; r++) {
+            flags = 0;
+            long sign = r == 0 ? y : r == 1 ? ~y : x ^ y;
+            runOne(word(83, 4, r, 2, 4), rm, boxed(x), boxed(y), 0, 0);
+            checkFloat("sign " + r, magnitude(x) | sign & signBit(), x, y, 0);
+            flags = 0;
+            long want = compared(x, y, r);
+            runOne(word(83, 20, r, 2, 8), rm, boxed(x), boxed(y), 0, 0);
+            checkInteger("compare " + r, want, x, y);
+        }
+        for (int r = 0; r < 2; r++) {
+            flags = 0;
+            long want = chosen(x, y, r);
+            runOne(word(83, 5, r, 2, 4), rm, boxed(x), boxed(y), 0, 0);
+            checkFloat("choose " + r, want, x, y, 0);
+        }
+        flags = 0;
+        runOne(word(83, 28, 1, 0, 8), rm, boxed(x), 0, 0, 0);
+        checkInteger("class", classed(x), x, 0);
+        runOne(word(83, 28, 0, 0, 8), rm, boxed(x) ^ (single ? 1L << 40 : 0), 0, 0, 0);
+        checkInteger("bits", single ? (int) x : x, x, 0);
+    }
+
+    /** x7 is where integers come from. */
+    private static int fromSeven(int w) {
+        return w & ~(31 << 15) | 7 << 15;
+    }
+
+    private static void integers(long v) {
+        for (int b = 0; b < 4; b++) {
+            flags = 0;
+            long want = fromInteger(v, b);
+            runOne(fromSeven(word(83, 26, rm, b, 4)), rm, 0, 0, 0, v);
+            checkFloat("from integer " + b, want, v, 0, 0);
+        }
+        flags = 0;
+        runOne(fromSeven(word(83, 30, 0, 0, 4)), rm, 0, 0, 0, v);
+        checkFloat("give bits", v, v, 0, 0);
+    }
+
+    private static void toIntegers(long x) {
+        int r = random.nextBoolean() ? rm : 7;
+        for (int b = 0; b < 4; b++) {
+            flags = 0;
+            long want = toInteger(x, b);
+            runOne(word(83, 24, r, b, 8), rm, boxed(x), 0, 0, 0);
+            checkInteger("to integer " + b, want, x, 0);
+        }
+        flags = 0;
+        boolean from = single;
+        single = !from;
+        long want = converted(x, from);
+        int w = word(83, 8, r, single ? 1 : 0, 4);
+        runOne(w, rm, from ? x & 0xFFFFFFFFL | -1L << 32 : x, 0, 0, 0);
+        checkFloat("convert", want, x, 0, 0);
+        single = from;
+    }
+
+    private static void unboxed() {
+        single = true;
+        rm = 0;
+        flags = 0;
+        long one = one();
+        runOne(word(83, 0, 0, 2, 4), 0, one, boxed(one), 0, 0);
+        checkFloat("unboxed sum", quiet(), one, one, 0);
+        runOne(word(83, 0, 0, 2, 4), 0, boxed(one), one | -2L << 32, 0, 0);
+        checkFloat("unboxed sum", quiet(), one, one, 0);
+        runOne(word(83, 4, 0, 2, 4), 0, boxed(one), 1L << 31, 0, 0);
+        checkFloat("sign of one that is not boxed", one, one, 0, 0);
+        runOne(word(83, 4, 1, 2, 4), 0, 0, boxed(0), 0, 0);
+        checkFloat("one that is not boxed with a sign", quiet() | 1L << 31, 0, 0, 0);
+        runOne(word(83, 28, 1, 0, 8), 0, one, 0, 0, 0);
+        checkInteger("class of one that is not boxed", 1 << 9, one, 0);
+        single = false;
+        runOne(word(83, 8, 0, 0, 4), 0, one, 0, 0, 0);
+        checkFloat("double of one that is not boxed", quiet(), one, 0, 0);
+    }
+
+    private static void illegal(String what, int w, int mode, boolean want) {
+        runOne(w, mode, 0, 0, 0, 0);
+        Rig.due(what + " illegal", gotIllegal == want);
+        if (want) {
+            Rig.due(what + " value", rig.csr(835), w & 0xFFFFFFFFL);
+            Rig.due(what + " state", rig.csr(768) >>> 13 & 3, 1);
+        }
+    }
+
+    private static boolean isLegal(int k, int t, int r, int b, int mode) {
+        boolean rounds = (r == 7 ? mode : r) <= 4;
+        if (t > 1) {
+            return false;
+        }
+        switch (k) {
+            case 0: case 1: case 2: case 3: return rounds;
+            case 4: return r <= 2;
+            case 5: return r <= 1;
+            case 8: return rounds && b == 1 - t;
+            case 11: return rounds && b == 0;
+            case 20: return r <= 2;
+            case 24: case 26: return rounds && b <= 3;
+            case 28: return b == 0 && r <= 1;
+            case 30: return b == 0 && r == 0;
+            default: return false;
+        }
+    }
+
+    private static void legality() {
+        for (int k = 0; k < 32; k++) {
+            for (int t = 0; t < 4; t++) {
+                for (int r = 0; r < 8; r++) {
+                    for (int b = 0; b < 6; b++) {
+                        int mode = random.nextInt(8);
+                        illegal("k " + k + " t " + t + " r " + r + " b " + b + " mode " + mode,
+                                Rig.r(83, 4, r, 1, b, k << 2 | t), mode, !isLegal(k, t, r, b, mode));
+                    }
+                }
+            }
+        }
+        for (int code = 67; code <= 79; code += 4) {
+            for (int t = 0; t < 4; t++) {
+                for (int r = 0; r < 8; r++) {
+                    int mode = random.nextInt(8);
+                    illegal("fused " + code, Rig.r(code, 4, r, 1, 2, 3 << 2 | t), mode,
+                            t > 1 || (r == 7 ? mode : r) > 4);
+                }
+            }
+        }
+    }
+
+    /** With the state 0 nothing of part 3 may be done. */
+    private static void switchedOff() {
+        int[] words = {Rig.r(83, 4, 0, 1, 2, 1), Rig.i(7, 1, 3, 1, 0), Rig.s(39, 3, 1, 1, 0), Rig.csrrs(5, 1, 0),
+            Rig.csrrs(5, 2, 0), Rig.csrrwi(5, 3, 0), Rig.r(67, 4, 0, 1, 2, 1), Rig.i(7, 1, 3, 0, 1)};
+        for (int w : words) {
+            rig.exec(new long[] {Rig.DATA}, w);
+            Rig.due("with the state 0, cause of " + Integer.toHexString(w), rig.csr(834), 2);
+            Rig.due("with the state 0, value of " + Integer.toHexString(w), rig.csr(835), w & 0xFFFFFFFFL);
+        }
+    }
+
+    private static void flagRegisters() {
+        long[] registers = {0x2000, 0xFFL, -1L, 0x0FL};
+        rig.exec(registers, Rig.csrrs(0, 768, 1), Rig.csrrw(5, 3, 2), Rig.csrrs(6, 3, 0), Rig.csrrs(7, 1, 0),
+                Rig.csrrs(8, 2, 0), Rig.csrrc(9, 1, 4), Rig.csrrw(10, 2, 3), Rig.csrrw(11, 3, 3), Rig.csrrwi(12, 1, 1));
+        Rig.due("register 3 before", rig.x(5), 0);
+        Rig.due("register 3", rig.x(6), 255);
+        Rig.due("register 1", rig.x(7), 31);
+        Rig.due("register 2", rig.x(8), 7);
+        Rig.due("register 1 before clearing", rig.x(9), 31);
+        Rig.due("register 2 before writing", rig.x(10), 7);
+        Rig.due("register 3 before writing", rig.x(11), 0xF0);
+        Rig.due("register 1 before writing", rig.x(12), 31);
+        Rig.due("register 3 at last", rig.csr(3), 0xE1);
+        Rig.due("state", rig.csr(768) < 0);
+        rig.exec(registers, Rig.csrrs(0, 768, 1), Rig.csrrs(5, 3, 0));
+        Rig.due("state behind reading alone", rig.csr(768) >>> 13 & 3, 1);
+    }
+
+    private static void loadsAndStores() {
+        long v = 0x123456789ABCDEF0L;
+        rig.longs(Rig.DATA + 0x100, v, 0, 0);
+        rig.exec(new long[] {0x2000, Rig.DATA + 0x100}, Rig.csrrs(0, 768, 1), Rig.i(7, 1, 2, 2, 0), Rig.i(7, 2, 3, 2, 0),
+                Rig.s(39, 2, 2, 2, 8), Rig.s(39, 3, 2, 1, 16));
+        Rig.due("load of 4", rig.f(1), 0xFFFFFFFF9ABCDEF0L);
+        Rig.due("load of 8", rig.f(2), v);
+        Rig.due("store of 4", rig.machine.word(Rig.DATA + 0x108), 0x9ABCDEF0L);
+        Rig.due("store of 8", rig.machine.word(Rig.DATA + 0x110), 0xFFFFFFFF9ABCDEF0L);
+        Rig.due("state", rig.csr(768) < 0);
+        rig.exec(new long[] {0x2000, Rig.DATA + 0x100}, Rig.csrrs(0, 768, 1), Rig.s(39, 3, 2, 1, 16));
+        Rig.due("state behind a store", rig.csr(768) >>> 13 & 3, 1);
+    }
+
+    public static void main(String[] args) {
+        for (int round = 0; round < 2; round++) {
+            single = round == 0;
+            for (int i = 0; i < 60; i++) {
+                for (int j = 0; j < 60; j++) {
+                    rm = random.nextInt(5);
+                    long x = operand(i), y = operand(j);
+                    arithmetic(x, y, anyOperand());
+                    others(x, y);
+                }
+            }
+            for (int i = 0; i < 4000; i++) {
+                rm = random.nextInt(5);
+                long x = anyOperand(), y = anyOperand();
+                arithmetic(x, y, random.nextInt(3) == 0 && !isNan(x) && !isNan(y) ? nearProduct(x, y) : anyOperand());
+                others(x, y);
+            }
+            for (int i = 0; i < 3000; i++) {
+                rm = random.nextInt(5);
+                toIntegers(i < 60 ? operand(i) : anyOperand());
+                toIntegers((random.nextLong() & (1L << fractionBits()) - 1
+                        | (long) (bias() - 2 + random.nextInt(68)) << fractionBits())
+                        ^ (random.nextBoolean() ? signBit() : 0));
+                integers(i < 64 ? 1L << i : i < 128 ? -1L >>> i : random.nextLong() >> random.nextInt(64));
+            }
+        }
+        unboxed();
+        legality();
+        switchedOff();
+        flagRegisters();
+        loadsAndStores();
+        Rig.finish("FloatTest");
+    }
+}
