@@ -2655,8 +2655,8 @@ public final class BoardMachine {
 
         /** Does the next request and answers it; answers false, having changed nothing, when the device breaks. */
         private boolean answerNext() {
-            long offer = offersAt + 4 + 2 * (taken % queueSize);
-            long answer = answersAt + 4 + 8 * (answered % queueSize);
+            long offer = offersAt + 4 + 2 * (taken & queueSize - 1);
+            long answer = answersAt + 4 + 8 * (answered & queueSize - 1);
             long count = answersAt + 2;
             if (!memory.holds(offer, 2) || !memory.holds(answer, 8) || !memory.holds(count, 2)) {
                 return false;

@@ -481,6 +481,61 @@ public final class DiskTest {
         checkAll("the others");
     }
 
+    /** Whatever the device needs must be in memory: a queue that lies partly, or wholly, elsewhere. */
+    private static void outside() {
+        long end = Rig.BASE + 4194304;
+        long header = HEADS;
+        set(header, 4, 4);
+        set(OFFERS, 2, 0);
+        set(OFFERS + 2, 2, 1);
+        set(OFFERS + 4, 2, 0);
+        block(BLOCKS, 0, header, 16, 1, 1);
+        block(BLOCKS, 1, BUFFERS, 1, 2, 0);
+        sync();
+        long[][] queues = {{BLOCKS, OFFERS, ANSWERS}, {end - 16, OFFERS, ANSWERS}, {0, OFFERS, ANSWERS},
+            {-16, OFFERS, ANSWERS}, {BLOCKS, end - 4, ANSWERS}, {BLOCKS, end - 3, ANSWERS}, {BLOCKS, 0, ANSWERS},
+            {BLOCKS, Rig.BASE - 2, ANSWERS}, {BLOCKS, -2, ANSWERS}, {BLOCKS, OFFERS, end - 11}, {BLOCKS, OFFERS, 0},
+            {BLOCKS, OFFERS, Rig.BASE - 3}, {BLOCKS, OFFERS, Rig.BASE - 4}, {BLOCKS, OFFERS, -4}, {BLOCKS, OFFERS, end - 4},
+            {BLOCKS, Rig.BASE - 4, ANSWERS}, {end - 15, OFFERS, ANSWERS}, {Rig.BASE - 16, OFFERS, ANSWERS}};
+        for (long[] q : queues) {
+            // The last word of memory tells, as offers, that one is there.
+            rig.longs(end - 8, 1L << 48);
+            setUp(16, q[0], q[1], q[2]);
+            write(80, 0);
+            boolean good = q[0] == BLOCKS && q[1] == OFFERS && q[2] == ANSWERS;
+            Rig.due("broken", rig.peek(Rig.BLOCK + 112, 4), good ? 15 : 79);
+            Rig.due("causes", rig.peek(Rig.BLOCK + 96, 4), good ? 1 : 2);
+            checkAll("queue");
+            set(BUFFERS, 1, 9);
+            sync();
+        }
+        setUp(16, BLOCKS, OFFERS, end - 12);
+        rig.poke(Rig.BLOCK + 80, 4, 0);
+        Rig.due("an answer at the very end", rig.machine.word(end - 8), 1L << 32);
+        Rig.due("its count", rig.machine.word(end - 12) & 0xFFFFFFFFL, 1L << 16);
+        rig.poke(Rig.BLOCK + 112, 4, 0);
+        // What stands before memory is not needed where it is not read.
+        rig.longs(Rig.BASE + 0x300000, 0);
+        setUp(16, BLOCKS, OFFERS, Rig.BASE - 2);
+        rig.longs(Rig.BASE, -1L, -1L);
+        rig.machine.start();
+        rig.words(Rig.BASE + 0x1000, Rig.lui(1, 0x10001), Rig.store(4, 0, 1, 80), Rig.jal(0, 0));
+        rig.words(Rig.BASE, Rig.jal(0, 0x1000));
+        rig.machine.run(5);
+        Rig.due("the count of answers in the first bytes", rig.machine.word(Rig.BASE) & 0xFFFF, 1);
+        Rig.due("the answer behind it", rig.machine.word(Rig.BASE + 2), 1L << 32);
+        rig.poke(Rig.BLOCK + 112, 4, 0);
+        write(112, 0);
+        sync();
+        // A size of 1 has no room for a request, one of 2 has.
+        for (int n = 1; n <= 2; n++) {
+            setUp(n, BLOCKS, OFFERS, ANSWERS);
+            write(80, 0);
+            Rig.due("size " + n, rig.peek(Rig.BLOCK + 112, 4), n == 1 ? 79 : 15);
+            checkAll("size " + n);
+        }
+    }
+
     private static void signal() {
         rig.poke(Rig.CONTROLLER + 4, 4, 3);
         rig.poke(Rig.CONTROLLER + 8192, 4, 2);
@@ -533,6 +588,7 @@ public final class DiskTest {
         randomRequests();
         goingOn();
         sixtyFour();
+        outside();
         signal();
         reservations();
         Rig.due("breaches", rig.machine.breaches(), 0);

@@ -195,7 +195,7 @@ public final class FindingTest {
 
     private static final int[] SLOTS = {0, 1, 2, 256, 510, 511};
 
-    private static void layTables() {
+    private static void layTables(boolean plain) {
         for (int t = 0; t < TABLE_COUNT; t++) {
             int depth = t == 0 ? 3 : t == 1 ? 2 : t < 4 ? 1 : 0;
             for (int slot : SLOTS) {
@@ -205,7 +205,7 @@ public final class FindingTest {
         for (int p = 0; p < PAGE_COUNT; p++) {
             int[] words = new int[1024];
             for (int i = 0; i < 1024; i++) {
-                words[i] = 115 << 16;
+                words[i] = plain ? 115 << 16 : random.nextInt();
             }
             rig.words(PAGES + 4096L * p, words);
         }
@@ -283,18 +283,23 @@ public final class FindingTest {
         Rig.due("configs", rig.csr(928), packedConfigs());
     }
 
-    private static void checkTables(String told) {
-        for (Map.Entry<Long, Long> mark : marked.entrySet()) {
-            Rig.due(told + " marks", rig.machine.word(mark.getKey()), mark.getValue());
+    private static long[] tables() {
+        long[] words = new long[512 * TABLE_COUNT];
+        for (int i = 0; i < words.length; i++) {
+            words[i] = rig.machine.word(TABLES + 8L * i);
         }
+        return words;
     }
 
-    private static long tablesSum() {
-        long s = 0;
-        for (int t = 0; t < TABLE_COUNT; t++) {
-            s = s * 31 + rig.machine.sum(TABLES + 4096L * t, TABLES + 4096L * (t + 1));
+    private static void checkTables(String told, long[] before) {
+        for (int i = 0; i < before.length; i++) {
+            long at = TABLES + 8L * i;
+            long want = marked.containsKey(at) ? marked.get(at) : before[i];
+            long got = rig.machine.word(at);
+            if (got != want) {
+                Rig.due(told + " table at " + Long.toHexString(at), got, want);
+            }
         }
-        return s;
     }
 
     private static void data() {
@@ -313,7 +318,7 @@ public final class FindingTest {
         rig.machine.run(1);
         locate(a, n, loads ? LOAD : STORE, mode);
         long want = cause == 0 && loads ? dueLoad(n) : 0;
-        long before = tablesSum();
+        long[] before = tables();
         rig.machine.run(1);
         String told = (loads ? "load " : "store ") + n + " at " + Long.toHexString(a) + " in mode " + mode + " by "
                 + Long.toHexString(table);
@@ -332,10 +337,7 @@ public final class FindingTest {
             }
         }
         if (!intoTables) {
-            checkTables(told);
-            if (marked.isEmpty()) {
-                Rig.due(told + " leaves the tables", tablesSum(), before);
-            }
+            checkTables(told, before);
         }
         Rig.due("breaches", rig.machine.breaches(), 0);
     }
@@ -365,12 +367,13 @@ public final class FindingTest {
                 return;
             }
         }
+        long[] before = tables();
         rig.machine.run(1);
         String told = "fetch at " + Long.toHexString(a) + " in mode " + mode + " by " + Long.toHexString(table);
         Rig.due(told + " cause", rig.csr(834), due);
         Rig.due(told + " value", rig.csr(835), value);
         Rig.due(told + " place", rig.csr(833), a);
-        checkTables(told);
+        checkTables(told, before);
     }
 
     private static int fetchHalf(long a, int mode) {
@@ -382,7 +385,8 @@ public final class FindingTest {
 
     private static void scenes() {
         for (int scene = 0; scene < 300; scene++) {
-            layTables();
+            boolean plain = scene % 2 == 0;
+            layTables(plain);
             for (int i = 0; i < 60; i++) {
                 long sort = new long[] {8, 9, 8, 9, 0}[random.nextInt(5)];
                 long root = TABLES + (sort == 9 ? 0 : 4096) >> 12;
@@ -391,7 +395,7 @@ public final class FindingTest {
                     table = sort << 60 | random.nextInt(1 << 20);
                 }
                 anyRegions();
-                if (random.nextInt(3) > 0) {
+                if (!plain || random.nextInt(3) == 0) {
                     data();
                 } else {
                     fetch();

@@ -200,6 +200,19 @@ public final class ImageTest {
         Rig.due("the last byte", used.machine.sum(Rig.BASE + 4194303, Rig.BASE + 4194304), 0);
     }
 
+    /** What follows the table looks like one more segment, and is none. */
+    private static void behindTheTable() {
+        byte[] image = Arrays.copyOf(image(2), 400);
+        put(image, 64 + 112, 4, 1);
+        put(image, 64 + 112 + 8, 8, 0);
+        put(image, 64 + 112 + 24, 8, Rig.BASE + 0x6000);
+        put(image, 64 + 112 + 32, 8, 8);
+        put(image, 64 + 112 + 40, 8, 8);
+        used.longs(Rig.BASE + 0x6000, 0x7777777777777777L);
+        Rig.due("loaded", load(image), 0);
+        Rig.due("what is none is not loaded", used.machine.word(Rig.BASE + 0x6000), 0x7777777777777777L);
+    }
+
     private static byte[] whole() {
         byte[] image = image(1);
         segment(image, 0, 1, 64, Rig.BASE, 0, 4194304);
@@ -416,6 +429,7 @@ public final class ImageTest {
         refusals();
         order();
         loading();
+        behindTheTable();
         reservations();
         trees();
         Rig.finish("ImageTest");

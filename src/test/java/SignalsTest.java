@@ -419,8 +419,29 @@ public final class SignalsTest {
         Rig.due("sixteen came", other.machine.waiting(), 4);
     }
 
+    private static void overruns() {
+        Rig other = new Rig(1);
+        other.poke(Rig.SERIAL + 1, 1, 4);
+        other.poke(Rig.SERIAL + 4, 1, 16);
+        other.poke(Rig.SERIAL, 1, 65);
+        Rig.due("one came back", other.peek(Rig.SERIAL + 5, 1), 97);
+        Rig.due("no cause", other.peek(Rig.SERIAL + 2, 1), 1);
+        other.poke(Rig.SERIAL, 1, 66);
+        Rig.due("cause", other.peek(Rig.SERIAL + 2, 1), 6);
+        Rig.due("the first one is there", other.peek(Rig.SERIAL, 1), 65);
+        Rig.due("the second one is not", other.peek(Rig.SERIAL, 1), 0);
+        Rig.due("an overrun without bytes", other.peek(Rig.SERIAL + 5, 1), 98);
+        Rig.due("it is told once", other.peek(Rig.SERIAL + 5, 1), 96);
+        other.poke(Rig.SERIAL, 1, 65);
+        other.poke(Rig.SERIAL, 1, 66);
+        other.poke(Rig.SERIAL + 2, 1, 2);
+        Rig.due("it stays when IN is emptied", other.peek(Rig.SERIAL + 5, 1), 98);
+        Rig.due("nothing was OUT", other.machine.sent(), 0);
+    }
+
     public static void main(String[] args) {
         randomSteps();
+        overruns();
         manyOut();
         timeGoesOn();
         inputWaits();
