@@ -13,7 +13,7 @@ public final class BoardMachine {
     private static final int SEGMENT_HEADER = 56;
     private static final int[] IMAGE_BEGINS = {127, 69, 76, 70, 2, 1, 1};
 
-    private final Memory memory = new Memory();
+    private final Memory memory;
     private final Serial serial = new Serial();
     private final Disk disk;
     private final Windows windows;
@@ -25,6 +25,7 @@ public final class BoardMachine {
 
     public BoardMachine(int processors) {
         int count = processors >= 1 && processors <= 4 ? processors : 1;
+        memory = new Memory(count);
         disk = new Disk(memory);
         windows = new Windows(count, serial, disk);
         cores = new Core[count];
@@ -198,8 +199,8 @@ public final class BoardMachine {
         for (int i = 0; i < cores.length; i++) {
             cores[i].reset(entry, TREE_AT);
         }
-        for (int i = 0; i < tree.size; i++) {
-            memory.put(TREE_AT + i, 1, tree.row[i]);
+        for (int i = 0; i < tree.size; i += 8) {
+            memory.put(TREE_AT + i, Math.min(8, tree.size - i), tree.row[i >>> 3]);
         }
         memory.release();
         return tree.size;
@@ -214,8 +215,10 @@ public final class BoardMachine {
             for (int i = 0; i < cores.length && !windows.ended; i++) {
                 cores[i].step();
                 cores[i].audit();
-                disk.work();
-                windows.feelSignals();
+                if (windows.isTouched) {
+                    disk.work();
+                    windows.feelSignals();
+                }
             }
             if (!windows.ended) {
                 finishRound();
@@ -230,8 +233,9 @@ public final class BoardMachine {
             cores[i].controls.countCycle();
         }
         windows.countRound();
-        serial.arrive();
-        windows.feelSignals();
+        if (serial.arrive()) {
+            windows.feelSignals();
+        }
     }
 
     public int code() {
@@ -344,11 +348,17 @@ public final class BoardMachine {
 
         // Eight bytes to a cell: a byte array would fill most of the room that all objects share.
         private final long[] cells = new long[SIZE / 8];
-        private final long[] heldAt = new long[4];
-        private final int[] heldSize = new int[4];
+        private final long[] heldAt;
+        private final int[] heldSize;
         // Kept beside heldSize so that a conditional store that should have failed is seen as a breach.
-        private final boolean[] disturbed = new boolean[4];
+        private final boolean[] disturbed;
         long breaches;
+
+        Memory(int processors) {
+            heldAt = new long[processors];
+            heldSize = new int[processors];
+            disturbed = new boolean[processors];
+        }
 
         boolean holds(long address, long n) {
             long at = address - BASE;
@@ -1666,6 +1676,9 @@ public final class BoardMachine {
         private static final long ABILITIES = Long.MIN_VALUE | 1 | 1 << 2 | 1 << 3 | 1 << 5 | 1 << 8 | 1 << 12
                 | 1 << 18 | 1 << 20;
         private static final int[] ORDER = {11, 3, 7, 9, 1, 5};
+        // The registers that are held by their own numbers.
+        private static final int[] HELD = {768, 770, 771, 772, 773, 774, 832, 833, 834, 835, 836,
+            261, 262, 320, 321, 322, 323, 384, 2816, 2818};
 
         private final int processor;
         private final Windows windows;
@@ -1685,7 +1698,9 @@ public final class BoardMachine {
         }
 
         void reset() {
-            Arrays.fill(held, 0L);
+            for (int i = 0; i < HELD.length; i++) {
+                held[HELD[i]] = 0;
+            }
             mode = 3;
         }
 
@@ -1955,6 +1970,8 @@ public final class BoardMachine {
         // What each region covers, from one address on to before another one.
         private final long[] from = new long[8];
         private final long[] to = new long[8];
+        // No region from this one on covers anything.
+        private int used;
         long physical;
         // The last entry of the latest walk, and where it stands.
         private long lastAt;
@@ -1968,9 +1985,8 @@ public final class BoardMachine {
             for (int i = 0; i < 8; i++) {
                 configs[i] = 0;
                 numbers[i] = 0;
-                from[i] = 0;
-                to[i] = 0;
             }
+            measureAll();
         }
 
         long configs() {
@@ -2001,6 +2017,7 @@ public final class BoardMachine {
         }
 
         private void measureAll() {
+            used = 0;
             for (int i = 0; i < 8; i++) {
                 long begin = 4 * numbers[i];
                 long size = 0;
@@ -2018,11 +2035,12 @@ public final class BoardMachine {
                 }
                 from[i] = begin;
                 to[i] = size > 0 ? begin + size : 0;
+                used = size > 0 ? i + 1 : used;
             }
         }
 
         private boolean letsThrough(long at, int n, int access, int mode) {
-            for (int i = 0; i < 8; i++) {
+            for (int i = 0; i < used; i++) {
                 if (at < to[i] && from[i] < at + n) {
                     boolean isFree = mode == 3 && (configs[i] & LOCKED) == 0;
                     return from[i] <= at && at + n <= to[i] && (isFree || (configs[i] & RIGHTS[access]) != 0);
@@ -2032,7 +2050,7 @@ public final class BoardMachine {
         }
 
         boolean isWritable(long at) {
-            for (int i = 0; i < 8; i++) {
+            for (int i = 0; i < used; i++) {
                 if (at < to[i] && from[i] <= at) {
                     return (configs[i] & RIGHTS[STORING]) != 0;
                 }
@@ -2130,6 +2148,8 @@ public final class BoardMachine {
         private final long[] compares;
         private int rounds;
         long time;
+        // Whether something was read or written that may change signals.
+        boolean isTouched;
         boolean ended;
         int endCode;
 
@@ -2151,6 +2171,7 @@ public final class BoardMachine {
         }
 
         void feelSignals() {
+            isTouched = false;
             controller.feel((disk.causes != 0 ? 1 << 1 : 0) | (serial.reason() != 1 ? 1 << 10 : 0));
         }
 
@@ -2172,6 +2193,7 @@ public final class BoardMachine {
         }
 
         long read(long physical, int n) {
+            isTouched = true;
             if (isWithin(physical, TIMER_AT, 65536)) {
                 return readTimer((int) (physical - TIMER_AT), n);
             }
@@ -2188,6 +2210,7 @@ public final class BoardMachine {
         }
 
         void write(long physical, int n, long v) {
+            isTouched = true;
             if (n == 4 && physical == END_AT) {
                 writeEnd((int) v);
             } else if (isWithin(physical, TIMER_AT, 65536)) {
@@ -2385,10 +2408,10 @@ public final class BoardMachine {
             return taken;
         }
 
-        /** The first byte of INPUT comes, if it may. */
-        void arrive() {
+        /** The first byte of INPUT comes, if it may; answers whether it did. */
+        boolean arrive() {
             if (inputCount == 0 || inCount >= room) {
-                return;
+                return false;
             }
             int v = input[inputFirst] & 255;
             inputFirst = inputFirst + 1 & INPUT_LIMIT - 1;
@@ -2396,6 +2419,7 @@ public final class BoardMachine {
             if (!receive(v)) {
                 breaches++;
             }
+            return true;
         }
 
         private boolean receive(int v) {
@@ -2774,7 +2798,8 @@ public final class BoardMachine {
         // The names of all properties, in the order in which they come first.
         private static final String NAMES = "#address-cells\0#size-cells\0compatible\0model\0stdout-path\0timebase-frequency\0device_type\0reg\0status\0isa\0mmu-type\0#interrupt-cells\0interrupt-controller\0phandle\0ranges\0interrupts-extended\0sources\0interrupts\0interrupt-parent\0";
 
-        final byte[] row = new byte[ROOM];
+        // Eight bytes to a long, the lowest first, as memory has them.
+        final long[] row = new long[ROOM / 8];
         int size;
 
         Tree(int processors) {
@@ -2810,7 +2835,7 @@ public final class BoardMachine {
 
         private void addByte(int v) {
             if (size < ROOM) {
-                row[size] = (byte) v;
+                row[size >>> 3] |= (v & 255L) << 8 * (size & 7);
                 size++;
             }
         }

@@ -451,8 +451,9 @@ public final class DiskTest {
     private static void sixtyFour() {
         byte[] chain = new byte[512 * 100];
         for (int s = 0; s < 100; s++) {
-            chain[512 * s] = (byte) (s + 2);
-            chain[512 * s + 2] = (byte) (s + 1);
+            chain[512 * s] = (byte) (s == 63 ? 1 : 0);
+            chain[512 * s + 2] = (byte) (s + 2);
+            chain[512 * s + 4] = (byte) (s + 1);
         }
         System.arraycopy(chain, 0, disk, 0, chain.length);
         rig.feed(chain);
@@ -467,14 +468,15 @@ public final class DiskTest {
             set(OFFERS + 4 + 2 * i, 2, 0);
         }
         block(BLOCKS, 0, header, 16, 1, 1);
-        block(BLOCKS, 1, OFFERS + 2, 2, 3, 2);
+        block(BLOCKS, 1, OFFERS, 4, 3, 2);
         block(BLOCKS, 2, header + 8, 8, 3, 3);
-        block(BLOCKS, 3, BUFFERS, 502, 3, 4);
+        block(BLOCKS, 3, BUFFERS, 500, 3, 4);
         block(BLOCKS, 4, BUFFERS + 0x1000, 1, 2, 0);
         sync();
         setUp(16, BLOCKS, OFFERS, ANSWERS);
         write(80, 0);
         Rig.due("64 of them", taken, 64);
+        Rig.due("the marks that were read last", rig.peek(Rig.BLOCK + 96, 4), 0);
         checkAll("64 of them");
         write(80, 0);
         Rig.due("the others", taken, 101);
@@ -536,6 +538,44 @@ public final class DiskTest {
         }
     }
 
+    /** Without bit 2 of the state, with bit 6, or not ready, nothing happens. */
+    private static void notWorking() {
+        set(HEADS, 4, 4);
+        set(OFFERS, 2, 0);
+        set(OFFERS + 2, 2, 1);
+        set(OFFERS + 4, 2, 0);
+        block(BLOCKS, 0, HEADS, 16, 1, 1);
+        block(BLOCKS, 1, BUFFERS, 1, 2, 0);
+        set(BUFFERS, 1, 9);
+        sync();
+        setUp(16, BLOCKS, OFFERS, ANSWERS);
+        for (int word : new int[] {11, 0xFB, 64 + 15}) {
+            write(112, 0);
+            setUp(16, BLOCKS, OFFERS, ANSWERS);
+            write(112, word);
+            write(80, 0);
+            Rig.due("nothing by the state " + word, rig.machine.word(BUFFERS) & 255, 9);
+            checkAll("nothing");
+        }
+        setUp(16, BLOCKS, OFFERS, ANSWERS);
+        write(68, 0);
+        write(80, 0);
+        Rig.due("nothing when not ready", rig.machine.word(BUFFERS) & 255, 9);
+        write(68, 1);
+        write(80, 0);
+        Rig.due("done when ready", rig.machine.word(BUFFERS) & 255, 0);
+        checkAll("done");
+        // Its counts stay when it is made not ready, and ready again.
+        write(68, 0);
+        write(68, 1);
+        set(OFFERS + 2, 2, 2);
+        set(OFFERS + 6, 2, 0);
+        sync();
+        write(80, 0);
+        Rig.due("the second answer", rig.machine.word(ANSWERS + 2) & 65535, 2);
+        checkAll("counts");
+    }
+
     private static void signal() {
         rig.poke(Rig.CONTROLLER + 4, 4, 3);
         rig.poke(Rig.CONTROLLER + 8192, 4, 2);
@@ -589,6 +629,7 @@ public final class DiskTest {
         goingOn();
         sixtyFour();
         outside();
+        notWorking();
         signal();
         reservations();
         Rig.due("breaches", rig.machine.breaches(), 0);

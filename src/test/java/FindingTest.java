@@ -408,6 +408,28 @@ public final class FindingTest {
         }
     }
 
+    /** A table in the last page of memory, and one that is not there. */
+    private static void tablesAtTheEdge() {
+        long last = Rig.BASE + 4194304 - 4096;
+        rig.longs(last, (Rig.BASE >> 12) << 10 | 0xDF);
+        rig.longs(last + 4088, (Rig.BASE >> 12) << 10 | 0xDF);
+        long[] addresses = {Rig.DATA & (1L << 30) - 1, -(1L << 30) + (Rig.DATA & (1L << 30) - 1)};
+        for (long a : addresses) {
+            for (int beyond = 0; beyond < 2; beyond++) {
+                for (int access = 0; access < 2; access++) {
+                    rig.exec(new long[] {0x1F, -1L, 8L << 60 | (last >> 12) + beyond, 1L << 17, a, 77},
+                            Rig.csrrw(0, 928, 1), Rig.csrrw(0, 944, 2), Rig.csrrw(0, 384, 3), Rig.csrrw(0, 768, 4),
+                            access == 0 ? Rig.ld(7, 5, 0) : Rig.store(8, 6, 5, 0x40));
+                    Rig.due("cause", rig.csr(834), beyond == 0 ? 0 : access == 0 ? 5 : 7);
+                    Rig.due("value", rig.csr(835), beyond == 0 ? 0 : access == 0 ? a : a + 0x40);
+                    if (access == 0) {
+                        Rig.due("loaded", rig.x(7), beyond == 0 ? 0x1F : 0);
+                    }
+                }
+            }
+        }
+    }
+
     // Setting regions.
 
     private static void settings() {
@@ -491,6 +513,7 @@ public final class FindingTest {
 
     public static void main(String[] args) {
         scenes();
+        tablesAtTheEdge();
         settings();
         locked();
         farAddresses();

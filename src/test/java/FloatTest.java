@@ -413,7 +413,7 @@ public final class FloatTest {
 
     private static void arithmetic(long x, long y, long z) {
         int r = random.nextBoolean() ? rm : 7;
-        for (int k = 0; k < 4; k++) {
+        for (int k = 3; k >= 0; k--) {
             flags = 0;
             long minus = y ^ signBit();
             long want = k == 0 ? fused(x, one(), y) : k == 1 ? fused(x, one(), isNan(y) ? y : minus)

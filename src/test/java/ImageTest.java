@@ -392,7 +392,9 @@ public final class ImageTest {
             Rig.due("laid down by a new object", number(base), 0xD00DFEED);
             Rig rig = new Rig(h);
             machine = rig.machine;
-            rig.bytes(base, new byte[4000]);
+            byte[] fill = new byte[4000];
+            Arrays.fill(fill, (byte) 0x55);
+            rig.bytes(base - 100, fill);
             int size = machine.start();
             names = base + number(base + 12);
             Rig.due("bytes in all", number(base + 4), size);
@@ -413,7 +415,8 @@ public final class ImageTest {
             Rig.due("the tree of " + h + "\n" + got + "due is\n" + want, got.equals(want));
             Rig.due("last", number(), 9);
             Rig.due("end of the structure", at, names);
-            Rig.due("behind the tree", machine.word(base + size), 0);
+            Rig.due("behind the tree", machine.word(base + size), 0x5555555555555555L);
+            Rig.due("before the tree", machine.word(base - 8), 0x5555555555555555L);
             String all = "#address-cells,#size-cells,compatible,model,stdout-path,timebase-frequency,device_type,reg,"
                     + "status,isa,mmu-type,#interrupt-cells,interrupt-controller,phandle,ranges,interrupts-extended,"
                     + "sources,interrupts,interrupt-parent";

@@ -66,8 +66,10 @@ public final class IntegerTest {
         for (int g = 0; g < 128; g++) {
             for (int f = 0; f < 8; f++) {
                 boolean told = g < 2 || g == 32;
-                for (int i = 0; i < (told ? 60 : 1); i++) {
-                    long x = any(), y = any();
+                int pairs = EDGES.length * EDGES.length;
+                for (int i = 0; i < (told ? pairs + 60 : 1); i++) {
+                    long x = told && i < pairs ? EDGES[i % EDGES.length] : any();
+                    long y = told && i < pairs ? EDGES[i / EDGES.length] : any();
                     int w = Rig.r(51, 3, f, 1, 2, g);
                     rig.exec(new long[] {x, y, 77}, w);
                     check("longs", expected(g, f, x, y, 64), w);
