@@ -106,7 +106,8 @@ public final class RulesTest {
             rig.machine.start();
         }
         long made = bean.getThreadAllocatedBytes(thread) - before;
-        Rig.due("made by 20 runs and starts: " + made, made < 20000);
+        System.out.println("made by 20 runs and starts: " + made + " bytes");
+        Rig.due("little made by 20 runs and starts", made < 20000);
         before = bean.getThreadAllocatedBytes(thread);
         BoardMachine machine = new BoardMachine(4);
         made = bean.getThreadAllocatedBytes(thread) - before;
