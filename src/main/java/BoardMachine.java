@@ -443,7 +443,6 @@ public final class BoardMachine {
 
     /** A processor: part 1, and the step that joins the parts. */
     private static final class Core {
-        private static final int FETCHING = 0, LOADING = 1, STORING = 2;
         private static final int DONE = 0, LOAD = 1, STORE = 2, ATOMIC = 3, FLOAT = 4, CONTROL = 5, ILLEGAL = 6, FAULT = 7;
 
         final long[] registers = new long[32];
@@ -548,7 +547,7 @@ public final class BoardMachine {
 
         /** The two bytes at an address, or NONE behind an exception. */
         private int fetchHalf(long at) {
-            int fault = finder.find(at, FETCHING, 2, controls.mode, controls);
+            int fault = finder.find(at, Finder.FETCHING, 2, controls.mode, controls);
             if (fault == 0 && !memory.holds(finder.physical, 2)) {
                 fault = 1;
             }
@@ -807,7 +806,7 @@ public final class BoardMachine {
             }
             for (int i = 0; i < parts; i++) {
                 if (!memory.holds(places[i], each)) {
-                    return raise(access == LOADING ? 5 : 7, address + i);
+                    return raise(access == Finder.LOADING ? 5 : 7, address + i);
                 }
             }
             return true;
@@ -854,7 +853,7 @@ public final class BoardMachine {
         }
 
         private void doLoad() {
-            if (locate(LOADING)) {
+            if (locate(Finder.LOADING)) {
                 int unused = 64 - 8 * size;
                 long v = loaded() << unused;
                 finish(sort == 0 ? v >> unused : v >>> unused);
@@ -862,7 +861,7 @@ public final class BoardMachine {
         }
 
         private void doStore() {
-            if (locate(STORING)) {
+            if (locate(Finder.STORING)) {
                 store(operand);
                 skip();
             }
@@ -874,7 +873,7 @@ public final class BoardMachine {
                 raise(reserving ? 4 : 6, address);
                 return;
             }
-            if (!locate(reserving ? LOADING : STORING)) {
+            if (!locate(reserving ? Finder.LOADING : Finder.STORING)) {
                 return;
             }
             if (!memory.holds(places[0], size)) {
@@ -925,13 +924,13 @@ public final class BoardMachine {
             if (controls.floatState() == 0) {
                 raise(2, raw);
             } else if (sort == 7) {
-                if (locate(LOADING)) {
+                if (locate(Finder.LOADING)) {
                     floats.keep(target, loaded(), size == 4);
                     controls.soilFloats();
                     skip();
                 }
             } else if (sort == 39) {
-                if (locate(STORING)) {
+                if (locate(Finder.STORING)) {
                     store(floats.registers[instruction >>> 20 & 31]);
                     skip();
                 }
@@ -1954,7 +1953,7 @@ public final class BoardMachine {
 
     /** Part 5: the regions of a processor, and the way from an address to a physical one. */
     private static final class Finder {
-        private static final int FETCHING = 0, LOADING = 1, STORING = 2;
+        static final int FETCHING = 0, LOADING = 1, STORING = 2;
         private static final int VALID = 1, READABLE = 2, WRITABLE = 4, RUNNABLE = 8, USERS = 16, USED = 64, DIRTY = 128;
         private static final int LOCKED = 128;
         // By access: the bit of a config that lets it through, and the two faults of it.

@@ -109,6 +109,16 @@ public final class ControlTest {
         Rig.due("and not changed", rig.x(7), 0x222);
     }
 
+    /** Setting and clearing leave the other bits that were written. */
+    private static void otherBits() {
+        for (int k : new int[] {STATUS, EDELEG, IDELEG, ENABLED, PENDING, 832, 774, 262, 773, 833}) {
+            rig.exec(new long[] {4, 0x22, 2}, Rig.csrrw(0, IDELEG, 2), Rig.csrrw(0, k, 2), Rig.csrrc(5, k, 3),
+                    Rig.csrrs(6, k, 3), Rig.csrrs(7, k, 0));
+            Rig.due("what was written to " + k, rig.x(7), rig.x(5));
+            Rig.due("what was cleared of " + k, rig.x(6), rig.x(5) & ~2L);
+        }
+    }
+
     private static void counts() {
         rig.prepare(new long[] {100, 200}, Rig.csrrw(0, 2816, 1), Rig.csrrs(3, 2816, 0), Rig.csrrw(0, 2818, 2),
                 Rig.csrrs(4, 2818, 0), Rig.csrrs(5, 3072, 0), Rig.csrrs(6, 3074, 0), Rig.csrrs(7, 3073, 0));
@@ -439,6 +449,7 @@ public final class ControlTest {
         tableRegister();
         status();
         interruptRegisters();
+        otherBits();
         counts();
         rights();
         systemInstructions();

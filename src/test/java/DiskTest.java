@@ -576,6 +576,25 @@ public final class DiskTest {
         checkAll("counts");
     }
 
+    /** Blocks that lead round for ever break the device, whatever its size. */
+    private static void rounds() {
+        for (int n = 1; n <= 16; n *= 2) {
+            for (int open = 0; open < 2; open++) {
+                set(OFFERS, 2, 0);
+                set(OFFERS + 2, 2, 1);
+                set(OFFERS + 4, 2, 0);
+                for (int k = 0; k < 16; k++) {
+                    block(BLOCKS, k, HEADS, 16, open == 1 && k > 0 ? 3 : 1, Math.max(k + 1 < n ? k + 1 : n - 1, 0));
+                }
+                sync();
+                setUp(n, BLOCKS, OFFERS, ANSWERS);
+                write(80, 0);
+                Rig.due("broken by a round of " + n, rig.peek(Rig.BLOCK + 112, 4), 79);
+                checkAll("round of " + n);
+            }
+        }
+    }
+
     private static void signal() {
         rig.poke(Rig.CONTROLLER + 4, 4, 3);
         rig.poke(Rig.CONTROLLER + 8192, 4, 2);
@@ -630,6 +649,7 @@ public final class DiskTest {
         sixtyFour();
         outside();
         notWorking();
+        rounds();
         signal();
         reservations();
         Rig.due("breaches", rig.machine.breaches(), 0);

@@ -450,6 +450,9 @@ public final class FindingTest {
         Rig.due("the one behind", rig.csr(946), 0x0F0F0F0F0F0F0F0FL & (1L << 54) - 1);
         Rig.due("what was shown before", rig.x(9), 0x88L << 8);
         Rig.due("set but for the locked one", rig.csr(928), 0x0F0F0F0F0F0F880FL);
+        rig.exec(new long[] {0x0808, 7, 9}, Rig.csrrw(0, 928, 1), Rig.csrrw(0, 944, 2), Rig.csrrw(0, 945, 3));
+        Rig.due("the number before one with A 1 that is not locked", rig.csr(944), 7);
+        Rig.due("its own", rig.csr(945), 9);
         rig.exec(new long[] {-1L}, Rig.csrrw(0, 930, 1), Rig.csrrw(0, 952, 1), Rig.csrrw(0, 959, 1));
         Rig.due("930", rig.csr(930), 0);
         Rig.due("952", rig.csr(952), 0);

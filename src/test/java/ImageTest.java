@@ -92,6 +92,7 @@ public final class ImageTest {
     private static void refusals() {
         refused("a good one", image(1), 0);
         refused("a good one of sixteen", image(16), 0);
+        refused("one of seventeen", image(17), 4);
         refused("nothing", new byte[0], 1);
         refused("63 bytes", Arrays.copyOf(image(1), 63), 1);
         refused("64 bytes of 0", new byte[64], 2);
