@@ -2,28 +2,11 @@ import java.util.Random;
 
 /** Every call of the face: what it answers, at its edges, and what wrong calls throw and leave as it was. */
 public final class FaceTest {
-    private static final int STATE = 1, ARGUMENT = 2, INDEX = 3;
+    private static final int STATE = Rig.STATE, ARGUMENT = Rig.ARGUMENT, INDEX = Rig.INDEX;
     private static final Random random = new Random(31);
 
-    private interface Call {
-        long make();
-    }
-
-    private static int thrown(Call call) {
-        try {
-            call.make();
-        } catch (IllegalStateException e) {
-            return STATE;
-        } catch (IllegalArgumentException e) {
-            return ARGUMENT;
-        } catch (IndexOutOfBoundsException e) {
-            return INDEX;
-        }
-        return 0;
-    }
-
-    private static void throwing(String what, int want, Call call) {
-        Rig.due(what + " throws", thrown(call), want);
+    private static void throwing(String what, int want, Rig.Call call) {
+        Rig.throwing(what, want, call);
     }
 
     private static void newObjects() {

@@ -34,6 +34,31 @@ final class Rig {
         }
     }
 
+    // What a call throws.
+
+    static final int STATE = 1, ARGUMENT = 2, INDEX = 3;
+
+    interface Call {
+        long make();
+    }
+
+    static int thrown(Call call) {
+        try {
+            call.make();
+        } catch (IllegalStateException e) {
+            return STATE;
+        } catch (IllegalArgumentException e) {
+            return ARGUMENT;
+        } catch (IndexOutOfBoundsException e) {
+            return INDEX;
+        }
+        return 0;
+    }
+
+    static void throwing(String what, int want, Call call) {
+        due(what + " throws", thrown(call), want);
+    }
+
     // Ways into the machine.
 
     void feed(byte[] bytes) {
