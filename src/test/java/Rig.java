@@ -63,7 +63,12 @@ final class Rig {
 
     void feed(byte[] bytes) {
         int[] five = new int[5];
-        for (int at = 0; at < bytes.length; at += 20) {
+        for (int begin = 0; begin < bytes.length; begin += 20) {
+            // Twenty bytes always go; where they would not fit behind the others, the last of those go once more.
+            int at = Math.min(begin, 65536 - 20);
+            if (at < begin) {
+                machine.end(at);
+            }
             for (int i = 0; i < 20; i++) {
                 int v = at + i < bytes.length ? bytes[at + i] & 255 : 0;
                 five[i / 4] = five[i / 4] << 8 | v;
