@@ -2277,7 +2277,6 @@ public final class BoardMachine {
         private final int[] priorities = new int[32];
         private final int[] enables;
         private final int[] thresholds;
-        private int signals;
         private int waiting;
         private int served;
         long breaches;
@@ -2288,8 +2287,8 @@ public final class BoardMachine {
             thresholds = new int[contexts];
         }
 
+        /** Lets the sources whose signals are on wait, but for those that are served. */
         void feel(int on) {
-            signals = on;
             waiting |= on & ~served;
         }
 

@@ -155,11 +155,12 @@ public final class EdgesControlTest {
                 .with(6, Rig.SERIAL).with(7, 2).with(8, 512)
                 .run(Rig.store(4, 7, 1, 40), Rig.store(4, 4, 2, 0), Rig.store(1, 7, 6, 1), Rig.csrrs(9, 836, 0),
                         Rig.csrrs(12, 836, 7), Rig.csrrs(13, 836, 0), Rig.csrrc(14, 836, 7), Rig.store(4, 0, 2, 0),
-                        Rig.csrrs(15, 836, 0), Rig.store(4, 4, 2, 0), Rig.csrrs(16, 836, 8), Rig.store(4, 0, 2, 0),
-                        Rig.csrrs(17, 836, 0));
+                        Rig.csrrs(15, 836, 0), Rig.store(4, 4, 2, 0), Rig.csrrs(16, 836, 8), Rig.csrrs(18, 836, 0),
+                        Rig.store(4, 0, 2, 0), Rig.csrrs(17, 836, 0));
         Rig.due("the line shows", s.x(9), 512);
         Rig.due("and what was set", s.x(13), 514);
         Rig.due("the line was not kept", s.x(15), 0);
+        Rig.due("both bit 9 and its line", s.x(18), 512);
         Rig.due("bit 9 itself was set", s.x(17), 512);
     }
 
@@ -185,6 +186,17 @@ public final class EdgesControlTest {
         Rig.due("MPP is 1, MPIE is MIE", s.control(768), 1 << 11 | 0x2000 | SHOWN);
         s = new Stage().withStatus(MIE).run(-1);
         Rig.due("MPP is 3", s.control(768), MPIE | 3 << 11 | 0x2000 | SHOWN);
+        // By a return of the supervisor MPP stays, whatever the mode is then: a trap writes all of it.
+        for (int mode = 0; mode < 2; mode++) {
+            for (int before : new int[] {0, 1, 3}) {
+                s = new Stage().withStatus((long) before << 11 | (mode == 1 ? SPP : 0)).withControl(321, CODE + 4)
+                        .run(Rig.SRET, Rig.NOP);
+                Rig.due("MPP stays", s.control(768) >> 11 & 3, before);
+                s.words(CODE + 8, Rig.ECALL).more(1);
+                Rig.due("cause", s.control(834), 8 + mode);
+                Rig.due("MPP is the mode", s.control(768) >> 11 & 3, mode);
+            }
+        }
         // 9 and 8 can be delegated, 11 cannot; 10 there is none.
         s = new Stage().inMode(1).withControl(770, -1).run(Rig.ECALL);
         Rig.due("9 is delegated", s.control(322), 9);

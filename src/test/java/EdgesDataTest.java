@@ -50,6 +50,46 @@ public final class EdgesDataTest {
         s = new Stage().tables(1).page(EDGE, Stage.entry(DATA + 0x5000, 0xCF)).memory(DATA + 4088, FULL)
                 .memory(DATA + 0x5000, ~FULL).with(1, EDGE - 1).run(Rig.load(2, 3, 1, 0));
         s.gives("two bytes, with sign", 3, (short) ((~FULL & 255) << 8 | FULL >>> 56));
+        // What stands in memory behind the first page, and before the second one, is no part of it.
+        for (long beside : new long[] {0, -1}) {
+            for (int n : new int[] {2, 4, 8}) {
+                for (int first = 1; first < n; first++) {
+                    s = new Stage().tables(1).page(EDGE, Stage.entry(DATA + 0x5000, 0xCF)).memory(DATA + 4088, FULL, beside)
+                            .memory(DATA + 0x4FF8, beside, ~FULL).with(1, EDGE - first).with(2, ~beside).run(load(n));
+                    long want = FULL >>> 64 - 8 * first | ~FULL << 8 * first;
+                    s.gives(n + " bytes, " + first + " of them in the first page", 3, n == 8 ? want : want & (1L << 8 * n) - 1);
+                    s.words(s.machine.counter(0), Rig.store(n, 2, 1, 0)).more(1).fine("stored", 8);
+                    Rig.due("behind the first page", s.machine.word(DATA + 4096), beside);
+                    Rig.due("before the second page", s.machine.word(DATA + 0x4FF8), beside);
+                    Rig.due("in the first page", s.machine.word(DATA + 4088),
+                            FULL & -1L >>> 8 * first | ~beside << 64 - 8 * first);
+                    long mask = (1L << 8 * (n - first)) - 1;
+                    Rig.due("in the second page", s.machine.word(DATA + 0x5000), ~FULL & ~mask | ~beside & mask);
+                }
+            }
+        }
+    }
+
+    /** Each size at each of sixteen places: the bytes that are stored, and none beside them. */
+    private static void besideStores() {
+        Rig rig = new Rig(1);
+        for (int n = 1; n <= 8; n *= 2) {
+            for (int place = 0; place < 16; place++) {
+                for (long v : new long[] {0x0102030405060708L, 0xF1F2F3F4F5F6F7F8L, 0, -1}) {
+                    for (long fill : new long[] {0, -1, FULL}) {
+                        long[] words = {fill, fill, fill, fill};
+                        rig.longs(DATA, words);
+                        rig.poke(DATA + place, n, v);
+                        for (int i = place; i < place + n; i++) {
+                            words[i / 8] = words[i / 8] & ~(255L << 8 * (i % 8)) | (v >>> 8 * (i - place) & 255) << 8 * (i % 8);
+                        }
+                        for (int i = 0; i < 4; i++) {
+                            Rig.due(n + " bytes at " + place + ", word " + i, rig.machine.word(DATA + 8 * i), words[i]);
+                        }
+                    }
+                }
+            }
+        }
     }
 
     /** "All is found before anything is loaded, stored, read or written"; marks stay. */
@@ -108,6 +148,10 @@ public final class EdgesDataTest {
         new Stage().with(1, Long.MIN_VALUE).run(load(1)).due("the least long", 5, Long.MIN_VALUE);
         new Stage().with(1, BASE).run(Rig.i(3, 3, 3, 1, -2048)).due("an offset below memory", 5, BASE - 2048);
         new Stage().with(1, 1L << 56 | DATA).run(load(8)).due("bit 56", 5, 1L << 56 | DATA);
+        // All bytes are found before one of them must be in memory: the fifth is not found.
+        new Stage().with(1, (1L << 56) - 4).run(load(8)).due("over the last address with bits 56..63 of 0", 5, 1L << 56);
+        new Stage().with(1, (1L << 56) - 4).run(Rig.store(8, 1, 1, 0)).due("a store over it", 7, 1L << 56);
+        new Stage().with(1, (1L << 56) - 8).run(load(8)).due("just before it", 5, (1L << 56) - 8);
     }
 
     // "LOAD: the data, finished with them. STORE: the operand's lowest bytes".
@@ -306,6 +350,10 @@ public final class EdgesDataTest {
             if (w >>> 20 < 288 || w >>> 20 > 319) {
                 illegal("a 1 of " + (w >>> 20), w | 1 << 15);
                 illegal("a 31 of " + (w >>> 20), w | 31 << 15);
+                for (int bit = 1; bit < 32; bit *= 2) {
+                    illegal("a " + bit + " of " + (w >>> 20), w | bit << 15);
+                    illegal("d " + bit + " of " + (w >>> 20), w | bit << 7);
+                }
             }
         }
         new Stage().run(Rig.SFENCE).fine("288", 4);
@@ -356,6 +404,7 @@ public final class EdgesDataTest {
         dataMode();
         withinOnePage();
         overTwoPages();
+        besideStores();
         allIsFoundFirst();
         windowsByBytes();
         roundTheEnd();

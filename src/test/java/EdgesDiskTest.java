@@ -270,6 +270,75 @@ public final class EdgesDiskTest {
         b.set(112, 15);
         b.request(FLUSH, 0, 0, true).work();
         b.broken("places are 0 behind a reset");
+        // Each one of them: the two others are told anew.
+        long[] places = {BLOCKS, OFFERS, ANSWERS};
+        for (int left = 0; left < 4; left++) {
+            b = new Board();
+            b.set(112, 0);
+            for (int i = 0; i < 3; i++) {
+                if (i != left) {
+                    b.place(128 + 16 * i, places[i]);
+                }
+            }
+            b.set(68, 1);
+            b.set(112, 15);
+            b.request(FLUSH, 0, 0, true).work();
+            if (left < 3) {
+                b.broken("place " + left + " is 0 behind a reset");
+            } else {
+                b.done("all places are told anew", 0, 1);
+            }
+        }
+        // Their upper halves, too: the lower ones alone are told anew.
+        b = new Board(16, -1, -1, -1);
+        b.set(112, 0);
+        for (int i = 0; i < 3; i++) {
+            b.set(128 + 16 * i, (int) places[i]);
+        }
+        b.set(68, 1);
+        b.set(112, 15);
+        b.request(FLUSH, 0, 0, true).work();
+        b.done("the upper halves are 0 behind a reset", 0, 1);
+    }
+
+    /** "the lower, and the upper, 32 bits of where its BLOCKS are": each half alone, in any order, over any other. */
+    private static void halves() {
+        long[] places = {BLOCKS, OFFERS, ANSWERS};
+        for (int way = 0; way < 4; way++) {
+            Board b = new Board(16, way == 3 ? 0 : -1, way == 3 ? 0 : -1, way == 3 ? 0 : -1);
+            b.set(68, 0);
+            for (int i = 0; i < 3; i++) {
+                int lower = 128 + 16 * i;
+                b.set(way == 0 ? lower : lower + 4, way == 0 ? (int) places[i] : 0);
+                b.set(way == 0 ? lower + 4 : lower, way == 0 ? 0 : (int) places[i]);
+                // One half that is wrong spoils it, and does not touch the other one.
+                if (way == 2) {
+                    b.set(lower + 4, 1);
+                }
+            }
+            b.set(68, 1);
+            b.request(FLUSH, 0, 0, true).work();
+            if (way == 2) {
+                b.broken("an upper half that is 1");
+                b = new Board(16, BLOCKS | 1L << 32, OFFERS | 1L << 63, ANSWERS | 1L << 47);
+                b.set(68, 0);
+                for (int i = 0; i < 3; i++) {
+                    b.set(132 + 16 * i, 0);
+                }
+                b.set(68, 1);
+                b.request(FLUSH, 0, 0, true).work();
+            }
+            b.done("halves in the way " + way, 0, 1);
+        }
+        for (int bit = 32; bit < 64; bit++) {
+            for (int i = 0; i < 3; i++) {
+                long far = 1L << bit;
+                Board b = new Board(16, i == 0 ? BLOCKS | far : BLOCKS, i == 1 ? OFFERS | far : OFFERS,
+                        i == 2 ? ANSWERS | far : ANSWERS);
+                b.request(FLUSH, 0, 0, true).work();
+                b.broken("bit " + bit + " of place " + i);
+            }
+        }
     }
 
     /** "(What the device knows of the queue stays when it is made not ready, and ready again.)" */
@@ -400,6 +469,39 @@ public final class EdgesDiskTest {
     // "Whenever a byte that has to be read or written is not in memory ...".
 
     private static void notInMemory() {
+        // The last bytes of memory: of what is read, all must be there, and what is not read, need not.
+        Board last = new Board(16, BLOCKS, BEHIND - 4, ANSWERS);
+        last.request(FLUSH, 0, 0, true).work();
+        Rig.due("offers of just marks and a count, which is 0", last.get(112) + last.get(96), 15);
+        last = new Board(16, BLOCKS, BEHIND - 3, ANSWERS);
+        last.request(FLUSH, 0, 0, true).work();
+        last.broken("offers whose count is there but for its last byte");
+        last = new Board(16, BLOCKS, BEHIND - 5, ANSWERS);
+        last.request(FLUSH, 0, 0, true).put(BEHIND - 5, 5, 1L << 16);
+        last.work().broken("offers whose number is there but for its last byte");
+        last = new Board(16, BLOCKS, BEHIND - 6, ANSWERS);
+        last.request(FLUSH, 0, 0, true).put(BEHIND - 6, 6, 1L << 16);
+        last.work().done("offers whose number is in the last bytes", 0, 1);
+        // The same, with the first byte of memory 0: it does not come behind the last one.
+        for (int off = 3; off <= 5; off += 2) {
+            last = new Board(16, BLOCKS, BEHIND - off, ANSWERS);
+            last.request(FLUSH, 0, 0, true).put(BEHIND - off, off, off == 5 ? 1L << 16 : 0);
+            last.rig.exec(new long[] {Rig.BASE, Rig.BLOCK + 80}, Rig.store(1, 0, 1, 0), Rig.store(4, 0, 2, 0));
+            last.broken("offers " + off + " bytes before the end, and 0 at the beginning");
+        }
+        for (int more = 0; more < 2; more++) {
+            last = new Board(16, BEHIND - 32 + more, OFFERS, ANSWERS);
+            last.request(FLUSH, 0, 0, true).put(BEHIND - 32 + more, 8, HEAD);
+            last.put(BEHIND - 24 + more, 8, 16 | (long) NEXT << 32 | 1L << 48);
+            last.put(BEHIND - 16 + more, 8, RESULT);
+            last.put(BEHIND - 8 + more, 8 - more, 1 | (long) OPEN << 32);
+            last.work();
+            if (more == 0) {
+                last.done("a block in the last sixteen bytes", 0, 1);
+            } else {
+                last.broken("a block that is there but for its last byte");
+            }
+        }
         for (long at : new long[] {0, BEHIND, BEHIND - 3, Rig.BASE - 1, Rig.BASE - 4, -4, 1L << 32 | OFFERS}) {
             Board b = new Board(16, BLOCKS, at, ANSWERS);
             b.rig.longs(BEHIND - 8, 1L << 48);
@@ -464,6 +566,8 @@ public final class EdgesDiskTest {
         Board b = new Board().request(FLUSH, 0, 0, true).offers(0, 1, 16);
         b.work().broken("the first block is n");
         new Board().request(FLUSH, 0, 0, true).offers(0, 1, 65535).work().broken("the first block is 65535");
+        new Board().request(FLUSH, 0, 0, true).offers(0, 1, 256).work().broken("the first block is 256");
+        new Board().request(FLUSH, 0, 0, true).block(1, DATA, 0, NEXT | OPEN, 258).work().broken("a next one is 258");
         new Board().request(FLUSH, 0, 0, true).block(1, DATA, 0, NEXT | OPEN, 16).work().broken("a next one is n");
         new Board().request(FLUSH, 0, 0, true).block(2, RESULT, 1, OPEN, 65535).work().done("what is next without its mark", 0, 1);
         new Board().request(FLUSH, 0, 0, true).block(0, HEAD, 16, NEXT | 4, 1).work().broken("the mark 4 of the first");
@@ -506,6 +610,39 @@ public final class EdgesDiskTest {
         new Board(1).head(FLUSH, 0).block(0, HEAD, 16, NEXT, 0).offers(0, 1, 0).work().broken("a round of one block");
     }
 
+    /** Requests of as many blocks as there are, each kind with data in all of them. */
+    private static void allBlocks() {
+        for (int n = 2; n <= 16; n *= 2) {
+            Board b = filled(n, 0, 2).head(READ, 0).block(0, HEAD, 16, NEXT, 1);
+            for (int k = 1; k < n; k++) {
+                long length = k < n - 1 ? k : 513 - (n - 2) * (n - 1) / 2;
+                b.block(k, DATA + k * (k - 1) / 2, length, k < n - 1 ? NEXT | OPEN : OPEN, k + 1);
+            }
+            b.offers(0, 1, 0).work();
+            b.answered("READ into all of " + n, 1, 513);
+            checkMemory(b, "READ into all of " + n, Arrays.copyOf(pattern(512, 3), 512));
+            Rig.due("its result", b.at(DATA + 512, 1), 0);
+            b = filled(n, 0, 2).head(NAME, 0).block(0, HEAD, 16, NEXT, 1);
+            for (int k = 1; k < n; k++) {
+                b.block(k, DATA + 8 * k, 2, k < n - 1 ? NEXT | OPEN : OPEN, k + 1);
+            }
+            b.offers(0, 1, 0).work();
+            b.answered("NAME into all of " + n, 1, Math.min(2 * (n - 1) - 1, 20) + 1);
+            Rig.due("its first bytes", b.at(DATA + 8, 2), n == 2 ? 98 : 98 | 108 << 8);
+            b = filled(n, 0, 2).head(WRITE, 7).block(0, HEAD, 16, NEXT, 1);
+            b.rig.bytes(DATA, pattern(512, 60));
+            for (int k = 1; k < n - 1; k++) {
+                long length = k < n - 2 ? k : 512 - (n - 3) * (n - 2) / 2;
+                b.block(k, DATA + k * (k - 1) / 2, length, NEXT, k + 1);
+            }
+            b.block(n - 1, RESULT, 1, OPEN, 0).offers(0, 1, 0).work();
+            b.done("WRITE of all of " + n, 0, 1);
+            for (int i = 0; i < 512; i++) {
+                Rig.due("byte " + i, b.machine.disk(7 * 512 + i), n > 2 ? pattern(512, 60)[i] & 255 : 0);
+            }
+        }
+    }
+
     // A REQUEST.
 
     private static void kinds() {
@@ -525,7 +662,11 @@ public final class EdgesDiskTest {
     }
 
     private static Board filled(int sector, int count) {
-        Board b = new Board();
+        return filled(16, sector, count);
+    }
+
+    private static Board filled(int size, int sector, int count) {
+        Board b = new Board(size);
         b.rig.feed(pattern(512 * count, 3));
         b.machine.load(BoardMachine.SECTORS, sector);
         return b;
@@ -728,6 +869,7 @@ public final class EdgesDiskTest {
         sizes();
         states();
         reset();
+        halves();
         notReady();
         nothingHappens();
         ahead();
@@ -738,6 +880,7 @@ public final class EdgesDiskTest {
         blocksNotInMemory();
         wrongBlocks();
         manyBlocks();
+        allBlocks();
         kinds();
         reads();
         writes();

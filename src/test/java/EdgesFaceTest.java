@@ -154,6 +154,13 @@ public final class EdgesFaceTest {
             BoardMachine m = busy();
             refused("sectors at " + s, INDEX, m, () -> m.load(SECTORS, s));
         }
+        for (long a : new long[] {BASE - 1, BEHIND, 0, -1, Long.MIN_VALUE, Long.MAX_VALUE}) {
+            BoardMachine m = busy();
+            m.end(1);
+            Rig.throwing("one byte at " + a, INDEX, () -> m.load(BYTES, a));
+            Rig.throwing("one byte at the sector " + a, INDEX, () -> m.load(SECTORS, a == 0 ? 2048 : a));
+            Rig.due("the tape stays", m.load(BYTES, BEHIND - 1), 1);
+        }
         BoardMachine m = busy();
         Rig.due("the last twenty bytes", m.load(BYTES, BEHIND - 20), 20);
         Rig.due("are there", m.word(BEHIND - 8), 0x0500000004000000L);
@@ -227,6 +234,16 @@ public final class EdgesFaceTest {
                 disk * 1000 + waiting * 100 + sent * 10 + time);
         Rig.due("memory stays", m.word(BASE) & 0xFFFFFFFFL, Rig.lui(1, 0x10000));
         Rig.due("the tape stays", m.feed(0, 0, 0, 0, 0), 40);
+        // A locked region is gone, also for data that it covered but in part.
+        Rig locked = new Rig(1);
+        for (int config : new int[] {0x90, 0x88, 0x98, 0x10}) {
+            locked.exec(new long[] {config, Rig.DATA + 0x404 >> 2, Rig.DATA + 0x400}, Rig.csrrw(0, 944, 2),
+                    Rig.csrrw(0, 928, 1), Rig.ld(5, 3, 0));
+            Rig.due("it binds before start()", locked.csr(834), config == 0x88 ? 1 : 5);
+            locked.exec(new long[] {0, 0, Rig.DATA + 0x400}, Rig.ld(5, 3, 0), Rig.store(8, 5, 3, 0));
+            Rig.due("it does not behind it", locked.csr(834), 0);
+            Rig.due("both are run", locked.csr(2818), 34);
+        }
         // The tree is laid down again where it was stored over.
         Rig rig = new Rig(1);
         long before = rig.machine.sum(TREE, TREE + 2000);

@@ -116,6 +116,13 @@ public final class EdgesFindingTest {
         let(1, LOADS, q, q, 0x181F).fine("the first one counts", 4);
         let(1, LOADS, q + 2, q, 0x1F18).fine("the first one that covers counts", 4);
         let(3, LOADS, 0, 0, 0).fine("none covers, in mode 3", 4);
+        // Regions that cover nothing, though a bound of theirs lies within the data.
+        let(1, LOADS, q + 1, 0, 0x1FL << 56).fine("A 0, its number within", 4);
+        let(3, LOADS, q + 1, 0, 0x1FL << 56 | 0x98).due("A 3, its number within", 5, DATA);
+        let(1, LOADS, q + 1, q + 1, 0x1FL << 56 | 0x0800).fine("A 1, twice the same number within", 4);
+        let(1, LOADS, q + 2, q + 1, 0x1FL << 56 | 0x0800).fine("A 1, a less number within", 4);
+        let(1, Rig.ld(3, 1, 1), q + 2, q + 1, 0x1FL << 56 | 0x0800).fine("A 1, both numbers within, the less one last", 4);
+        let(1, Rig.ld(3, 1, 1), q + 1, q + 2, 0x1FL << 56 | 0x0900).due("A 1, both numbers within", 5, DATA + 1);
         let(1, LOADS, 0, 0, 0).due("none covers, in mode 1", 5, DATA);
         let(0, STORES, 0, 0, 0).due("none covers, in mode 0", 7, DATA);
         // A fetch.
@@ -186,6 +193,11 @@ public final class EdgesFindingTest {
                 .fine("the last page of memory", 4);
         stage(8, 1).withControl(384, 8L << 60 | 0xFFFFL << 44 | TABLES >> 12).with(1, PAGE).run(LOADS)
                 .fine("bits 44..59 of the table do not count", 4);
+        stage(8, 1).withControl(384, 8L << 60 | 1L << 43 | TABLES >> 12).run(LOADS).due("bit 43 of the table does", 1, CODE);
+        stage(8, 1).memory(TABLES, Stage.entry(TABLES + 0x1000, V) | 1L << 53).with(1, PAGE).run(LOADS)
+                .due("the highest bit of the next page's number", 5, PAGE);
+        stage(8, 1).page(PAGE, Stage.entry(DATA, 0xCF) | 1L << 53).with(1, PAGE).run(LOADS)
+                .due("the highest bit of the last page's number", 5, PAGE);
         // Regions over the tables: without R, with R alone; the user's accesses go by mode 1 as well.
         for (int mode = 0; mode < 2; mode++) {
             Stage s = stage(8, mode).withControl(944, TABLES >> 2 | 0x1FF).withControl(951, -1);
@@ -340,6 +352,16 @@ public final class EdgesFindingTest {
         readOnly("a load of a page with A", LOADS, rw | A, 0);
         readOnly("a store into a page with both", STORES, rw | A | D, 0);
         Rig.due("a great page is marked too", great(), Stage.entry(BASE, V | R | W | A | D));
+        // Just its eight bytes may be stored into, what is beside them may not.
+        for (long beside : new long[] {-8, 8}) {
+            s = leaf(1, 0, rw).withControl(944, Stage.leaf(PAGE) >> 2).withControl(945, Stage.leaf(PAGE) + beside >> 2)
+                    .withControl(951, -1).withControl(928, 0x1FL << 56 | 0x191B).run(STORES);
+            s.fine("a region of just the entry", 4);
+            Rig.due("it is marked", s.machine.word(Stage.leaf(PAGE)), Stage.entry(DATA, rw | A | D));
+            s = leaf(1, 0, rw).withControl(944, Stage.leaf(PAGE) >> 2).withControl(945, Stage.leaf(PAGE) + beside >> 2)
+                    .withControl(951, -1).withControl(928, 0x1FL << 56 | 0x1B19).run(STORES);
+            s.due("a region of just the entry, without W", 7, PAGE);
+        }
     }
 
     private static void readOnly(String what, int w, long bits, int cause) {

@@ -86,6 +86,8 @@ public final class EdgesImageTest {
         load("40 .. 51 are any", new Image(1).put(40, 8, -1).put(48, 4, -1), 0);
         load("2 at 52", new Image(1).put(52, 2, 63), 4);
         load("2 at 54", new Image(1).put(54, 2, 55), 4);
+        load("2 at 52, the upper one", new Image(1).put(52, 2, 64 | 1 << 8), 4);
+        load("2 at 54, the upper one", new Image(1).put(54, 2, 56 | 128 << 8), 4);
         load("58 .. 63 are any", new Image(1).put(58, 6, -1), 0);
     }
 
@@ -137,6 +139,11 @@ public final class EdgesImageTest {
         load("a + m that wraps", one(0, -8, 8, 16), 6);
         load("a far away", one(0, 1L << 32 | BASE, 8, 8), 6);
         load("a with its highest bit", one(0, Long.MIN_VALUE | BASE, 8, 8), 6);
+        // Of eight bytes the highest counts, too.
+        load("o with its highest byte", one(1L << 56, BASE, 8, 8), 5);
+        load("f with its highest byte", one(0, BASE, 1L << 56 | 8, 1L << 57), 5);
+        load("a with its highest byte", one(0, 1L << 56 | BASE, 8, 8), 6);
+        load("m with its highest byte", one(0, BASE, 8, 1L << 56 | 8), 6);
         load("no byte in memory, anywhere", one(0, 0, 0, 0), 0);
         load("no byte in memory, behind memory", one(0, BEHIND, 0, 0), 0);
         load("no byte in memory, at the last address", one(0, -1, 0, 0), 0);
@@ -168,6 +175,9 @@ public final class EdgesImageTest {
             BoardMachine m = load("the type " + type + " is passed over", image, 0);
             Rig.due("the other one is loaded", m.word(BASE + 0x2000), 0x2222222222222222L);
             Rig.due("it is not", m.word(BASE + 0x1000), 0x5555555555555555L);
+            m = load("a good one of the type " + type, new Image(2).put(64, 4, type), 0);
+            Rig.due("nothing of it is loaded", m.word(BASE + 0x1000), 0x5555555555555555L);
+            Rig.due("nor zeros behind it", m.word(BASE + 0x1008), 0x5555555555555555L);
         }
     }
 
@@ -179,6 +189,8 @@ public final class EdgesImageTest {
         load("one behind", new Image(1).put(24, 8, BEHIND), 8);
         load("the entry 0", new Image(1).put(24, 8, 0), 8);
         load("the entry -2", new Image(1).put(24, 8, -2), 8);
+        load("an entry with its highest byte", new Image(1).put(24, 8, 1L << 56 | BASE), 8);
+        load("an entry with its highest bit", new Image(1).put(24, 8, 1L << 63 | BASE), 8);
         load("an entry that is in no segment", new Image(1).put(24, 8, BASE + 0x300000), 0);
     }
 
@@ -213,6 +225,30 @@ public final class EdgesImageTest {
         Rig.due("behind them", m.word(BASE + 0x1010), 0x5555555555555555L);
         m = load("over the tree", one(0, TREE, 8, 4096), 0);
         Rig.due("start lays the tree down again", m.word(TREE) & 0xFFFFFFFFL, 0xEDFE0DD0L);
+    }
+
+    /** From each of eight places on, some bytes and some zeros: none before them, none behind. */
+    private static void places() {
+        for (int place = 0; place < 8; place++) {
+            for (int f = 0; f <= 9; f += 3) {
+                for (int zeros = 0; zeros < 18; zeros++) {
+                    Rig rig = new Rig(1);
+                    byte[] want = new byte[60];
+                    Arrays.fill(want, (byte) 0x55);
+                    rig.bytes(BASE + 0x1000, want);
+                    rig.feed(one(0, BASE + 0x1010 + place, f, f + zeros).bytes);
+                    rig.machine.load(BoardMachine.IMAGE, 0);
+                    for (int i = 0; i < f + zeros; i++) {
+                        want[16 + place + i] = (byte) (i < f && i < BEGINS.length ? BEGINS[i] : 0);
+                    }
+                    long sum = 0;
+                    for (byte v : want) {
+                        sum = sum * 31 + (v & 255);
+                    }
+                    Rig.due(f + " bytes and " + zeros + " zeros at " + place, rig.machine.sum(BASE + 0x1000, BASE + 0x103C), sum);
+                }
+            }
+        }
     }
 
     /** The entry is that of the latest image that was not refused. */
@@ -266,6 +302,7 @@ public final class EdgesImageTest {
         entries();
         order();
         loading();
+        places();
         latest();
         trees();
         Rig.finish("EdgesImageTest");

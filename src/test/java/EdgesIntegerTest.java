@@ -115,6 +115,13 @@ public final class EdgesIntegerTest {
         immediate("I unsigned, with its sign before", 3, 5, -1, 1);
         immediate("the greatest is not less than I -1, unsigned", 3, -1, -1, 0);
         immediate("0 is less than 1, unsigned", 3, 0, 1, 1);
+        for (int i : new int[] {-2048, -1, 0, 1, 2047}) {
+            for (int near = -1; near <= 1; near++) {
+                long x = i + near;
+                immediate(x + " and I " + i, 2, x, i, near < 0 ? 1 : 0);
+                immediate(x + " and I " + i + ", unsigned", 3, x, i, Long.compareUnsigned(x, i) < 0 ? 1 : 0);
+            }
+        }
     }
 
     private static void branches() {

@@ -219,6 +219,38 @@ public final class EdgesSignalsTest {
         Rig.due("while it is served it does not wait", rig.peek(WAITS, 4), 0);
     }
 
+    /** Of two sources each is served, and completed, on its own. */
+    private static void bothSources() {
+        for (int first = 1; first <= 10; first += 9) {
+            int other = 11 - first;
+            Rig rig = waiting(2, 2);
+            rig.poke(ENABLES, 4, -1);
+            Rig.due("source 1", rig.peek(CLAIM, 4), 1);
+            Rig.due("source 10", rig.peek(CLAIM, 4), 10);
+            rig.poke(CLAIM, 4, first);
+            Rig.due("the one that is completed waits again", rig.peek(WAITS, 4), 1 << first);
+            Rig.due("the other one is served still", rig.peek(CLAIM, 4), first);
+            Rig.due("none waits", rig.peek(WAITS, 4), 0);
+            rig.poke(CLAIM, 4, other);
+            Rig.due("the other one waits again", rig.peek(WAITS, 4), 1 << other);
+            rig.poke(CLAIM, 4, first);
+            Rig.due("both wait", rig.peek(WAITS, 4), 1026);
+            rig = waiting(2, 2);
+            rig.poke(ENABLES, 4, 1 << first);
+            Rig.due("one is claimed", rig.peek(CLAIM, 4), first);
+            Rig.due("the other one waits", rig.peek(WAITS, 4), 1 << other);
+            rig.poke(CLAIM, 4, first);
+            Rig.due("both wait again", rig.peek(WAITS, 4), 1026);
+        }
+        // One that was never served waits as soon as its signal is on, also when another one was completed.
+        Rig rig = served();
+        rig.poke(CLAIM, 4, 10);
+        rig.poke(Rig.BLOCK + 112, 4, 4);
+        rig.poke(Rig.BLOCK + 68, 4, 1);
+        rig.poke(Rig.BLOCK + 80, 4, 0);
+        Rig.due("source 1 behind it", rig.peek(WAITS, 4), 1026);
+    }
+
     private static void lines() {
         for (int c = 0; c < 2; c++) {
             long on = c == 0 ? 2048 : 512;
@@ -406,6 +438,52 @@ public final class EdgesSignalsTest {
         Rig.due("6: the signal", rig.peek(WAITS, 4), 1024);
     }
 
+    /** Every register 1, with IN empty or not, with an overrun or not, EMPTIED or not. */
+    private static void allCauses() {
+        for (int enabled = 0; enabled < 16; enabled++) {
+            for (int state = 0; state < 8; state++) {
+                boolean isIn = (state & 1) != 0, isOverrun = (state & 2) != 0, isEmptied = (state & 4) != 0;
+                Rig rig = looped(0);
+                send(rig, isOverrun ? 2 : 1);
+                if (!isIn) {
+                    rig.peek(SERIAL, 1);
+                }
+                // Bit 1 goes on and is read, so that it is not EMPTIED; bit 0 alone would give 4.
+                rig.poke(SERIAL + 1, 1, 2);
+                Rig.due("EMPTIED", rig.peek(SERIAL + 2, 1), 2);
+                rig.poke(SERIAL + 1, 1, enabled);
+                if (isEmptied) {
+                    rig.poke(SERIAL + 4, 1, 0);
+                    rig.poke(SERIAL, 1, 65);
+                }
+                int want = (enabled & 4) != 0 && isOverrun ? 6 : (enabled & 1) != 0 && isIn ? 4
+                        : (enabled & 2) != 0 && isEmptied ? 2 : 1;
+                String what = "register 1 " + enabled + ", state " + state;
+                Rig.due(what + ": read", rig.peek(SERIAL + 1, 1), enabled);
+                Rig.due(what + ": cause", rig.peek(SERIAL + 2, 1), want);
+                Rig.due(what + ": cause again", rig.peek(SERIAL + 2, 1), want == 2 ? 1 : want);
+            }
+        }
+    }
+
+    /** From every register 1 to every other one: EMPTIED just when bit 1 becomes 1 and was 0. */
+    private static void becomes() {
+        for (int before = 0; before < 16; before++) {
+            Rig rig = new Rig(1);
+            for (int then = 0; then < 16; then++) {
+                rig.poke(SERIAL + 1, 1, 2);
+                rig.peek(SERIAL + 2, 1);
+                rig.poke(SERIAL + 1, 1, before);
+                // It became 1 and is read; or it is 0, and was not EMPTIED since.
+                rig.peek(SERIAL + 2, 1);
+                rig.poke(SERIAL + 1, 1, then);
+                boolean isEmptied = (then & 2) != 0 && (before & 2) == 0;
+                Rig.due("from " + before + " to " + then, rig.peek(SERIAL + 2, 1), isEmptied ? 2 : 1);
+                rig.poke(SERIAL + 1, 1, 0);
+            }
+        }
+    }
+
     /** A byte of INPUT that comes turns the signal on with its round. */
     private static void signalOfInput() {
         Stage s = new Stage().with(1, SERIAL).with(2, 1).with(3, CONTROLLER).with(4, ENABLES).with(5, 1 << 10);
@@ -450,12 +528,15 @@ public final class EdgesSignalsTest {
         numbers();
         claims();
         completes();
+        bothSources();
         lines();
         queues();
         emptiedQueues();
         registers();
         emptied();
         causes();
+        allCauses();
+        becomes();
         signalOfInput();
         outs();
         Rig.finish("EdgesSignalsTest");

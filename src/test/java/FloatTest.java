@@ -514,6 +514,170 @@ public final class FloatTest {
         checkFloat("double of one that is not boxed", quiet(), one, 0, 0);
     }
 
+    // Runs of instructions, one behind the other, over all registers: nothing of an earlier one is left in a later one.
+
+    private static final int PRELUDE = 68, STEPS = 60;
+    private static final long[] floats = new long[32], integers = new long[32];
+
+    /** What an instruction reads of a register, in the format at hand. */
+    private static long readFloat(int register) {
+        long v = floats[register];
+        return !single ? v : v >>> 32 == 0xFFFFFFFFL ? v & 0xFFFFFFFFL : quiet();
+    }
+
+    private static void anyRegisters() {
+        for (int i = 0; i < 32; i++) {
+            single = random.nextInt(3) > 0;
+            floats[i] = boxed(anyOperand());
+            if (random.nextInt(16) == 0) {
+                floats[i] ^= 1L << 32 + random.nextInt(32);
+            }
+            integers[i] = i == 0 ? 0 : random.nextLong() >> random.nextInt(64);
+        }
+    }
+
+    /** Sets all registers and starts; behind the prelude the steps stand, one word each. */
+    private static void prepare(Rig one, int mode, int[] steps) {
+        int[] words = new int[PRELUDE + steps.length];
+        words[0] = Rig.lui(5, 2);
+        words[1] = Rig.csrrs(0, 768, 5);
+        words[2] = Rig.csrrwi(0, 2, mode);
+        words[3] = Rig.auipc(31, 1);
+        for (int i = 0; i < 32; i++) {
+            words[4 + i] = Rig.i(7, i, 3, 31, 8 * i);
+            words[36 + i] = Rig.ld(i, 31, 256 + 8 * i);
+        }
+        System.arraycopy(steps, 0, words, PRELUDE, steps.length);
+        one.words(Rig.BASE, words);
+        one.longs(Rig.BASE + 12 + 4096, floats);
+        one.longs(Rig.BASE + 12 + 4096 + 256, integers);
+        one.machine.start();
+        one.machine.run(PRELUDE);
+    }
+
+    /** A random instruction that is not illegal. */
+    private static int anyInstruction() {
+        int t = random.nextInt(2), a = random.nextInt(32), b = random.nextInt(32), d = random.nextInt(32);
+        int r = random.nextInt(3) == 0 ? 7 : random.nextInt(5);
+        switch (random.nextInt(14)) {
+            case 0: case 1: return Rig.r(83, d, r, a, b, random.nextInt(4) << 2 | t);
+            case 2: case 3: return Rig.r(67 + 4 * random.nextInt(4), d, r, a, b, random.nextInt(32) << 2 | t);
+            case 4: return Rig.r(83, d, r, a, 0, 11 << 2 | t);
+            case 5: return Rig.r(83, d, random.nextInt(3), a, b, 4 << 2 | t);
+            case 6: return Rig.r(83, d, random.nextInt(2), a, b, 5 << 2 | t);
+            case 7: return Rig.r(83, d, r, a, 1 - t, 8 << 2 | t);
+            case 8: return Rig.r(83, d, random.nextInt(3), a, b, 20 << 2 | t);
+            case 9: return Rig.r(83, d, r, a, random.nextInt(4), 24 << 2 | t);
+            case 10: return Rig.r(83, d, r, a, random.nextInt(4), 26 << 2 | t);
+            case 11: return Rig.r(83, d, 0, a, 0, 30 << 2 | t);
+            default: return Rig.r(83, d, random.nextInt(2), a, 0, 28 << 2 | t);
+        }
+    }
+
+    private static long calculated(int w, int k) {
+        long x = readFloat(w >>> 15 & 31), y = readFloat(w >>> 20 & 31), z = readFloat(k);
+        int code = w & 127;
+        if (code != 83) {
+            long first = isNan(x) ? x : code >= 75 ? x ^ signBit() : x;
+            return fused(first, y, isNan(z) ? z : code == 71 || code == 79 ? z ^ signBit() : z);
+        }
+        switch (k) {
+            case 0: return fused(x, one(), y);
+            case 1: return fused(x, one(), isNan(y) ? y : y ^ signBit());
+            case 2: return times(x, y);
+            default: return divided(x, y);
+        }
+    }
+
+    private static void follow(int w, int mode) {
+        int k = w >>> 27, r = w >>> 12 & 7, d = w >>> 7 & 31, a = w >>> 15 & 31, b = w >>> 20 & 31;
+        single = (w >>> 25 & 3) == 0;
+        rm = r == 7 ? mode : r;
+        long x = readFloat(a), y = readFloat(b);
+        boolean isArithmetic = (w & 127) != 83 || k < 4;
+        if (isArithmetic) {
+            floats[d] = boxed(calculated(w, k));
+            return;
+        }
+        long before = floats[d];
+        long integer = integers[d];
+        switch (k) {
+            case 4: floats[d] = boxed(magnitude(x) | (r == 0 ? y : r == 1 ? ~y : x ^ y) & signBit()); break;
+            case 5: floats[d] = boxed(chosen(x, y, r)); break;
+            case 8:
+                single = !single;
+                long other = readFloat(a);
+                single = !single;
+                floats[d] = boxed(converted(other, !single));
+                break;
+            case 11: floats[d] = boxed(root(x)); break;
+            case 20: integer = compared(x, y, r); break;
+            case 24: integer = toInteger(x, b); break;
+            case 26: floats[d] = boxed(fromInteger(integers[a], b)); break;
+            case 28: integer = r == 1 ? classed(x) : single ? (int) floats[a] : floats[a]; break;
+            default: floats[d] = boxed(integers[a]); break;
+        }
+        boolean isInteger = k == 20 || k == 24 || k == 28;
+        integers[d] = d == 0 ? 0 : integer;
+        floats[d] = isInteger ? before : floats[d];
+    }
+
+    private static void sequences() {
+        for (int i = 0; i < 400; i++) {
+            int mode = random.nextInt(5);
+            anyRegisters();
+            int[] steps = new int[STEPS];
+            for (int j = 0; j < STEPS; j++) {
+                // Every fourth one clears the flags, so that one that is raised wrongly is seen.
+                steps[j] = j % 4 == 3 ? Rig.csrrwi(0, 1, 0) : anyInstruction();
+            }
+            Rig one = new Rig(1);
+            prepare(one, mode, steps);
+            flags = 0;
+            for (int j = 0; j < STEPS; j++) {
+                one.machine.run(1);
+                if (j % 4 == 3) {
+                    flags = 0;
+                } else {
+                    follow(steps[j], mode);
+                }
+                String told = "step " + j + " of run " + i + ", " + Integer.toHexString(steps[j]);
+                int d = steps[j] >>> 7 & 31;
+                Rig.due(told + ": float", one.f(d), floats[d]);
+                Rig.due(told + ": integer", one.x(d), integers[d]);
+                Rig.due(told + ": flags", one.csr(1), flags);
+            }
+            for (int r = 0; r < 32; r++) {
+                Rig.due("float " + r + " of run " + i, one.f(r), floats[r]);
+                Rig.due("integer " + r + " of run " + i, one.x(r), integers[r]);
+            }
+            Rig.due("counter of run " + i, one.machine.counter(0), Rig.BASE + 4 * (PRELUDE + STEPS));
+        }
+    }
+
+    /** A third operand that makes the sum just a number of the format: what is left of the product, or is missing. */
+    private static void residuals() {
+        for (int i = 0; i < 3000; i++) {
+            single = i % 2 == 0;
+            long mask = (1L << fractionBits()) - 1;
+            long x = random.nextLong() & mask | (long) (bias() - 3 + random.nextInt(7)) << fractionBits();
+            long y = random.nextLong() & mask | (long) (bias() - 3 + random.nextInt(7)) << fractionBits();
+            rm = 1 + random.nextInt(3);
+            long near = times(x, y);
+            BigInteger left = exact(near).shiftLeft(1200).subtract(exact(x).multiply(exact(y)));
+            rm = random.nextInt(5);
+            flags = 0;
+            long z = left.signum() == 0 ? 0 : round(left, ONE.shiftLeft(2400));
+            if (i % 3 == 0) {
+                z += random.nextInt(3) - 1;
+            }
+            flags = 0;
+            long want = fused(x, y, z);
+            runOne(word(67, 3, rm, 2, 4), rm, boxed(x), boxed(y), boxed(z), 0);
+            checkFloat("residual", want, x, y, z);
+        }
+    }
+
     private static void illegal(String what, int w, int mode, boolean want) {
         runOne(w, mode, 0, 0, 0, 0);
         Rig.due(what + " illegal", gotIllegal == want);
@@ -590,6 +754,16 @@ public final class FloatTest {
         Rig.due("register 1 before writing", rig.x(12), 31);
         Rig.due("register 3 at last", rig.csr(3), 0xE1);
         Rig.due("state", rig.csr(768) < 0);
+        for (int v = 0; v < 256; v++) {
+            rig.exec(new long[] {0x2000, v, 0x155 ^ v}, Rig.csrrs(0, 768, 1), Rig.csrrw(0, 3, 2), Rig.csrrs(5, 1, 0),
+                    Rig.csrrs(6, 2, 0), Rig.csrrs(7, 3, 0), Rig.csrrw(0, 1, 3), Rig.csrrs(8, 3, 0), Rig.csrrw(0, 2, 3),
+                    Rig.csrrs(9, 3, 0));
+            Rig.due("flags of " + v, rig.x(5), v & 31);
+            Rig.due("mode of " + v, rig.x(6), v >> 5);
+            Rig.due("both of " + v, rig.x(7), v);
+            Rig.due("flags alone over " + v, rig.x(8), v & 0xE0 | (0x155 ^ v) & 31);
+            Rig.due("mode alone over " + v, rig.x(9), ((0x155 ^ v) & 7) << 5 | (0x155 ^ v) & 31);
+        }
         rig.exec(registers, Rig.csrrs(0, 768, 1), Rig.csrrs(5, 3, 0));
         Rig.due("state behind reading alone", rig.csr(768) >>> 13 & 3, 1);
     }
@@ -635,6 +809,8 @@ public final class FloatTest {
             }
         }
         unboxed();
+        sequences();
+        residuals();
         legality();
         switchedOff();
         flagRegisters();

@@ -36,21 +36,20 @@ final class Rig {
 
     // What a call throws.
 
-    static final int STATE = 1, ARGUMENT = 2, INDEX = 3;
+    static final int STATE = 1, ARGUMENT = 2, INDEX = 3, OTHER = 4;
 
     interface Call {
         long make();
     }
 
+    /** What a call throws: one of these just so, none of a class below them, which a program throws by itself alone. */
     static int thrown(Call call) {
         try {
             call.make();
-        } catch (IllegalStateException e) {
-            return STATE;
-        } catch (IllegalArgumentException e) {
-            return ARGUMENT;
-        } catch (IndexOutOfBoundsException e) {
-            return INDEX;
+        } catch (RuntimeException e) {
+            Class<?> c = e.getClass();
+            return c == IllegalStateException.class ? STATE : c == IllegalArgumentException.class ? ARGUMENT
+                    : c == IndexOutOfBoundsException.class ? INDEX : OTHER;
         }
         return 0;
     }
