@@ -192,7 +192,30 @@ public final class EdgesAtomicTest {
         Rig.due("the other one does not", rig.machine.register(1, 5), 1);
     }
 
+    /** start(): "no reservation", of any processor; without it each one's own succeeds. */
+    private static void startUndoes() {
+        for (int way = 0; way < 2; way++) {
+            Rig rig = new Rig(4);
+            int own = Rig.r(51, 1, 0, 1, 2, 0), shift = Rig.i(19, 2, 1, 10, 4);
+            rig.words(Rig.BASE, Rig.auipc(1, 8), shift, own, Rig.amo(2, 8, 4, 1, 0), Rig.amo(3, 8, 5, 1, 11));
+            rig.machine.start();
+            rig.machine.run(4);
+            if (way == 1) {
+                rig.words(Rig.BASE + 12, Rig.NOP);
+                rig.machine.start();
+                rig.machine.run(4);
+            }
+            rig.machine.run(1);
+            for (int h = 0; h < 4; h++) {
+                Rig.due("processor " + h + (way == 1 ? " behind start()" : ""), rig.machine.register(h, 5), way);
+                Rig.due("what is stored", rig.machine.word(Rig.BASE + 0x8000 + 16 * h), way == 1 ? 0 : Rig.BASE + 4186112);
+            }
+            Rig.due("no breach", rig.machine.breaches(), 0);
+        }
+    }
+
     public static void main(String[] args) {
+        startUndoes();
         operations();
         lostOrNot();
         justThis();

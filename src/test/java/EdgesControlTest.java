@@ -164,6 +164,95 @@ public final class EdgesControlTest {
         Rig.due("bit 9 itself was set", s.x(17), 512);
     }
 
+    private static final int[] INTERRUPTS = {1, 5, 9};
+
+    private static long some(int subset) {
+        long v = 0;
+        for (int i = 0; i < 3; i++) {
+            v |= (subset >> i & 1) == 1 ? 1L << INTERRUPTS[i] : 0;
+        }
+        return v;
+    }
+
+    private static long operated(int operation, long before, long operand) {
+        return operation == 1 ? operand : operation == 2 ? before | operand : before & ~operand;
+    }
+
+    /** 260 and 324: all that may be delegated, enabled, or pending, and all operations. */
+    private static void throughOthers() {
+        Rig rig = new Rig(1);
+        for (int i = 0; i < 512; i++) {
+            long handed = some(i & 7), there = some(i >> 3 & 7), operand = some(i >> 6) | 0x888;
+            for (int operation = 1; operation <= 3; operation++) {
+                int by260 = Rig.i(115, 6, operation, 3, 260), by324 = Rig.i(115, 7, operation, 3, 324);
+                rig.exec(new long[] {handed, there | 0x800, operand, there}, Rig.csrrw(0, 771, 1), Rig.csrrw(0, 772, 2),
+                        Rig.csrrw(0, 836, 4), by260, by324, Rig.csrrs(8, 260, 0), Rig.csrrs(9, 324, 0));
+                long enabled = operated(operation, there & handed, operand), pending = enabled;
+                String told = "771 " + handed + ", there " + there + ", operation " + operation + " with " + operand;
+                Rig.due(told + ": 260 before", rig.x(6), there & handed);
+                Rig.due(told + ": 324 before", rig.x(7), there & handed);
+                long want = there & ~handed | enabled & handed;
+                Rig.due(told + ": 772", rig.csr(772), want | 0x800);
+                Rig.due(told + ": 260", rig.x(8), want & handed);
+                want = there & ~(handed & 2) | pending & handed & 2;
+                Rig.due(told + ": 836", rig.csr(836), want);
+                Rig.due(told + ": 324", rig.x(9), want & handed);
+                Rig.due(told + ": no trap", rig.csr(834), 0);
+            }
+        }
+    }
+
+    private static final int[] REGISTERS = {1, 2, 3, 256, 260, 261, 262, 320, 321, 322, 323, 324, 384, 768, 769, 770, 771, 772,
+        773, 774, 832, 833, 834, 835, 836, 928, 930, 944, 945, 946, 947, 948, 949, 950, 951, 952, 955, 959, 2816, 2818, 3072,
+        3074, 3857, 3858, 3859, 3860, 3861};
+    /** Those that show, of what is written to the first, something too. */
+    private static final int[][] TOGETHER = {{768, 256}, {256, 768}, {771, 260, 324}, {772, 260}, {260, 772}, {836, 324},
+        {324, 836}, {1, 3, 768, 256}, {2, 3, 768, 256}, {3, 1, 2, 768, 256}};
+
+    private static boolean isTogether(int k, int other) {
+        for (int[] some : TOGETHER) {
+            for (int i = 1; some[0] == k && i < some.length; i++) {
+                if (some[i] == other) {
+                    return true;
+                }
+            }
+        }
+        return k == other || other == 2816 || other == 2818 || other == 3072 || other == 3074;
+    }
+
+    /** A write changes its own register, what shows the same, and the counts: no other. */
+    private static void othersStay() {
+        for (int k : REGISTERS) {
+            for (long v : new long[] {-1, 0, 0x5A5A5A5A5A5A5A5AL, 0x8000000000000001L}) {
+                if (k >= 3072) {
+                    continue;
+                }
+                Stage s = new Stage().closed().withControl(3, 0x4B).withControl(770, 0x5155).withControl(771, 0x202)
+                        .withControl(772, 0x8A2).withControl(773, 0x9001).withControl(774, 5).withControl(261, 0xA001)
+                        .withControl(262, 3).withControl(384, 8L << 60 | 77).withControl(836, 0x220);
+                for (int i = 0; i < 4; i++) {
+                    s.withControl(320 + i, 0x1230 + 2 * i).withControl(832 + (i == 1 ? 0 : i), 0x4560 + 2 * i);
+                }
+                for (int i = 0; i < 8; i++) {
+                    s.withControl(944 + i, 0x777000 + i);
+                }
+                s.withControl(928, 0x1B19180F0B090807L).with(1, v).words(CODE, Rig.csrrw(0, k, 1)).ready();
+                long[] before = new long[REGISTERS.length];
+                for (int i = 0; i < before.length; i++) {
+                    before[i] = s.control(REGISTERS[i]);
+                }
+                s.more(1);
+                Rig.due("it was written", s.machine.counter(0), CODE + 4);
+                for (int i = 0; i < before.length; i++) {
+                    if (!isTogether(k, REGISTERS[i])) {
+                        Rig.due(REGISTERS[i] + " behind a write of " + v + " to " + k, s.control(REGISTERS[i]), before[i]);
+                    }
+                }
+                Rig.due("modes stay", s.machine.mode(0), 3);
+            }
+        }
+    }
+
     // A TRAP.
 
     private static void traps() {
@@ -312,6 +401,8 @@ public final class EdgesControlTest {
         modes();
         openCounts();
         outsideLine();
+        throughOthers();
+        othersStay();
         traps();
         vectors();
         returns();

@@ -224,6 +224,50 @@ public final class EdgesDataTest {
         Rig.due("FS stays behind a store", s.floatState(), 1);
     }
 
+    /** A LOAD, or a STORE, of DATA, with all faults and marks of these; behind a fault nothing has changed. */
+    private static void floatFaults() {
+        for (int log = 2; log <= 3; log++) {
+            int load = Rig.i(7, 1, log, 1, 0), store = Rig.s(39, log, 1, 1, 0), n = 1 << log;
+            for (int w : new int[] {load, store}) {
+                boolean loads = w == load;
+                String what = (loads ? "load of " : "store of ") + n;
+                faulted(what + ": a page that is not there", new Stage().tables(1), EDGE, w, loads ? 13 : 15, EDGE);
+                faulted(what + ": over its edge", new Stage().tables(1), EDGE - 1, w, loads ? 13 : 15, EDGE);
+                faulted(what + ": a page without rights", new Stage().tables(1).page(PAGE, Stage.entry(DATA, 0xC9)), PAGE, w,
+                        loads ? 13 : 15, PAGE);
+                faulted(what + ": no memory", new Stage().tables(1).page(PAGE, Stage.entry(0x3000, 0xC7)), PAGE + 8, w,
+                        loads ? 5 : 7, PAGE + 8);
+                faulted(what + ": a region without rights", new Stage().withStatus(MPRV).withControl(944, DATA >> 2)
+                        .withControl(951, -1).withControl(928, 0x1FL << 56 | 0x1C), DATA, w, loads ? 5 : 7, DATA);
+                Stage s = new Stage().tables(1).page(PAGE, Stage.entry(DATA, 7)).memory(DATA, FULL).withFloat(1, ~FULL)
+                        .with(1, PAGE).run(w).fine(what + " is marked", 4);
+                Rig.due(what + ": the entry", s.machine.word(Stage.leaf(PAGE)), Stage.entry(DATA, loads ? 0x47 : 0xC7));
+                s = new Stage().tables(1).page(EDGE, Stage.entry(DATA + 0x5000, 0xCF)).memory(DATA + 4088, FULL)
+                        .memory(DATA + 0x5000, ~FULL).withFloat(1, 0x0102030405060708L).with(1, EDGE - 3).run(w);
+                s.fine(what + " over two pages", 4);
+                long both = ~FULL << 24 | FULL >>> 40;
+                Rig.due(what + " over two pages: the register", s.f(1), !loads ? 0x0102030405060708L
+                        : n == 8 ? both : both & 0xFFFFFFFFL | -1L << 32);
+                Rig.due(what + " over two pages: the first part", s.machine.word(DATA + 4088),
+                        loads ? FULL : 0x0607085544332211L);
+                Rig.due(what + " over two pages: the second part", s.machine.word(DATA + 0x5000), loads ? ~FULL
+                        : n == 8 ? ~FULL & ~0xFFFFFFFFFFL | 0x0102030405L : ~FULL & ~0xFFL | 5);
+            }
+            faulted("a store into a page that is read", new Stage().tables(1).page(PAGE, Stage.entry(DATA, 0xC3)), PAGE, store,
+                    15, PAGE);
+            Stage s = new Stage().withFloat(1, 5).with(1, Rig.TIMER + 16384).run(store, load);
+            s.fine("a window", 8);
+            Rig.due("COMPARE of " + n, s.f(1), n == 8 ? 5 : 5 | -1L << 32);
+        }
+    }
+
+    private static void faulted(String what, Stage s, long at, int w, int cause, long value) {
+        s.memory(DATA, FULL).withFloat(1, 0x0102030405060708L).with(1, at).run(w).due(what, cause, value);
+        Rig.due(what + ": the register stays", s.f(1), 0x0102030405060708L);
+        Rig.due(what + ": memory stays", s.machine.word(DATA), FULL);
+        Rig.due(what + ": FS stays", s.floatState(), 1);
+    }
+
     /** "FS becomes 3 if a register, the flags or the mode of part 3 were written (a flag that was raised counts ...)". */
     private static void floatStates() {
         Stage s = new Stage().withFloat(1, ONE).withFloat(2, ONE).run(Rig.r(83, 5, 2, 1, 2, 20 << 2 | 1));
@@ -264,6 +308,10 @@ public final class EdgesDataTest {
         illegal("WRITE by register 0", Rig.csrrw(3, 3857, 0));
         illegal("WRITE by the number 0", Rig.csrrwi(3, 3857, 0));
         illegal("f 4", Rig.i(115, 3, 4, 0, 832));
+        for (int k : new int[] {0, 1, 2, 3, 32, 64, 258, 768, 770, 800}) {
+            illegal("f 4 of " + k, Rig.i(115, 3, 4, 0, k));
+            illegal("f 4 of " + k + " with a", Rig.i(115, 3, 4, 1, k));
+        }
         Stage s = new Stage().withControl(832, FULL).run(Rig.csrrw(3, 832, 0));
         Rig.due("what was there", s.x(3), FULL);
         Rig.due("0 is written", s.control(832), 0);
@@ -411,6 +459,7 @@ public final class EdgesDataTest {
         loadsAndStores();
         atomics();
         floats();
+        floatFaults();
         floatStates();
         writesOrNot();
         countsGrow();

@@ -168,6 +168,28 @@ public final class EdgesDiskTest {
         Rig.due("68 by its bit 0", b.get(68), 0);
         b.set(68, 3);
         Rig.due("68 by its bit 0", b.get(68), 1);
+        // With another queue, also when this one is not ready.
+        for (int offset : new int[] {56, 128, 132, 144, 148, 160, 164}) {
+            b = new Board();
+            b.set(68, 0);
+            b.set(48, 1);
+            b.set(offset, 1);
+            b.set(48, 0);
+            b.set(68, 1);
+            b.request(FLUSH, 0, 0, true).work();
+            b.done(offset + " with another queue, not ready", 0, 1);
+        }
+        // Whatever is written to another register than 80, the device does not work.
+        for (int offset = 0; offset < 516; offset += 4) {
+            for (int v = 0; v < 2; v++) {
+                if (offset != 80 && offset != 112) {
+                    b = new Board().request(FLUSH, 0, 0, true);
+                    b.set(48, v);
+                    b.set(offset, 0);
+                    Rig.due("nothing by " + offset, b.at(RESULT, 1) + b.at(ANSWERS + 2, 2), 0x77);
+                }
+            }
+        }
         for (int how = 0; how < 3; how++) {
             for (int offset : new int[] {56, 128, 132, 144, 148, 160, 164}) {
                 b = new Board();
@@ -211,6 +233,27 @@ public final class EdgesDiskTest {
         Board b = new Board();
         b.set(112, 0);
         Rig.due("the size is 16 at first", b.get(52), 16);
+        // At first, and behind a reset, it is 16 without a word on it: block 15 is there, block 16 is not.
+        for (int way = 0; way < 6; way++) {
+            b = new Board(0);
+            if (way >= 3) {
+                b = new Board(4);
+                b.set(112, 0);
+                b.place(128, BLOCKS);
+                b.place(144, OFFERS);
+                b.place(160, ANSWERS);
+                b.set(68, 1);
+                b.set(112, 15);
+            }
+            int second = way % 3 == 0 ? 15 : way % 3 == 1 ? 16 : 1;
+            b.head(FLUSH, 0).block(0, HEAD, 16, NEXT, second).block(second, RESULT, 1, OPEN, 0);
+            b.offers(0, way % 3 == 2 ? 17 : 1, 0).work();
+            if (way % 3 == 0) {
+                b.done("block 15 of a queue of no told size", 0, 1);
+            } else {
+                b.broken("beyond a queue of no told size, in the way " + way);
+            }
+        }
     }
 
     private static void states() {
@@ -329,6 +372,21 @@ public final class EdgesDiskTest {
                 b.request(FLUSH, 0, 0, true).work();
             }
             b.done("halves in the way " + way, 0, 1);
+        }
+        // One place is told anew while another one is elsewhere, and then is told anew itself.
+        for (int i = 0; i < 3; i++) {
+            for (int j = 0; j < 3; j++) {
+                for (int half = 0; half < 2; half++) {
+                    Board b = new Board();
+                    b.set(68, 0);
+                    b.set(128 + 16 * i + 4 * half, 7);
+                    b.set(128 + 16 * j + 4 - 4 * half, half == 0 ? 0 : (int) places[j]);
+                    b.set(128 + 16 * i + 4 * half, half == 0 ? (int) places[i] : 0);
+                    b.set(68, 1);
+                    b.request(FLUSH, 0, 0, true).work();
+                    b.done("place " + j + " while " + i + " is elsewhere", 0, 1);
+                }
+            }
         }
         for (int bit = 32; bit < 64; bit++) {
             for (int i = 0; i < 3; i++) {
@@ -704,6 +762,9 @@ public final class EdgesDiskTest {
         read("511 bytes", 0, 511, 1);
         read("513 bytes", 0, 513, 1);
         read("1 byte", 0, 1, 1);
+        for (int length = 64; length < 2048; length += 64) {
+            read(length + " bytes", 0, length, length % 512 == 0 ? 0 : 1);
+        }
         read("64 sectors", 3, 64 * 512, 0);
         read("65 sectors", 3, 65 * 512, 1);
         read("the last sector", 2047, 512, 0);
@@ -737,6 +798,9 @@ public final class EdgesDiskTest {
         write("none", 0, 0, 0);
         write("none, beyond the disk", 2048, 0, 0);
         write("511 bytes", 0, 511, 1);
+        for (int length = 64; length < 2048; length += 64) {
+            write(length + " bytes", 0, length, length % 512 == 0 ? 0 : 1);
+        }
         write("513 bytes", 0, 513, 1);
         write("64 sectors", 3, 64 * 512, 0);
         write("65 sectors", 3, 65 * 512, 1);

@@ -397,6 +397,22 @@ public final class EdgesFindingTest {
         s.due("the greatest number of a page", 5, PAGE + 8);
     }
 
+    /** A fault is that of its own access: where an earlier one was found does not matter. */
+    private static void ownFaults() {
+        // The code may be fetched alone, so that its place would not be let through for a load.
+        for (int w : new int[] {LOADS, STORES}) {
+            Stage s = stage(8, 1).withControl(944, CODE >> 2 | 0x1FF).withControl(951, -1).withControl(928, 0x1FL << 56 | 0x1C);
+            s.with(1, PAGE + 4096).run(w).due("a page fault behind a fetch", w == LOADS ? 13 : 15, PAGE + 4096);
+        }
+        // The last word of a page loads from a window; the next page is not there.
+        Stage s = stage(8, 1).page(PAGE + 0x3000, Stage.entry(Rig.TIMER, 0xCF)).words(DATA + 4092, Rig.load(4, 3, 1, 0))
+                .with(1, PAGE + 0x3000).at(PAGE + 4092).ready().more(2);
+        s.due("a page fault of a fetch behind a window", 12, PAGE + 4096, PAGE + 4096);
+        s = stage(8, 1).words(DATA + 4092, Rig.ld(3, 1, 0)).with(1, PAGE).withControl(944, DATA >> 2 | 0x1FF)
+                .withControl(951, -1).withControl(928, 0x1FL << 56 | 0x1D).at(PAGE + 4092).ready().more(2);
+        s.due("a page fault of a fetch behind a load", 12, PAGE + 4096, PAGE + 4096);
+    }
+
     /** "Nothing is ever remembered that a program could see": an entry counts as it is now, without a fence. */
     private static void nothingIsRemembered() {
         Stage s = stage(8, 1).memory(DATA, 55).memory(DATA + 0x1000, 66).with(1, PAGE).with(4, Stage.leaf(PAGE))
@@ -420,6 +436,7 @@ public final class EdgesFindingTest {
         greatPages();
         marks();
         atLast();
+        ownFaults();
         nothingIsRemembered();
         Rig.finish("EdgesFindingTest");
     }

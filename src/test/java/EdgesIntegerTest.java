@@ -136,6 +136,10 @@ public final class EdgesIntegerTest {
         }
         illegal("a branch with f 2", Rig.branch(2, 1, 2, 64));
         illegal("a branch with f 3", Rig.branch(3, 1, 2, 64));
+        for (int distance = 0; distance < 256; distance += 32) {
+            illegal("a branch with f 2 by " + distance, Rig.branch(2, 1, 2, distance));
+            illegal("a branch with f 3 by " + distance, Rig.branch(3, 1, 2, distance));
+        }
     }
 
     // Shifts: "s being the six lowest bits of y", "the five lowest bits of y".

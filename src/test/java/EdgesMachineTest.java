@@ -118,6 +118,33 @@ public final class EdgesMachineTest {
         }
         for (int n : new int[] {1, 2}) {
             load(n, Rig.TIMER + 16384).gives("COMPARE by " + n, 3, 0);
+            Stage s = new Stage().with(1, Rig.TIMER + 16384).with(2, 5).run(Rig.store(n, 2, 1, 0), Rig.ld(3, 1, 0));
+            Rig.due("COMPARE written by " + n, s.x(3), -1);
+        }
+        for (int n : sizes) {
+            for (long offset : new long[] {8, 40, 8192, 8192 + 128, 2097152, 2097152 + 4096}) {
+                Stage s = new Stage().with(1, Rig.CONTROLLER + offset).with(2, -1).run(Rig.store(n, 2, 1, 0),
+                        Rig.load(4, 3, 1, 0)).fine("the controller by " + n, 8);
+                Rig.due("the controller at " + offset + " written by " + n, s.x(3), 0);
+            }
+        }
+        for (int n : new int[] {1, 2}) {
+            // Source 10 is served; were it completed, it would wait again.
+            Stage s = new Stage().with(1, Rig.CONTROLLER).with(2, Rig.CONTROLLER + 8192).with(4, 1 << 10).with(6, Rig.SERIAL)
+                    .with(7, 2).with(8, Rig.CONTROLLER + 2097156).with(9, 10).with(12, Rig.CONTROLLER + 4096)
+                    .run(Rig.store(4, 7, 1, 40), Rig.store(4, 4, 2, 0), Rig.store(1, 7, 6, 1), Rig.load(4, 3, 8, 0),
+                            Rig.store(n, 9, 8, 0), Rig.load(4, 5, 12, 0), Rig.store(4, 9, 8, 0), Rig.load(4, 13, 12, 0));
+            Rig.due("claimed", s.x(3), 10);
+            Rig.due("not completed by " + n, s.x(5), 0);
+            Rig.due("completed by 4", s.x(13), 1024);
+        }
+        // With bit 7 of register 3 of the serial line: other windows are not its registers.
+        for (long at : new long[] {Rig.END, Rig.END + 1, Rig.TIMER, Rig.TIMER + 1, Rig.CONTROLLER, Rig.CONTROLLER + 4, Rig.BLOCK,
+            Rig.BLOCK + 1, Rig.SERIAL + 8, Rig.SERIAL + 255}) {
+            Stage s = new Stage().with(1, Rig.SERIAL).with(2, 128).with(4, at).with(6, 0x55).run(Rig.store(1, 2, 1, 3),
+                    Rig.store(1, 6, 4, 0), Rig.i(3, 5, 4, 4, 0), Rig.i(3, 7, 4, 1, 0), Rig.i(3, 8, 4, 1, 1));
+            s.fine("one byte at " + at, 20);
+            Rig.due("it reads 0, and is lost", s.x(5) + s.x(7) + s.x(8), 0);
         }
         load(4, Rig.SERIAL + 8).gives("behind the serial line's registers", 3, 0);
         load(1, Rig.SERIAL + 8).gives("behind the serial line's registers, by 1", 3, 0);
@@ -298,6 +325,69 @@ public final class EdgesMachineTest {
         Rig.due("nothing was run", s.control(2818) + s.x(5), instructions);
     }
 
+    /**
+     * "lines as part 7 has them now": in its seventh round one processor stores a number of 1 .. 8 bytes, by which a line
+     * of the other one goes on; the first processor's step comes before, the second one's behind that of the other.
+     */
+    private static void linesNow(String what, long at, int n, int v, int line, boolean isWaiting) {
+        for (int storing = 0; storing < 2; storing++) {
+            Rig rig = new Rig(2);
+            int other = 1 - storing;
+            rig.poke(Rig.CONTROLLER + 4, 4, 1);
+            rig.poke(Rig.CONTROLLER + 40, 4, 1);
+            rig.poke(Rig.CONTROLLER + 8192 + 256 * other, 4, -1);
+            rig.poke(Rig.BLOCK + 112, 4, 4);
+            rig.poke(Rig.BLOCK + 68, 4, 1);
+            rig.longs(Rig.DATA, at, v, 1L << line);
+            rig.words(BASE, Rig.auipc(31, 0x10), Rig.ld(1, 31, 0), Rig.ld(2, 31, 8), Rig.ld(3, 31, 16), Rig.csrrw(0, 772, 3),
+                    Rig.branch(storing == 0 ? 1 : 0, 10, 0, 12), Rig.store(n, 2, 1, storing == 0 && line == 3 ? 4 : 0), Rig.NOP,
+                    isWaiting ? Rig.WFI : Rig.i(115, 0, 6, 8, 768), Rig.addi(5, 5, 1), Rig.addi(5, 5, 1));
+            // The one that does not store comes to the ninth word in its seventh round: it waits there, or lets interrupts in.
+            rig.machine.start();
+            rig.machine.run(6);
+            Rig.due(what + ": off", rig.machine.control(other, 836), 0);
+            rig.machine.run(1);
+            Rig.due(what + ": on", rig.machine.control(other, 836), 1L << line);
+            rig.machine.run(1);
+            if (isWaiting) {
+                Rig.due(what + ": it waits no more", rig.machine.mode(other), 3);
+                Rig.due(what + ": it went on", rig.machine.register(other, 5), 1);
+            } else {
+                Rig.due(what + ": the trap", rig.machine.control(other, 834), line | 1L << 63);
+                Rig.due(what + ": its place", rig.machine.control(other, 833), BASE + 36);
+            }
+        }
+    }
+
+    /** The one that is interrupted has let interrupts in before: in the very round, or in the next, it takes it. */
+    private static void takenNow() {
+        for (int storing = 0; storing < 2; storing++) {
+            Rig rig = new Rig(2);
+            int other = 1 - storing;
+            rig.words(BASE, Rig.lui(1, 0x2000), Rig.addi(2, 0, 8), Rig.csrrw(0, 772, 2), Rig.csrrs(0, 768, 2),
+                    Rig.addi(3, 0, 1), Rig.branch(storing == 0 ? 1 : 0, 10, 0, 8), Rig.store(4, 3, 1, 4 * other),
+                    Rig.addi(5, 5, 1), Rig.addi(5, 5, 1), Rig.addi(5, 5, 1));
+            rig.machine.start();
+            rig.machine.run(7);
+            boolean isFirst = other == 0;
+            Rig.due("in the same round, if it comes behind", rig.machine.control(other, 834), isFirst ? 0 : 3 | 1L << 63);
+            rig.machine.run(isFirst ? 1 : 0);
+            Rig.due("in the next one at the latest", rig.machine.control(other, 834), 3 | 1L << 63);
+            Rig.due("its place", rig.machine.control(other, 833), BASE + (isFirst ? 32 : 28));
+            Rig.due("what it did before", rig.machine.register(other, 5), isFirst ? 1 : 0);
+        }
+    }
+
+    private static void lines() {
+        for (int way = 0; way < 2; way++) {
+            linesNow("SOFT", Rig.TIMER, 4, 1, 3, way == 1);
+            linesNow("TIME", Rig.TIMER + 49144, 8, -1, 7, way == 1);
+            linesNow("the disk", Rig.BLOCK + 80, 4, 0, 11, way == 1);
+            linesNow("the serial line", Rig.SERIAL + 1, 1, 2, 11, way == 1);
+        }
+        takenNow();
+    }
+
     private static void interrupted() {
         Stage s = new Stage().with(1, Rig.TIMER).with(2, 1).withControl(772, 8).withControl(835, 99).withStatus(MIE)
                 .run(Rig.store(4, 2, 1, 0), Rig.addi(5, 0, 1));
@@ -379,6 +469,7 @@ public final class EdgesMachineTest {
         inputComes();
         waits();
         wokenByTheTimer();
+        lines();
         interrupted();
         fetches();
         fetchOverPages();
