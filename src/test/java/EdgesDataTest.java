@@ -37,6 +37,33 @@ public final class EdgesDataTest {
         return Rig.i(3, 3, n == 8 ? 3 : 4 + Rig.log(n), 1, 0);
     }
 
+    /** Every kind of data goes by the data mode, and a fetch does not: the table is the user's, the counter the machine's. */
+    private static void everyKind() {
+        int[] words = {Rig.ld(3, 1, 0), Rig.store(8, 2, 1, 0), Rig.amo(2, 8, 3, 1, 0), Rig.amo(3, 8, 3, 1, 2),
+            Rig.amo(0, 8, 3, 1, 2), Rig.i(7, 1, 3, 1, 0), Rig.s(39, 3, 1, 2, 0)};
+        for (int i = 0; i < words.length; i++) {
+            boolean loads = i == 0 || i == 2 || i == 5;
+            for (int mode : new int[] {0, 1, 3}) {
+                for (long bits : new long[] {0xC7, 0xD7}) {
+                    Stage s = new Stage().tables(0).inMode(3).withStatus(MPRV | (long) mode << 11).page(PAGE, Stage.entry(DATA, bits))
+                            .with(1, PAGE).with(2, 7).run(words[i]);
+                    String what = "kind " + i + " in the data mode " + mode + " with " + bits;
+                    boolean isUsers = bits == 0xD7;
+                    if (mode == 3) {
+                        s.due(what + ": no table", loads ? 5 : 7, PAGE);
+                    } else if (isUsers == (mode == 0)) {
+                        s.fine(what, 4);
+                    } else {
+                        s.due(what + ": another one's page", loads ? 13 : 15, PAGE);
+                    }
+                }
+                // The mode 3 itself, without MPRV, whatever MPP is.
+                new Stage().tables(0).inMode(3).withStatus((long) mode << 11).with(1, DATA).with(2, 7).run(words[i])
+                        .fine("kind " + i + " without MPRV", 4);
+            }
+        }
+    }
+
     /** Two pages that are far apart in memory. */
     private static void overTwoPages() {
         Stage s = new Stage().tables(1).page(EDGE, Stage.entry(DATA + 0x5000, 0xCF)).memory(DATA + 4088, FULL)
@@ -190,6 +217,13 @@ public final class EdgesDataTest {
         s.fine("to reserve what may only be read", 4);
         s = new Stage().tables(1).page(PAGE, Stage.entry(DATA, 0x43)).with(1, PAGE).run(Rig.amo(28, 4, 3, 1, 0));
         s.due("another one there", 15, PAGE);
+        // Marks: A for sort 2, both for all others, also for a conditional store that stores nothing.
+        for (int sort : new int[] {0, 1, 2, 3, 4, 8, 12, 16, 20, 24, 28}) {
+            s = new Stage().tables(1).page(PAGE, Stage.entry(DATA, 0x0F)).memory(DATA, 62).with(1, PAGE)
+                    .run(Rig.amo(sort, 8, 3, 1, 0)).fine("marks of sort " + sort, 4);
+            Rig.due("the entry by sort " + sort, s.machine.word(Stage.leaf(PAGE)), Stage.entry(DATA, sort == 2 ? 0x4F : 0xCF));
+            Rig.due("what sort " + sort + " answers", s.x(3), sort == 3 ? 1 : 62);
+        }
         for (long window : new long[] {Rig.END, Rig.TIMER + 16384, Rig.CONTROLLER, Rig.SERIAL, Rig.BLOCK}) {
             new Stage().with(1, window).run(Rig.amo(2, 4, 3, 1, 0)).due("a window is no memory", 5, window);
             new Stage().with(1, window).run(Rig.amo(1, 4, 3, 1, 0)).due("a window is no memory", 7, window);
@@ -450,6 +484,7 @@ public final class EdgesDataTest {
 
     public static void main(String[] args) {
         dataMode();
+        everyKind();
         withinOnePage();
         overTwoPages();
         besideStores();

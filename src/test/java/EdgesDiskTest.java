@@ -10,8 +10,8 @@ public final class EdgesDiskTest {
 
     /** A machine with a queue; blocks, offers and requests are laid by hand. */
     private static final class Board {
-        final Rig rig = new Rig(1);
-        final BoardMachine machine = rig.machine;
+        final Rig rig;
+        final BoardMachine machine;
 
         Board() {
             this(16);
@@ -22,6 +22,16 @@ public final class EdgesDiskTest {
         }
 
         Board(int size, long blocks, long offers, long answers) {
+            this(new Rig(1), size, blocks, offers, answers);
+        }
+
+        Board(Rig rig) {
+            this(rig, 16, BLOCKS, OFFERS, ANSWERS);
+        }
+
+        private Board(Rig rig, int size, long blocks, long offers, long answers) {
+            this.rig = rig;
+            machine = rig.machine;
             set(56, size);
             place(128, blocks);
             place(144, offers);
@@ -899,6 +909,24 @@ public final class EdgesDiskTest {
         Rig.due("the second one", b.at(DATA + 1, 1), pattern(512, 3)[256] & 255);
     }
 
+    /** The device has worked when the step is over: another processor sees it in the same round. */
+    private static void withinTheRound() {
+        for (int calling = 0; calling < 2; calling++) {
+            Rig rig = new Rig(2);
+            Board b = new Board(rig);
+            b.request(FLUSH, 0, 0, true);
+            rig.longs(Rig.DATA, Rig.BLOCK, RESULT);
+            rig.words(Rig.BASE, Rig.auipc(31, 0x10), Rig.ld(1, 31, 0), Rig.ld(2, 31, 8), Rig.branch(calling == 0 ? 1 : 0, 10, 0, 8),
+                    Rig.store(4, 0, 1, 80), Rig.i(3, 5, 4, 2, 0), Rig.NOP);
+            // In round 5 one of them calls, the other one loads the result, which was 0x77.
+            rig.machine.start();
+            rig.machine.run(5);
+            Rig.due("what the other one loads", rig.machine.register(1 - calling, 5), calling == 0 ? 0 : 0x77);
+            rig.machine.run(1);
+            Rig.due("what it loads itself then", rig.machine.register(calling, 5), 0);
+        }
+    }
+
     /** The signal of source 1, as long as causes are not 0. */
     private static void signal() {
         Board b = new Board();
@@ -951,6 +979,7 @@ public final class EdgesDiskTest {
         dataInParts();
         names();
         order();
+        withinTheRound();
         signal();
         Rig.finish("EdgesDiskTest");
     }

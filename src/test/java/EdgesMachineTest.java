@@ -224,6 +224,45 @@ public final class EdgesMachineTest {
         }
     }
 
+    /** Each processor has its own of everything: what one of them does is seen in no other one. */
+    private static void eachItsOwn() {
+        for (int one = 0; one < 4; one++) {
+            Rig rig = new Rig(4);
+            rig.longs(Rig.DATA, one, 0x6000, 0x4A, 0x0F1B, 8L << 60 | 5, 0x222, 0x1234);
+            int[] words = new int[40];
+            int n = 0;
+            words[n++] = Rig.auipc(31, 0x10);
+            words[n++] = Rig.ld(30, 31, 0);
+            words[n++] = Rig.branch(0, 30, 10, 8);
+            words[n++] = Rig.jal(0, 0);
+            for (int r = 1; r <= 6; r++) {
+                words[n++] = Rig.ld(r, 31, 8 * r);
+            }
+            int[] written = {768, 3, 928, 384, 771, 770, 772, 836, 773, 261, 832, 833, 834, 835, 320, 321, 322, 323, 774, 262,
+                944, 951, 2816, 2818};
+            int[] from = {1, 2, 3, 4, 5, 6, 5, 5, 6, 6, 6, 6, 6, 6, 6, 6, 6, 6, 2, 2, 6, 6, 6, 6};
+            for (int i = 0; i < written.length; i++) {
+                words[n++] = Rig.csrrw(0, written[i], from[i]);
+            }
+            words[n++] = Rig.i(7, 9, 3, 31, 48);
+            words[n++] = Rig.WFI;
+            rig.words(BASE, words);
+            rig.machine.start();
+            // One word, at which the others stay, is jumped over.
+            rig.machine.run(n - 1);
+            for (int h = 0; h < 4; h++) {
+                boolean isOne = h == one;
+                Rig.due("register 6 of " + h, rig.machine.register(h, 6), isOne ? 0x1234 : 0);
+                Rig.due("float 9 of " + h, rig.machine.floating(h, 9), isOne ? 0x1234 : 0);
+                Rig.due("mode of " + h, rig.machine.mode(h), isOne ? 7 : 3);
+                for (int k : written) {
+                    long first = k == 768 ? 10L << 32 : k == 2816 || k == 2818 ? n - 1 : 0;
+                    Rig.due("register " + k + " of " + h, rig.machine.control(h, k) != first == isOne);
+                }
+            }
+        }
+    }
+
     private static void cycles() {
         Rig rig = new Rig(2);
         rig.words(BASE, Rig.branch(1, 10, 0, 8), Rig.jal(0, 0), Rig.WFI, Rig.NOP);
@@ -360,21 +399,28 @@ public final class EdgesMachineTest {
     }
 
     /** The one that is interrupted has let interrupts in before: in the very round, or in the next, it takes it. */
-    private static void takenNow() {
+    private static void takenNow(String what, long at, int n, int v, int line) {
         for (int storing = 0; storing < 2; storing++) {
             Rig rig = new Rig(2);
             int other = 1 - storing;
-            rig.words(BASE, Rig.lui(1, 0x2000), Rig.addi(2, 0, 8), Rig.csrrw(0, 772, 2), Rig.csrrs(0, 768, 2),
-                    Rig.addi(3, 0, 1), Rig.branch(storing == 0 ? 1 : 0, 10, 0, 8), Rig.store(4, 3, 1, 4 * other),
-                    Rig.addi(5, 5, 1), Rig.addi(5, 5, 1), Rig.addi(5, 5, 1));
+            rig.poke(Rig.CONTROLLER + 4, 4, 1);
+            rig.poke(Rig.CONTROLLER + 40, 4, 1);
+            rig.poke(Rig.CONTROLLER + 8192 + 256 * other, 4, -1);
+            rig.poke(Rig.BLOCK + 112, 4, 4);
+            rig.poke(Rig.BLOCK + 68, 4, 1);
+            rig.longs(Rig.DATA, at + (line == 3 ? 4 * other : 0), v, 1L << line, 8);
+            rig.words(BASE, Rig.auipc(31, 0x10), Rig.ld(1, 31, 0), Rig.ld(2, 31, 8), Rig.ld(3, 31, 16), Rig.ld(4, 31, 24),
+                    Rig.branch(storing == 0 ? 1 : 0, 10, 0, 20), Rig.NOP, Rig.NOP, Rig.store(n, 2, 1, 0), Rig.NOP,
+                    Rig.csrrw(0, 772, 3), Rig.csrrw(0, 768, 4), Rig.addi(5, 5, 1), Rig.addi(5, 5, 1), Rig.addi(5, 5, 1));
+            // In round 9 one of them stores, while the other one comes to the first word that counts.
             rig.machine.start();
-            rig.machine.run(7);
+            rig.machine.run(9);
             boolean isFirst = other == 0;
-            Rig.due("in the same round, if it comes behind", rig.machine.control(other, 834), isFirst ? 0 : 3 | 1L << 63);
+            Rig.due(what + ": in the same round, if it comes behind", rig.machine.control(other, 834), isFirst ? 0 : line | 1L << 63);
             rig.machine.run(isFirst ? 1 : 0);
-            Rig.due("in the next one at the latest", rig.machine.control(other, 834), 3 | 1L << 63);
-            Rig.due("its place", rig.machine.control(other, 833), BASE + (isFirst ? 32 : 28));
-            Rig.due("what it did before", rig.machine.register(other, 5), isFirst ? 1 : 0);
+            Rig.due(what + ": in the next one at the latest", rig.machine.control(other, 834), line | 1L << 63);
+            Rig.due(what + ": its place", rig.machine.control(other, 833), BASE + (isFirst ? 52 : 48));
+            Rig.due(what + ": what it did before", rig.machine.register(other, 5), isFirst ? 1 : 0);
         }
     }
 
@@ -385,7 +431,10 @@ public final class EdgesMachineTest {
             linesNow("the disk", Rig.BLOCK + 80, 4, 0, 11, way == 1);
             linesNow("the serial line", Rig.SERIAL + 1, 1, 2, 11, way == 1);
         }
-        takenNow();
+        takenNow("SOFT", Rig.TIMER, 4, 1, 3);
+        takenNow("TIME", Rig.TIMER + 49144, 8, -1, 7);
+        takenNow("the disk", Rig.BLOCK + 80, 4, 0, 11);
+        takenNow("the serial line", Rig.SERIAL + 1, 1, 2, 11);
     }
 
     private static void interrupted() {
@@ -464,6 +513,7 @@ public final class EdgesMachineTest {
         theEnd();
         behindTheEnd();
         oneBehindTheOther();
+        eachItsOwn();
         cycles();
         tenthRounds();
         inputComes();
